@@ -143,6 +143,9 @@ public final class ArchiveTest {
             zip.add(Zip.latin(name), new byte[0], new byte[0], 0);
             is(due, "a name that is no UTF-8", zip, REST + " 10@0:0:0");
         }
+        Zip ahead = new Zip();
+        ahead.add(Zip.latin("a\u00c3"), new byte[0], new byte[0], 0).extra = Zip.latin("\u00a9");
+        is(due, "a name ends ahead of its extra field", ahead, REST + " 10@0:0:0");
         Zip zip = new Zip();
         for (String name : new String[] {"a", "b", "a", "A", "a", "B", "\u00e9", "\u00c9"}) {
             zip.stored(name, new byte[0]);
@@ -256,6 +259,8 @@ public final class ArchiveTest {
         mime(due, "a wrong sum", true, z -> { Zip.Entry e = z.entries.get(0); e.sum = 1; e.localSum = 1; });
         mime(due, "an extra field behind a wrong header", true, z -> { Zip.Entry e = z.entries.get(0); e.localExtra = new byte[1]; e.localSum = 1; });
         mime(due, "an extra field, data beyond", true, z -> { Zip.Entry e = z.entries.get(0); e.localExtra = new byte[1]; e.packed = 9999; e.localPacked = 9999; });
+        mime(due, "an extra field of a locked one behind a wrong header", true, z -> { Zip.Entry e = z.entries.get(0); e.localExtra = new byte[1]; e.flags = 1; e.localSum = 1; });
+        mime(due, "an extra field of a locked one, numbers told later", false, z -> { Zip.Entry e = z.entries.get(0); e.localExtra = new byte[1]; e.flags = 9; e.localSum = 1; });
         mime(due, "other bytes", false, z -> z.entries.set(0, new Zip().stored("mimetype", Zip.latin("application/epub+zip\n"))));
         mime(due, "other bytes, capitals", false, z -> z.entries.set(0, new Zip().stored("mimetype", Zip.latin("application/EPUB+zip"))));
         Zip zip = new Zip();

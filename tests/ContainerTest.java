@@ -31,8 +31,21 @@ public final class ContainerTest {
             .due(due, "only the first is looked at", "42 META-INF/container.xml <rootfile full");
         new Book().swap(Book.CONTAINER, "<rootfiles>", "<rootfiles><q:rootfile xmlns:q='urn:oasis:names:tc:opendocument:xmlns:container' full-path='E/p.opf' "
             + TYPE + "/>").due(due, "a prefix is as good");
+        firstEntry(due);
         abouts(due);
         due.close();
+    }
+
+    private static void firstEntry(Due due) {
+        Zip zip = new Zip();
+        zip.stored("p.opf", Zip.utf8("<x/>"));
+        zip.stored(Book.CONTAINER, Zip.utf8(new Book().files.get(Book.CONTAINER).replace("E/p.opf", "p.opf")));
+        Desk desk = new Desk();
+        due.is("the first entry as the package", desk.report(zip.bytes()), "20@-1:0:0 50@0:1:1");
+        due.is("its entry", desk.desk.about(2), 0);
+        zip = new Zip();
+        zip.stored(Book.CONTAINER, Zip.utf8("<x/>"));
+        due.is("the first entry as the container", desk.report(zip.bytes()), "20@-1:0:0 40@0:1:1");
     }
 
     private static void abouts(Due due) {

@@ -32,6 +32,7 @@ public final class ContentTest {
         page("<img src='pic.png'/>").due(due, "a missing one", "76 E/t/page.xhtml <img");
         page("<img src='../p.opf'/>").due(due, "no item's", "76 E/t/page.xhtml <img");
         page("<img src='../i/pic.png#x'/><p><img src='../../E/i/pic.png'/></p>").due(due, "right ones");
+        page("<img src='../../mimetype'/><a href='../../mimetype'/>").item("id='m' href='../mimetype' media-type='image/gif'").due(due, "the first entry");
         page("<img src='../nav.xhtml'/>").due(due, "a page", "46 E/t/page.xhtml <img");
         page("<img xmlns='u'/><x:img xmlns:x='u'/>").due(due, "of other namespaces");
         page("<img xmlns:q='u' q:src='../i/pic.png'/>").due(due, "a src of a namespace", "76 E/t/page.xhtml <img");
@@ -72,6 +73,12 @@ public final class ContentTest {
         due.is("a picture isn't read", desk.report(new Book().put(Book.PICTURE, "<html>").bytes()), "");
         due.is("a page of another type isn't read", desk.report(new Book().put("E/z.xhtml", "<html>").item("id='z' href='z.xhtml' media-type='text/html'").bytes()), "");
         due.is("the pages without a package aren't read", desk.report(new Book().put(Book.PAGE, "<html>").swap(Book.PACK, "3.0", "2.0").bytes()), "50@2:1:1");
+        Book first = new Book().drop("mimetype").drop(Book.CONTAINER).drop(Book.PACK).drop(Book.NAV).put(Book.PAGE, "<html>");
+        for (String name : new String[] {Book.NAV, Book.PACK, Book.CONTAINER}) {
+            first.put(name, new Book().files.get(name));
+        }
+        due.is("the first entry as a page", desk.report(first.bytes()), "20@-1:0:0 30@0:1:7");
+        due.is("and once more", desk.report(first.bytes()), "20@-1:0:0 30@0:1:7");
         Zip zip = new Book().put(Book.PAGE, "<html>").zip();
         zip.entries.get(4).flags = 1;
         due.is("what isn't read isn't parsed", desk.report(zip.bytes()), "13@4:0:0");

@@ -45,6 +45,8 @@ public final class InflateTest {
     public static void main(String[] args) {
         Due due = new Due();
         library(due);
+        farCopies(due);
+        fullRoom(due);
         storedBlocks(due);
         fixedBlocks(due);
         toldBlocks(due);
@@ -86,7 +88,49 @@ public final class InflateTest {
         }
     }
 
+    /** Every distance that a size of 6000 has room for, near its edges. */
+    private static void farCopies(Due due) {
+        Random random = new Random(9);
+        byte[] data = new byte[6000];
+        random.nextBytes(data);
+        for (int distance : new int[] {1, 2, 4, 5, 8, 9, 16, 17, 32, 33, 64, 65, 128, 129, 256, 257, 512, 513, 1024, 1025, 2048, 2049, 4096, 4097, 5500}) {
+            byte[] row = data.clone();
+            for (int i = Math.max(distance, 5600); i < 5990; i++) {
+                row[i] = row[i - distance];
+            }
+            is(due, "a distance of " + distance, Zip.deflate(row), new String(row, java.nio.charset.StandardCharsets.ISO_8859_1), true);
+        }
+    }
+
+    /** Too many bytes in the last entry find no room behind it. */
+    private static void fullRoom(Due due) {
+        Zip zip = new Zip();
+        for (int i = 0; i < 3; i++) {
+            zip.deflated("a" + i, new byte[6000]);
+        }
+        Zip.Entry last = zip.deflated("b", new byte[7000]);
+        last.size = 6000;
+        last.localSize = 6000;
+        due.is("too many bytes at the end", new Desk().report(zip.bytes()), "20@-1:0:0 22@-1:0:0 17@3:0:0");
+        zip.entries.remove(3);
+        byte[] big = new byte[6001];
+        new Random(3).nextBytes(big);
+        Deflater deflater = new Deflater(0, true);
+        deflater.setInput(big);
+        deflater.finish();
+        byte[] raw = new byte[7000];
+        int n = deflater.deflate(raw);
+        deflater.end();
+        last = zip.add(Zip.latin("b"), big, Arrays.copyOf(raw, n), 8);
+        last.size = 6000;
+        last.localSize = 6000;
+        due.is("too many stored bytes at the end", new Desk().report(zip.bytes()), "20@-1:0:0 22@-1:0:0 17@3:0:0");
+    }
+
     private static void storedBlocks(Due due) {
+        Bits even = new Bits().number(0, 1).number(1, 2).code("110010000").code("110010000").code("110010000").code("0000000").number(1, 3);
+        is(due, "a stored block that begins with a byte", even.number(1, 16).number(0xFFFE, 16).number('a', 8).bytes(), "\u0090\u0090\u0090a", true);
+        is(due, "a stored block of 65535", new Bits().number(1, 3).align().number(65535, 16).number(0, 16).bytes(), "a", false);
         is(due, "no bytes at all", new byte[0], "", false);
         is(due, "an empty stored block", new Bits().number(1, 1).number(0, 2).align().number(0, 16).number(0xFFFF, 16).bytes(), "", true);
         is(due, "two stored blocks", new Bits().number(0, 3).align().number(1, 16).number(0xFFFE, 16).number('a', 8)
@@ -175,6 +219,9 @@ public final class InflateTest {
     }
 
     private static void toldWrong(Due due) {
+        is(due, "more letters than the size", zeros(zeros(told(257, 1), 97).code("01"), 158).code("01").code("00").code("000").code("1").bytes(), "aa", false);
+        Bits turned = zeros(zeros(told(258, 1), 97).code("01"), 158).code("10").code("10").code("01");
+        is(due, "a longer copy than the size", turned.code("0").code("11").code("0").code("10").bytes(), "aaa", false);
         Bits one = zeros(zeros(told(257, 1), 97).code("10"), 158).code("10").code("00");
         is(due, "letters not complete", one.code("00").code("01").bytes(), "a", false);
         one = zeros(told(257, 1), 256).code("10").code("00");

@@ -11,7 +11,7 @@ import javax.tools.*;
 public final class LanguageRules {
     private static final Set<String> LIBRARY = Set.of(
         "java.lang.String.length", "java.lang.String.charAt", "java.lang.String.isEmpty", "java.lang.String.equals",
-        "java.lang.Math.max", "java.lang.Math.min", "java.lang.Math.abs", "java.lang.Integer.rotateLeft",
+        "java.lang.Math.max", "java.lang.Math.min", "java.lang.Math.abs",
         "java.lang.System.arraycopy", "java.util.Arrays.fill", "java.lang.Object.<init>");
     private static final Set<String> FACE = Set.of(
         "feed", "end", "check", "message", "about", "entry", "name", "resource", "order", "contents", "label");

@@ -96,11 +96,11 @@ public final class MetadataTest {
     }
 
     private void prefixes() {
-        String[] right = {"", " \n", "a: x", "a: x b: y", "\t_a.-9: x\n", "a: a:", "a: x a: y"};
+        String[] right = {"", " \n", "a: x", "A: x", "z: x", "Z: x", "_: x", "a0A9Zz: x", "a: x b: y", "\t_a.-9: x\n", "a: a:", "a: x a: y"};
         for (String text : right) {
             pack("version='3.0'", "version='3.0' prefix='" + text + "'").due(due, "prefix " + text);
         }
-        String[] wrong = {"a", "a:", "a: x b", "a: x b:", "a x", ": x", "1a: x", "-a: x", ".a: x", "a:b x", "a:: x", "\u00e9: x", "a+: x"};
+        String[] wrong = {"a", "a:", "a: x b", "a: x b:", "a x", ": x", "1a: x", "@: x", "[: x", "`: x", "{: x", "a@: x", "a[: x", "a/: x", "a;: x", "-a: x", ".a: x", "a:b x", "a:: x", "\u00e9: x", "a+: x"};
         for (String text : wrong) {
             pack("version='3.0'", "version='3.0' prefix='" + text + "'").due(due, "prefix " + text, "23 E/p.opf <package");
         }

@@ -107,6 +107,8 @@ public final class OverlayTest {
             "00:00:00.5s", "1.5:00", "01:00h", "1:00:00:"};
         for (String text : wrong) {
             new Book().meta("property='media:duration'", text).due(due, "clock " + text, "37 E/p.opf <meta property='media");
+            body(par("clipEnd='" + text + "'")).due(due, "clipEnd " + text, "29 E/o.smil <audio");
+            body(par("clipBegin='" + text + "'")).due(due, "clipBegin " + text, "29 E/o.smil <audio");
         }
     }
 
@@ -151,6 +153,12 @@ public final class OverlayTest {
         body(five + par("")).meta(one, "77").due(due, "not known: no end");
         body(five + par("clipEnd='x'")).meta(one, "77").due(due, "not known: 29", "29 E/o.smil <audio src='s.mp3' clipEnd='x'");
         body(five + "<seq/>").meta(one, "77").due(due, "not known: 27", "27 E/o.smil <seq/");
+        body(five + "<par/>").meta(one, "77").due(due, "not known: 27 of a par", "27 E/o.smil <par/");
+        body("<seq/>" + five).meta(one, "77").due(due, "not known: 27 ahead", "27 E/o.smil <seq/");
+        body(par("") + five).meta(one, "77").due(due, "not known: no end, ahead");
+        Book first = body(five).meta(one, "77");
+        first.swap(Book.PACK, "<item id='o' href='o.smil' " + ITEM + "/>\n", "").swap(Book.PACK, "<manifest>\n", "<manifest>\n<item id='o' href='o.smil' " + ITEM + "/>\n");
+        first.due(due, "the first item", "36 " + at);
         body(five + "<par><text/></par>").meta(one, "77").due(due, "known: 28", "28 E/o.smil <text/", "36 " + at);
         whole("<smil/>").meta(one, "77").due(due, "not known: 26", "26 E/o.smil <");
         whole("<smil/>").meta(one, "x").due(due, "not known, no clock", "26 E/o.smil <", "36 " + at);

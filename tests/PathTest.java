@@ -48,6 +48,10 @@ public final class PathTest {
         full("a//b", "a//b", "a//b", "a/b");
         full("a//b", "-", "a/b");
         full(".//b", "/b", "/b");
+        full(".//x/../b", "/b", "/b");
+        full(".//../b", "b", "b", "/b");
+        full("a/b/../c", "a/c", "a/c");
+        full("a//../b", "a/b", "a/b");
         full("a?", "-", "a");
         full("a#x?", "-", "a");
         full("a#x", "a", "a");
@@ -121,6 +125,10 @@ public final class PathTest {
             .due(due, "missing twice", "60 E/p.opf <item id='y'", "60 E/p.opf <item id='z'", "61 E/p.opf <item id='z'");
         new Book().item("id='y' href='z' media-type='text/css'").item("id='z' href='zz' media-type='text/css'")
             .due(due, "two missing ones", "60 E/p.opf <item id='y'", "60 E/p.opf <item id='z'");
+        new Book().item("id='y' href='../a' media-type='text/css'").item("id='z' href='../b' media-type='text/css'")
+            .due(due, "two missing ones of one length", "60 E/p.opf <item id='y'", "60 E/p.opf <item id='z'");
+        new Book().item("id='x' href='../a' media-type='text/css'").item("id='y' href='..' media-type='text/css'").item("id='z' href='../a' media-type='text/css'")
+            .due(due, "one amid that is bad", "60 E/p.opf <item id='x'", "59 E/p.opf <item id='y'", "60 E/p.opf <item id='z'", "61 E/p.opf <item id='z'");
         new Book().item("id='y' href='nav.xhtml' media-type='text/css'")
             .due(due, "there twice", "61 E/p.opf <item id='y'");
         new Book().item("id='y' href='/' media-type='text/css'").item("id='z' href='/' media-type='text/css'")

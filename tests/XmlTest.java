@@ -22,6 +22,7 @@ public final class XmlTest {
         test.limits();
         test.places();
         test.values();
+        test.neighbours();
         test.due.close();
     }
 
@@ -242,6 +243,9 @@ public final class XmlTest {
         right("<a xmlns=''><b xmlns='u'/></a>");
         right("<a xmlns:p='u'><p:b><p:c xmlns:p='v'/></p:b></a>");
         right("<a xmlns:p='u' xmlns='u' p:b='' b=''/>");
+        right("<a xmlns:p='u' p='u'/>");
+        right("<a xmlns:p='u' xmlns:q='u' p:q='' q:p=''/>");
+        wrong("\u00a4<p:a p='u'/>");
         wrong("\u00a4<p:a/>");
         wrong("<r>\u00a4<a p:b=''/></r>");
         wrong("<r>\u00a4<a p:b=''></a></r>");
@@ -308,6 +312,19 @@ public final class XmlTest {
         book.due(due, "references stay what they are");
         book = new Book().swap(Book.PACK, "idref='nav'", "idref='n&#10;v'").swap(Book.PACK, "id='nav'", "id='n v'");
         book.due(due, "a reference is no blank", "66 E/p.opf <itemref", "73 E/nav.xhtml <a href='#'");
+    }
+
+    /** What stands behind a document's last byte is another entry's. */
+    private void neighbours() {
+        String[] ends = {"<a>\u00c3", "<a>\u00e2\u0082", "<a>\r", "<a/>\r", "<a", "<a>&am"};
+        String[] begins = {"\u00a9</a>", "\u00ac</a>", "\n</a>", "\n", "/>", "p;</a>"};
+        String[] due = {"30@0:1:4", "30@0:1:4", "30@0:2:1", "40@0:1:1", "30@0:1:3", "30@0:1:4"};
+        for (int i = 0; i < ends.length; i++) {
+            Zip zip = new Zip();
+            zip.stored("META-INF/container.xml", Zip.latin(ends[i]));
+            zip.stored("b", Zip.latin(begins[i]));
+            this.due.is("a document ahead of another", new Desk().report(zip.bytes()), "20@-1:0:0 " + due[i]);
+        }
     }
 
     private void label(String inside, String want) {

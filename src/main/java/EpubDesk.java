@@ -899,7 +899,7 @@ public final class EpubDesk {
             outStop = start + size;
             boolean right = true;
             boolean over = false;
-            while (right && !over && bitAt < bitStop) {
+            for (int round = bitAt; right && !over && round < bitStop && bitAt < bitStop; round++) {
                 over = bits(1) == 1;
                 int kind = bits(2);
                 if (kind == 0) {
@@ -943,12 +943,19 @@ public final class EpubDesk {
         }
 
         private void fixedCodes() {
-            for (int i = 0; i < 288; i++) {
-                lengths[i] = i < 144 ? 8 : i < 256 ? 9 : i < 280 ? 7 : 8;
-            }
+            setLengths(0, 144, 8);
+            setLengths(144, 256, 9);
+            setLengths(256, 280, 7);
+            setLengths(280, 288, 8);
             sortCodes(letterCounts, letters, 0, 288);
-            Arrays.fill(lengths, 0, 32, 5);
+            setLengths(0, 32, 5);
             sortCodes(distanceCounts, distances, 0, 32);
+        }
+
+        private void setLengths(int from, int to, int length) {
+            for (int i = from; i < to; i++) {
+                lengths[i] = length;
+            }
         }
 
         private boolean toldCodes() {
@@ -958,7 +965,7 @@ public final class EpubDesk {
             if (told < 4 || letterCodes > MOST_LETTERS || distanceCodes > MOST_DISTANCES) {
                 return false;
             }
-            Arrays.fill(lengths, 0, 19, 0);
+            setLengths(0, 19, 0);
             for (int i = 0; i < told; i++) {
                 int length = bits(3);
                 if (length < 0) {
@@ -1003,7 +1010,7 @@ public final class EpubDesk {
                 if (extra < 0 || times > all - at) {
                     return false;
                 }
-                Arrays.fill(lengths, at, at + times, length);
+                setLengths(at, at + times, length);
                 at += times;
             }
             return true;
@@ -1058,7 +1065,7 @@ public final class EpubDesk {
         }
 
         private boolean block() {
-            while (bitAt < bitStop) {
+            for (int round = bitAt; round < bitStop && bitAt < bitStop; round++) {
                 int letter = symbol(letterCounts, letters);
                 if (letter == STOP) {
                     return true;
@@ -1189,13 +1196,14 @@ public final class EpubDesk {
             }
             int width = Bytes.width(c);
             int rest = c;
+            owner[used] = who;
             for (int i = width - 1; i > 0; i--) {
                 pool[used + i] = rest & 63 | 128;
+                owner[used + i] = who;
                 rest >>= 6;
             }
             // The first byte's mark: as many ones as there are bytes.
             pool[used] = width == 1 ? rest : rest | 0xF0 << 4 - width & 0xFF;
-            Arrays.fill(owner, used, used + width, who);
             used += width;
         }
 
@@ -1208,7 +1216,7 @@ public final class EpubDesk {
             return attrFrom[e];
         }
 
-        int attrTo(int e) {
+        private int attrTo(int e) {
             return e + 1 < elements ? attrFrom[e + 1] : attrs;
         }
 
@@ -1222,7 +1230,8 @@ public final class EpubDesk {
         }
 
         int attrIn(int e, int which, String word) {
-            for (int a = attrFrom[e]; a < attrTo(e); a++) {
+            int to = attrTo(e);
+            for (int a = attrFrom[e]; a < to; a++) {
                 if (attrSpace[a] == which && Bytes.is(bytes, attrAt[a], attrLength[a], word)) {
                     return a;
                 }
@@ -1281,7 +1290,8 @@ public final class EpubDesk {
 
         /** The namespace that the element itself declares for a prefix (of length 0: the default one), or NONE. */
         int declared(int e, int prefixAt, int length) {
-            for (int a = attrFrom[e]; a < attrTo(e); a++) {
+            int to = attrTo(e);
+            for (int a = attrFrom[e]; a < to; a++) {
                 if (attrSpace[a] < 0 && attrLength[a] == length
                         && Bytes.same(bytes, attrAt[a], bytes, prefixAt, length)) {
                     return -1 - attrSpace[a];
@@ -1665,7 +1675,7 @@ public final class EpubDesk {
             }
             int who = open[depth - 1];
             int brackets = 0;
-            while (at < stop) {
+            for (int round = at; round < stop && at < stop; round++) {
                 int c = chars[at];
                 if (c == '>' && brackets >= 2) {
                     // The two brackets ahead of it were no text after all.
@@ -1682,7 +1692,7 @@ public final class EpubDesk {
         private boolean text() {
             int who = open[depth - 1];
             int brackets = 0;
-            while (at < stop && chars[at] != '<') {
+            for (int round = at; round < stop && at < stop && chars[at] != '<'; round++) {
                 int c = chars[at];
                 if (c == '&') {
                     if (!reference(who)) {
@@ -1862,7 +1872,7 @@ public final class EpubDesk {
                 return failHere();
             }
             at++;
-            while (at < stop && chars[at] != quote && chars[at] != '<') {
+            for (int round = at; round < stop && at < stop && chars[at] != quote && chars[at] != '<'; round++) {
                 int c = chars[at];
                 if (c == '&') {
                     if (!reference(NONE)) {
@@ -3363,9 +3373,13 @@ public final class EpubDesk {
             }
         }
 
+        private static int rotate(int word, int n) {
+            return word << n | word >>> 32 - n;
+        }
+
         private void mix() {
             for (int t = 16; t < 80; t++) {
-                words[t] = Integer.rotateLeft(words[t - 3] ^ words[t - 8] ^ words[t - 14] ^ words[t - 16], 1);
+                words[t] = rotate(words[t - 3] ^ words[t - 8] ^ words[t - 14] ^ words[t - 16], 1);
             }
             int a = hash[0];
             int b = hash[1];
@@ -3376,10 +3390,10 @@ public final class EpubDesk {
                 int round = t / 20;
                 int f = round == 0 ? b & c | ~b & d : round == 2 ? b & c | b & d | c & d : b ^ c ^ d;
                 int constant = round == 0 ? 0x5A827999 : round == 1 ? 0x6ED9EBA1 : round == 2 ? 0x8F1BBCDC : 0xCA62C1D6;
-                int next = Integer.rotateLeft(a, 5) + f + e + constant + words[t];
+                int next = rotate(a, 5) + f + e + constant + words[t];
                 e = d;
                 d = c;
-                c = Integer.rotateLeft(b, 30);
+                c = rotate(b, 30);
                 b = a;
                 a = next;
             }
