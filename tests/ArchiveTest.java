@@ -137,7 +137,7 @@ public final class ArchiveTest {
             is(due, "the name [" + name + "]", zip, REST + " 10@0:0:0");
         }
         String[] noUtf8 = {"\u00ff", "\u00c3", "\u00c0\u0080", "\u00e0\u0080\u0080", "\u00ed\u00a0\u0080", "\u00f4\u0090\u0080\u0080",
-            "\u00f0\u0080\u0080\u0080", "\u0080", "\u00e2\u0082a", "\u00f8\u0088\u0080\u0080\u0080"};
+            "\u00f0\u0080\u0080\u0080", "\u0080", "\u00e0\u0081\u0081", "\u00f0\u0080\u0081\u0081", "\u00c1\u0081", "\u00e2\u0082a", "\u00f8\u0088\u0080\u0080\u0080"};
         for (String name : noUtf8) {
             Zip zip = new Zip();
             zip.add(Zip.latin(name), new byte[0], new byte[0], 0);
@@ -155,6 +155,10 @@ public final class ArchiveTest {
         zip.stored("x[", new byte[0]);
         zip.stored("x{", new byte[0]);
         is(due, "only letters have capitals", zip, REST);
+        zip = new Zip();
+        zip.stored("aZ", new byte[0]);
+        zip.stored("Az", new byte[0]);
+        is(due, "the first and the last letter", zip, REST + " 12@1:0:0");
         zip = new Zip();
         zip.stored("a/", new byte[0]);
         zip.stored("A/", new byte[0]);
@@ -209,6 +213,11 @@ public final class ArchiveTest {
         zip = one();
         zip.entries.get(0).place = zip.bytes().length - 22 - 47 - 33;
         is(due, "a header that ends behind the directory's beginning", zip, REST + " 15@0:0:0");
+        zip = new Zip();
+        zip.stored("P", new byte[0]).localName = new byte[0];
+        byte[] row = zip.bytes();
+        row[26] = 1;
+        due.is("a name that is the directory's beginning", new Desk().report(row), REST + " 15@0:0:0");
     }
 
     private static void bytes(Due due) {
@@ -263,6 +272,9 @@ public final class ArchiveTest {
         mime(due, "an extra field of a locked one, numbers told later", false, z -> { Zip.Entry e = z.entries.get(0); e.localExtra = new byte[1]; e.flags = 9; e.localSum = 1; });
         mime(due, "other bytes", false, z -> z.entries.set(0, new Zip().stored("mimetype", Zip.latin("application/epub+zip\n"))));
         mime(due, "other bytes, capitals", false, z -> z.entries.set(0, new Zip().stored("mimetype", Zip.latin("application/EPUB+zip"))));
+        Zip alone = new Zip();
+        alone.stored("mimetype", Zip.latin("application/epub+zip")).localExtra = new byte[1];
+        is(due, "an extra field, and nothing behind", alone, "22@-1:0:0 21@0:0:0");
         Zip zip = new Zip();
         zip.stored("Mimetype", Zip.latin("application/epub+zip"));
         is(due, "another name", zip, REST);

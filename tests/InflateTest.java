@@ -51,6 +51,7 @@ public final class InflateTest {
         fixedBlocks(due);
         toldBlocks(due);
         toldWrong(due);
+        longCodes(due);
         due.close();
     }
 
@@ -216,6 +217,38 @@ public final class InflateTest {
         is(due, "two distance codes", one.code("0").code("0").code("11").code("1").code("10").bytes(), "aaaaa", true);
         one = zeros(zeros(told(286, 30), 97).code("01"), 158).code("01");
         is(due, "as many codes as may be", zeros(one, 29 + 30).code("0").code("1").bytes(), "a", true);
+    }
+
+    /** A told block's beginning with each length told by itself: lengths 0 to 12 have codes of four bits, the others of five. */
+    private static Bits told(int[] letters, int[] distances) {
+        Bits bits = new Bits().number(1, 1).number(2, 2).number(letters.length - 257, 5).number(distances.length - 1, 5).number(15, 4);
+        int[] order = {16, 17, 18, 0, 8, 7, 9, 6, 10, 5, 11, 4, 12, 3, 13, 2, 14, 1, 15};
+        for (int symbol : order) {
+            bits.number(symbol < 13 ? 4 : 5, 3);
+        }
+        for (int[] row : new int[][] {letters, distances}) {
+            for (int length : row) {
+                int width = length < 13 ? 4 : 5;
+                int code = length < 13 ? length : 26 + length - 13;
+                bits.code(Integer.toBinaryString(code + (1 << width)).substring(1));
+            }
+        }
+        return bits;
+    }
+
+    /** Codes of 1 to 15 bits: 0 to 13 are the letters a to n, the longest two o and the end. */
+    private static void longCodes(Due due) {
+        int[] letters = new int[257];
+        for (int i = 0; i < 15; i++) {
+            letters['a' + i] = i + 1;
+        }
+        letters[256] = 15;
+        is(due, "codes of fifteen bits", told(letters, new int[1]).code("0").code("10").code("1".repeat(13) + "0").code("1".repeat(14) + "0").code("1".repeat(15)).bytes(), "abno", true);
+        letters['o'] = 0;
+        is(due, "one code of fifteen bits is missing", told(letters, new int[1]).code("0").code("10").code("1".repeat(14) + "0").bytes(), "ab", false);
+        letters['o'] = 15;
+        letters['p'] = 15;
+        is(due, "one code of fifteen bits too many", told(letters, new int[1]).code("0").code("10").code("1".repeat(15)).bytes(), "ab", false);
     }
 
     private static void toldWrong(Due due) {

@@ -39,6 +39,7 @@ public final class ManifestTest {
         new Book().item("id='z' href='z' media-type='x/y' fallback='q'").put("E/z", "").due(due, "a lost fallback", "62 E/p.opf <item id='z'");
         new Book().item("id='z' href='z' media-type='x/y' fallback=''").put("E/z", "").due(due, "an empty fallback", "62 E/p.opf <item id='z'");
         new Book().item("id='z' href='z' media-type='x/y' fallback='z'").put("E/z", "").due(due, "itself", "63 E/p.opf <item id='z'");
+        new Book().swap(Book.PACK, "id='nav'", "id='nav' fallback='nav'").due(due, "the first item itself", "63 E/p.opf <item id='nav'");
         Book ring = new Book().item("id='y' href='y' media-type='x/y' fallback='z'").put("E/y", "").item("id='z' href='z' media-type='x/y' fallback='y'")
             .put("E/z", "").item("id='w' href='w' media-type='x/y' fallback='z'").put("E/w", "");
         ring.due(due, "a ring, and one that leads to it", "63 E/p.opf <item id='y'", "63 E/p.opf <item id='z'");
@@ -138,6 +139,10 @@ public final class ManifestTest {
         new Book().put("META-INF", "").due(due, "only behind the /", "90 META-INF");
         new Book().put("x/", "").due(due, "a wrong name", "10 x/");
         new Book().put("E/NAV.xhtml", "").due(due, "the same but for capitals", "12 E/NAV.xhtml", "90 E/NAV.xhtml");
+        Book first = new Book().drop("mimetype").put("x", "").put("mimetype", "application/epub+zip");
+        Zip ahead = first.zip();
+        ahead.entries.add(0, ahead.entries.remove(5));
+        due.is("the first entry", new Desk().report(ahead.bytes()), "90@0:0:0 21@6:0:0");
         Zip zip = new Book().zip();
         zip.stored(Book.PAGE, new byte[0]);
         zip.stored("y", new byte[0]);

@@ -120,6 +120,7 @@ public final class MetadataTest {
         new Book().meta("property='role'", "").due(due, "no text", "32 " + at);
         new Book().meta("property='role'", " &#9;\n").due(due, "blank text", "32 " + at);
         new Book().meta("property='role'", "<x>y</x>").due(due, "text in another", "32 " + at);
+        pack("<dc:identifier", "<meta/><dc:identifier").due(due, "the first element", "32 E/p.opf <meta/");
         new Book().meta("name='n' x='y'", "").due(due, "one with a name");
         new Book().swap(Book.PACK, "</manifest>", "<meta/></manifest>").due(due, "one in the manifest");
         for (String word : "alternate-script authority belongs-to-collection collection-type display-seq file-as group-position identifier-type meta-auth role source-of term title-type a11y:x dcterms:x marc:x media:x onix:x rendition:x schema:x xsd:x a11y:b:c".split(" ")) {
@@ -133,6 +134,8 @@ public final class MetadataTest {
     private void refines() {
         String at = "E/p.opf <meta property='dcterms:mod>><meta ";
         new Book().meta("property='role' refines='#uid'", "x").due(due, "refines");
+        pack("version='3.0'", "version='3.0' id='r'").meta("property='role' refines='#r'", "x").due(due, "refines the root");
+        pack("version='3.0'", "version='3.0' id='page'").due(due, "the root's id again", "58 E/p.opf <item id='page'");
         new Book().meta("property='role' refines='uid'", "x").due(due, "refines without #", "33 " + at);
         new Book().meta("property='role' refines='#u'", "x").due(due, "refines of none", "33 " + at);
         new Book().meta("property='role' refines=''", "x").due(due, "empty refines", "33 " + at);

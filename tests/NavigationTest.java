@@ -55,7 +55,7 @@ public final class NavigationTest {
         toc("<ol><li><a href='#'>x</a></li><p/></ol>").due(due, "more in a list", "71 E/nav.xhtml <ol");
         toc("<ol><li xmlns='u'/></ol>").due(due, "a li of another namespace", "71 E/nav.xhtml <ol");
         String[] wrong = {"", "<p/>", "<span>x</span>", "<a href='#'>x</a><a href='#'>x</a>", "<ol><li><a href='#'>x</a></li></ol>", "<a href='#'>x</a><p/>",
-            "<a href='#'>x</a><ol><li><a href='#'>x</a></li></ol><p/>", "<p/><a href='#'>x</a>", "<a href='#'>x</a><ol/><ol/>",
+            "<a href='#'>x</a><ol><li><a href='#'>x</a></li></ol><p/>", "<p/><a href='#'>x</a>", "<p/><ol><li><a href='#'>x</a></li></ol>", "<a href='#'>x</a><ol/><ol/>",
             "<span>x</span><p/>", "<a href='#' xmlns='u'>x</a>", "<a href='#'>x</a><ol xmlns='u'/>", "<ol/><a href='#'/>"};
         for (String inside : wrong) {
             toc("<ol><li>" + inside + "</li></ol>").due(due, "li of " + inside, "71 E/nav.xhtml <li");

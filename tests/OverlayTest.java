@@ -147,6 +147,8 @@ public final class OverlayTest {
         body(five).item("id='o2' href='o.smil' " + ITEM).meta("property='media:duration'", "10").due(due, "an item twice", "61 E/p.opf <item id='o2'");
         body(five).item("id='o2' href='o2.smil' " + ITEM).put("E/o2.smil", SMIL + "<body>" + par("clipEnd='1:00:00'") + "</body></smil>")
             .meta("property='media:duration'", "3605").due(due, "of two");
+        body(five).item("id='o2' href='o2.smil' " + ITEM).put("E/o2.smil", SMIL + "<body><par><text src='nav.xhtml'/></par></body></smil>")
+            .meta("property='media:duration'", "6.001").due(due, "of two, one of which lasts nothing", "37 " + at);
         body(five).item("id='o2' href='gone' " + ITEM).meta("property='media:duration'", "77").meta(one, "77")
             .due(due, "of one that is missing", "60 E/p.opf <item id='o2'", "36 E/p.opf <meta property='media:duration' refines");
         body(five).item("id='o2' href='gone' " + ITEM).meta("property='media:duration' refines='#o2'", "77").due(due, "not known: missing", "60 E/p.opf <item id='o2'");

@@ -107,6 +107,11 @@ public final class PathTest {
         item("../E/p.opf", "x", false);
         item("%78", "E/x", true);
         item("http://x/x", "x", false);
+        item("%g4", "x", false);
+        item("%4g", "x", false);
+        item("x%", "x", false);
+        item("x%4", "x", false);
+        item("!x", "E/!x", true);
     }
 
     /** Whether an item's path is that of the entry, which isn't told as a stray then; else the item is told as 59. */

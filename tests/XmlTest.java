@@ -210,6 +210,7 @@ public final class XmlTest {
     private void chars() {
         right("<a>\t\n\r \u007f\u0080\ud7ff\ue000\ufffd\ud800\udc00\udbff\udfff</a>");
         right("<\u00aa\ud800\udc00/>");
+        right("<\u0080/>");
         wrong("<a>\u00a4\0</a>");
         wrong("<a>\u00a4\u0008</a>");
         wrong("<a>\u00a4\u001f</a>");
@@ -221,7 +222,7 @@ public final class XmlTest {
         wrong("<a><![CDATA[\u00a4\u0001]]></a>");
         wrong("<a\u00a4\u007f/>");
         wrong("\u00a4\u0001");
-        String[] bad = {"ff", "80", "c3", "c080", "c1bf", "e28220", "e08080", "eda080", "f08080", "f4908080", "f5808080", "f8"};
+        String[] bad = {"ff", "80", "c3", "c080", "c1bf", "e28220", "e08080", "eda080", "f08080", "f4908080", "f5808080", "f8", "e08181", "e09fbf", "f0808181", "f08fbfbf", "c181"};
         for (String hex : bad) {
             ByteArrayOutputStream out = new ByteArrayOutputStream();
             out.writeBytes("<a>\u00e9".getBytes(StandardCharsets.UTF_8));
@@ -244,6 +245,7 @@ public final class XmlTest {
         right("<a xmlns:p='u'><p:b><p:c xmlns:p='v'/></p:b></a>");
         right("<a xmlns:p='u' xmlns='u' p:b='' b=''/>");
         right("<a xmlns:p='u' p='u'/>");
+        right("<a b='u' xmlns:p='u' p:c=''/>");
         right("<a xmlns:p='u' xmlns:q='u' p:q='' q:p=''/>");
         wrong("\u00a4<p:a p='u'/>");
         wrong("\u00a4<p:a/>");
@@ -316,9 +318,9 @@ public final class XmlTest {
 
     /** What stands behind a document's last byte is another entry's. */
     private void neighbours() {
-        String[] ends = {"<a>\u00c3", "<a>\u00e2\u0082", "<a>\r", "<a/>\r", "<a", "<a>&am"};
-        String[] begins = {"\u00a9</a>", "\u00ac</a>", "\n</a>", "\n", "/>", "p;</a>"};
-        String[] due = {"30@0:1:4", "30@0:1:4", "30@0:2:1", "40@0:1:1", "30@0:1:3", "30@0:1:4"};
+        String[] ends = {"<a>\u00c3", "<a>\u00e2\u0082", "<a>\r", "<a/>\r", "<a", "<a>&am", "\u00ef\u00bb"};
+        String[] begins = {"\u00a9</a>", "\u00ac</a>", "\n</a>", "\n", "/>", "p;</a>", "\u00bf<a/>"};
+        String[] due = {"30@0:1:4", "30@0:1:4", "30@0:2:1", "40@0:1:1", "30@0:1:3", "30@0:1:4", "30@0:1:1"};
         for (int i = 0; i < ends.length; i++) {
             Zip zip = new Zip();
             zip.stored("META-INF/container.xml", Zip.latin(ends[i]));
