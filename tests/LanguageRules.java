@@ -18,7 +18,7 @@ public final class LanguageRules {
     private static final int MOST_DEEP = 8;
     private static final int MOST_LINES = 60;
     private static final int MOST_PARAMETERS = 7;
-    private static final int MOST_FIELDS = 22;
+    private static final int MOST_FIELDS = 20;
     private static final int MOST_CLASSES = 13;
 
     private final Map<ExecutableElement, Set<ExecutableElement>> calls = new LinkedHashMap<>();

@@ -1255,8 +1255,8 @@ public final class EpubDesk {
             return a == NONE || valueLength[a] == 0;
         }
 
-        /** Whether the value, split by blanks, has this word. */
-        boolean hasWord(int a, String word) {
+        /** Whether some word of the value, split by blanks, is among these words (or, not 'among', beside them). */
+        boolean hasWord(int a, String words, boolean among) {
             if (a == NONE) {
                 return false;
             }
@@ -1264,28 +1264,12 @@ public final class EpubDesk {
             int at = Bytes.skipBlanks(pool, valueAt[a], to);
             while (at < to) {
                 int stop = Bytes.wordEnd(pool, at, to);
-                if (Bytes.is(pool, at, stop - at, word)) {
+                if (Bytes.isOneOf(pool, at, stop - at, words) == among) {
                     return true;
                 }
                 at = Bytes.skipBlanks(pool, stop, to);
             }
             return false;
-        }
-
-        boolean hasOnly(int a, String words) {
-            if (a == NONE) {
-                return true;
-            }
-            int to = valueAt[a] + valueLength[a];
-            int at = Bytes.skipBlanks(pool, valueAt[a], to);
-            while (at < to) {
-                int stop = Bytes.wordEnd(pool, at, to);
-                if (!Bytes.isOneOf(pool, at, stop - at, words)) {
-                    return false;
-                }
-                at = Bytes.skipBlanks(pool, stop, to);
-            }
-            return true;
         }
 
         /** The namespace that the element itself declares for a prefix (of length 0: the default one), or NONE. */
@@ -2360,7 +2344,7 @@ public final class EpubDesk {
                 }
             }
             for (int e = metadataAt + 1; e <= doc.last[metadataAt]; e = doc.behind(e)) {
-                if (comesBack(e)) {
+                if (Manifest.comesBack(refined, e)) {
                     report.add(Report.META_CIRCLE, entry, doc.place[e]);
                 }
             }
@@ -2388,17 +2372,6 @@ public final class EpubDesk {
             return withId(doc.valueAt[refines] + 1, doc.valueLength[refines] - 1);
         }
 
-        private boolean comesBack(int e) {
-            int next = refined[e];
-            for (int n = 0; n < doc.elements && next != NONE; n++) {
-                if (next == e) {
-                    return true;
-                }
-                next = refined[next];
-            }
-            return false;
-        }
-
         /** Compares the durations that are told with those of the overlays. */
         void lookAtDurations() {
             for (int e = metadataAt + 1; e <= doc.last[metadataAt]; e = doc.behind(e)) {
@@ -2424,6 +2397,7 @@ public final class EpubDesk {
         static final int SVG = 2;
         static final int SMIL = 4;
         static final int PICTURE = 8;
+        private static final int REFERRED = 16;
         private static final String PROPERTIES = "cover-image mathml nav remote-resources scripted svg switch ";
         private static final String PICTURES = "image/gif image/jpeg image/png image/svg+xml image/webp ";
         // Items that count are 38 bytes or more of 6000, and each may have the package's folder ahead of its own bytes.
@@ -2439,7 +2413,6 @@ public final class EpubDesk {
         private final int[] entry = new int[Doc.MOST_ELEMENTS];
         private final int[] kind = new int[Doc.MOST_ELEMENTS];
         private final int[] fallback = new int[Doc.MOST_ELEMENTS];
-        private final boolean[] referred = new boolean[Doc.MOST_ELEMENTS];
         /** Paths of missing items, which have no entry to be known by. */
         private final int[] lostAt = new int[Doc.MOST_ELEMENTS];
         private final int[] lostLength = new int[Doc.MOST_ELEMENTS];
@@ -2482,7 +2455,7 @@ public final class EpubDesk {
                 link(i);
             }
             for (int i = 0; i < items; i++) {
-                if (comesBack(i)) {
+                if (comesBack(fallback, i)) {
                     tell(Report.FALLBACK_CIRCLE, i);
                 }
             }
@@ -2584,13 +2557,14 @@ public final class EpubDesk {
             }
         }
 
-        private boolean comesBack(int i) {
-            int next = fallback[i];
-            for (int n = 0; n < items && next != NONE; n++) {
-                if (next == i) {
+        /** Whether one comes back to the first by going on from each to the one that its row tells, or NONE. */
+        static boolean comesBack(int[] row, int first) {
+            int next = row[first];
+            for (int n = 0; n < row.length && next != NONE; n++) {
+                if (next == first) {
                     return true;
                 }
-                next = fallback[next];
+                next = row[next];
             }
             return false;
         }
@@ -2612,10 +2586,10 @@ public final class EpubDesk {
             int navs = 0;
             for (int i = 0; i < items; i++) {
                 int words = doc.attr(element[i], "properties");
-                if (!doc.hasOnly(words, PROPERTIES)) {
+                if (doc.hasWord(words, PROPERTIES, false)) {
                     tell(Report.PROPERTY, i);
                 }
-                if (doc.hasWord(words, "cover-image")) {
+                if (doc.hasWord(words, "cover-image ", true)) {
                     covers++;
                     int type = doc.attr(element[i], "media-type");
                     if (doc.valueLength[type] < 7
@@ -2623,7 +2597,7 @@ public final class EpubDesk {
                         tell(Report.COVER_TYPE, i);
                     }
                 }
-                if (doc.hasWord(words, "nav")) {
+                if (doc.hasWord(words, "nav ", true)) {
                     navs++;
                     navigation = navs == 1 ? i : navigation;
                     if (!isKind(i, XHTML)) {
@@ -2640,9 +2614,6 @@ public final class EpubDesk {
         }
 
         private void lookAtRefs(int spineAt) {
-            for (int i = 0; i < items; i++) {
-                referred[i] = false;
-            }
             boolean linear = false;
             for (int e = spineAt + 1; e <= doc.last[spineAt]; e = doc.behind(e)) {
                 if (!doc.is(e, Doc.OPF, "itemref")) {
@@ -2665,8 +2636,8 @@ public final class EpubDesk {
                 return;
             }
             // Two refs with the same idref are just those that come to the same item.
-            boolean again = referred[item];
-            referred[item] = true;
+            boolean again = isKind(item, REFERRED);
+            kind[item] |= REFERRED;
             if (again) {
                 report.add(Report.REF_AGAIN, pack, doc.place[e]);
             }
@@ -2838,15 +2809,15 @@ public final class EpubDesk {
                     continue;
                 }
                 int types = doc.attrIn(e, Doc.OPS, "type");
-                if (doc.hasWord(types, "toc")) {
+                if (doc.hasWord(types, "toc ", true)) {
                     tocs++;
                     firstNav[TOC] = e;
                 }
-                if (doc.hasWord(types, "page-list")) {
+                if (doc.hasWord(types, "page-list ", true)) {
                     pages++;
                     firstNav[PAGES] = e;
                 }
-                if (doc.hasWord(types, "landmarks")) {
+                if (doc.hasWord(types, "landmarks ", true)) {
                     landmarks++;
                     firstNav[LANDMARKS] = e;
                 }
