@@ -71,14 +71,14 @@ public final class CipherTest {
         desk.check(book.bytes());
         StringBuilder marked = new StringBuilder();
         int n = 0;
-        for (int i = 0; i < desk.desk.about(0); i++) {
-            if (desk.desk.entry(i, 5) == 1) {
+        for (int i = 0; i < desk.about(0); i++) {
+            if (desk.entry(i, 5) == 1) {
                 marked.append(desk.name(i)).append(' ');
                 n++;
             }
         }
         due.is(what, marked.toString().trim(), want);
-        due.is(what + ": how many", desk.desk.about(7), n);
+        due.is(what + ": how many", desk.about(7), n);
     }
 
     private void marks() {
@@ -98,10 +98,10 @@ public final class CipherTest {
         zip.entries.get(5).flags = 1;
         Desk desk = new Desk();
         desk.check(zip.bytes());
-        due.is("one that isn't read", desk.desk.entry(5, 5), 1);
-        due.is("its bytes", desk.desk.resource(5, 0), EpubDesk.NONE);
+        due.is("one that isn't read", desk.entry(5, 5), 1);
+        due.is("its bytes", desk.resource(5, 0), EpubDesk.NONE);
         desk.check(new Book().bytes());
-        due.is("nothing is left of it", desk.desk.entry(5, 5) + desk.desk.about(7), 0);
+        due.is("nothing is left of it", desk.entry(5, 5) + desk.about(7), 0);
     }
 
     private void keys() throws Exception {
@@ -132,10 +132,10 @@ public final class CipherTest {
         int wrong = 0;
         for (int k = 0; k < size; k++) {
             int want = bytes[k] & 255 ^ (k < 1040 ? key[k % 20] & 255 : 0);
-            wrong += desk.desk.resource(5, k) == want ? 0 : 1;
+            wrong += desk.resource(5, k) == want ? 0 : 1;
         }
         due.is("bytes turned back by a key of " + plain.length() + ", size " + size, wrong, 0);
-        due.is("behind the last", desk.desk.resource(5, size), EpubDesk.NONE);
-        due.is("another entry's bytes", desk.desk.resource(0, 0), 'a');
+        due.is("behind the last", desk.resource(5, size), EpubDesk.NONE);
+        due.is("another entry's bytes", desk.resource(0, 0), 'a');
     }
 }

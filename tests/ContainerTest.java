@@ -42,7 +42,7 @@ public final class ContainerTest {
         zip.stored(Book.CONTAINER, Zip.utf8(new Book().files.get(Book.CONTAINER).replace("E/p.opf", "p.opf")));
         Desk desk = new Desk();
         due.is("the first entry as the package", desk.report(zip.bytes()), "20@-1:0:0 50@0:1:1");
-        due.is("its entry", desk.desk.about(2), 0);
+        due.is("its entry", desk.about(2), 0);
         zip = new Zip();
         zip.stored(Book.CONTAINER, Zip.utf8("<x/>"));
         due.is("the first entry as the container", desk.report(zip.bytes()), "20@-1:0:0 40@0:1:1");

@@ -63,26 +63,29 @@ public final class FuzzTest {
         int n = desk.check(row);
         int wrong = 0;
         for (int i = 0; i < n; i++) {
-            int code = desk.desk.message(i, 0);
-            int severity = desk.desk.message(i, 1);
+            int code = desk.message(i, 0);
+            int severity = desk.message(i, 1);
             wrong += severity == (code < 10 ? 1 : code < 90 ? 2 : 3) ? 0 : 1;
-            wrong += desk.desk.message(i, 2) >= -1 && desk.desk.message(i, 2) < Math.max(desk.desk.about(0), 0) ? 0 : 1;
+            wrong += desk.message(i, 2) >= -1 && desk.message(i, 2) < Math.max(desk.about(0), 0) ? 0 : 1;
             wrong += severity == 1 && n != 1 ? 1 : 0;
-            wrong += i > 0 && compare(desk.desk, i - 1, i) >= 0 ? 1 : 0;
+            wrong += i > 0 && compare(desk, i - 1, i) >= 0 ? 1 : 0;
         }
-        wrong += desk.desk.message(n, 0) == -3 ? 0 : 1;
+        wrong += desk.message(n, 0) == -3 ? 0 : 1;
         due.is("what always holds", wrong, 0);
         StringBuilder all = new StringBuilder(desk.report()).append('|').append(desk.about()).append('|').append(desk.order()).append('|').append(desk.contents());
-        for (int i = 0; i < desk.desk.about(0); i++) {
-            all.append('|').append(desk.name(i)).append(java.util.Arrays.hashCode(desk.resource(i)));
+        for (int i = 0; i < desk.about(0); i++) {
+            all.append('|').append(desk.name(i));
+            for (int k = -1; k < 3 || desk.resource(i, k - 1) != EpubDesk.NONE; k += k < 30 ? 1 : 61) {
+                all.append(' ').append(desk.resource(i, k));
+            }
             for (int what = 0; what < 6; what++) {
-                all.append(' ').append(desk.desk.entry(i, what));
+                all.append(' ').append(desk.entry(i, what));
             }
         }
         return all.toString();
     }
 
-    private static int compare(EpubDesk desk, int i, int j) {
+    private static int compare(Desk desk, int i, int j) {
         for (int what : new int[] {2, 3, 4, 0}) {
             int order = Integer.compare(desk.message(i, what), desk.message(j, what));
             if (order != 0) {
@@ -121,29 +124,41 @@ public final class FuzzTest {
         }
     }
 
+    /** As many calls as are promised, of every kind, on one object. */
     private void calls() {
-        for (int run = 0; run < 60; run++) {
-            Desk desk = new Desk();
+        for (int run = 0; run < 120; run++) {
+            EpubDesk desk = new EpubDesk();
             long sum = 0;
-            for (int call = 0; call < 512; call++) {
-                EpubDesk d = desk.desk;
-                switch (random.nextInt(14)) {
-                    case 0 -> sum += d.feed(odd(), odd(), odd(), odd(), odd()) ? 1 : 0;
-                    case 1 -> sum += d.end(odd()) ? 1 : 0;
-                    case 2 -> sum += d.check();
-                    case 3 -> sum += desk.check(mutant());
-                    case 4, 5 -> sum += d.message(odd(), odd());
-                    case 6 -> sum += d.about(odd());
-                    case 7 -> sum += d.entry(odd(), odd());
-                    case 8 -> sum += d.name(odd(), odd());
-                    case 9 -> sum += d.resource(odd(), odd());
-                    case 10 -> sum += d.order(odd());
-                    case 11 -> sum += d.contents(odd(), odd());
-                    default -> sum += d.label(odd(), odd());
+            int calls = 0;
+            while (calls < 512) {
+                byte[] row = random.nextInt(60) == 0 ? mutant() : null;
+                if (row != null && calls + row.length / 20 + 3 <= 512) {
+                    calls += Desk.feed(desk, row) + 2;
+                    sum += desk.end(row.length) ? desk.check() : 0;
+                }
+                if (calls < 512) {
+                    sum += anyCall(desk);
+                    calls++;
                 }
             }
             due.yes("512 calls were answered", sum != 0);
         }
+    }
+
+    private int anyCall(EpubDesk desk) {
+        return switch (random.nextInt(22)) {
+            case 0 -> desk.feed(odd(), odd(), odd(), odd(), odd()) ? 1 : 0;
+            case 1 -> desk.end(odd()) ? 1 : 0;
+            case 2 -> random.nextInt(6) == 0 ? desk.check() : desk.about(odd());
+            case 3, 4, 5 -> desk.message(odd(), odd());
+            case 6, 7 -> desk.about(odd());
+            case 8, 9 -> desk.entry(odd(), odd());
+            case 10, 11 -> desk.name(odd(), odd());
+            case 12, 13, 14 -> desk.resource(odd(), odd());
+            case 15, 16 -> desk.order(odd());
+            case 17, 18, 19 -> desk.contents(odd(), odd());
+            default -> desk.label(odd(), odd());
+        };
     }
 
     /** As many messages as elements can be told of. */
@@ -155,7 +170,7 @@ public final class FuzzTest {
         }
         Desk desk = new Desk();
         due.is("messages of many pages", desk.check(book.bytes()), 11 * 299);
-        due.is("the last one", desk.desk.message(11 * 299 - 1, 4), page.lastIndexOf("<img/>") + 1);
-        due.is("its entry", desk.desk.message(11 * 299 - 1, 2), 16);
+        due.is("the last one", desk.message(11 * 299 - 1, 4), page.lastIndexOf("<img/>") + 1);
+        due.is("its entry", desk.message(11 * 299 - 1, 2), 16);
     }
 }

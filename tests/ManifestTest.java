@@ -29,7 +29,7 @@ public final class ManifestTest {
         new Book().swap(Book.PACK, "<manifest>", "<manifest><x/><item xmlns='u'/><x><item/></x>").due(due, "no items");
         Desk desk = new Desk();
         desk.check(new Book().item("id='z'").bytes());
-        due.is("how many items", desk.desk.about(6), 3);
+        due.is("how many items", desk.about(6), 3);
         new Book().item("id='z'").swap(Book.PACK, "idref='page'", "idref='z'")
             .due(due, "a ref to one that lacks", at, "66 E/p.opf <itemref idref='z'", "73 E/nav.xhtml <a href='t/page");
     }
@@ -78,17 +78,17 @@ public final class ManifestTest {
             .due(due, "one of another type", "65 E/p.opf <item id='nav'", "69 E/p.opf <itemref idref='nav'");
         Desk desk = new Desk();
         desk.check(new Book().swap(Book.PACK, " properties='nav'", "").bytes());
-        due.is("no navigation's entry", desk.desk.about(3), EpubDesk.NONE);
-        due.is("no contents", desk.desk.about(5), 0);
+        due.is("no navigation's entry", desk.about(3), EpubDesk.NONE);
+        due.is("no contents", desk.about(5), 0);
         desk.check(new Book().swap(Book.PACK, "id='page'", "id='page' properties='nav'").bytes());
-        due.is("the first one's entry", desk.desk.about(3), 3);
+        due.is("the first one's entry", desk.about(3), 3);
         desk.check(new Book().swap(Book.PACK, "href='nav.xhtml' media-type='application/xhtml+xml'", "href='nav.xhtml' media-type='x'").bytes());
-        due.is("the entry of one of another type", desk.desk.about(3), 3);
-        due.is("its contents", desk.desk.about(5), 0);
+        due.is("the entry of one of another type", desk.about(3), 3);
+        due.is("its contents", desk.about(5), 0);
         desk.check(new Book().swap(Book.PACK, "href='nav.xhtml'", "href='nav.xhtml#x'").bytes());
-        due.is("one without a path", desk.desk.about(3), EpubDesk.NONE);
+        due.is("one without a path", desk.about(3), EpubDesk.NONE);
         desk.check(new Book().swap(Book.PACK, "href='nav.xhtml'", "href='gone.xhtml'").bytes());
-        due.is("a missing one", desk.desk.about(3), EpubDesk.NONE);
+        due.is("a missing one", desk.about(3), EpubDesk.NONE);
     }
 
     private void refs() {
@@ -115,7 +115,7 @@ public final class ManifestTest {
         Desk desk = new Desk();
         desk.check(book.bytes());
         due.is("order: " + what, desk.order(), want);
-        due.is("order: " + what + ": how many", desk.desk.about(4), want.isEmpty() ? 0 : want.split(" ").length);
+        due.is("order: " + what + ": how many", desk.about(4), want.isEmpty() ? 0 : want.split(" ").length);
     }
 
     private void orders() {

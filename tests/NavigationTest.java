@@ -114,7 +114,7 @@ public final class NavigationTest {
         Desk desk = new Desk();
         desk.check(toc(inside).bytes());
         due.is("contents of " + inside, desk.contents(), want);
-        due.is("how many", desk.desk.about(5), want.isEmpty() ? 0 : want.split("\\|").length);
+        due.is("how many", desk.about(5), want.isEmpty() ? 0 : want.split("\\|").length);
     }
 
     private void contents() {

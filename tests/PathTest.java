@@ -25,7 +25,7 @@ public final class PathTest {
         }
         Desk desk = new Desk();
         desk.check(zip.bytes());
-        int found = desk.desk.about(2);
+        int found = desk.about(2);
         due.is("full-path " + path, found < 0 ? "-" : desk.name(found), want);
         due.is("full-path " + path + " is told", desk.report().contains("42@1:3:1") ? 1 : 0, found < 0 ? 1 : 0);
     }

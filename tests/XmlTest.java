@@ -333,6 +333,6 @@ public final class XmlTest {
         Desk desk = new Desk();
         desk.check(new Book().swap(Book.NAV, ">One<", ">" + inside + "<").bytes());
         due.is("label of " + inside, desk.label(0), want);
-        due.is("its length", desk.desk.contents(0, 2), Zip.utf8(want).length);
+        due.is("its length", desk.contents(0, 2), Zip.utf8(want).length);
     }
 }

@@ -13,6 +13,8 @@ final class Zip {
         byte[] localName;
         byte[] raw;
         int flags = 0;
+        /** Flags that stand in the local header beside those of the directory. */
+        int localFlags = 0;
         int method;
         int localMethod;
         long sum;
@@ -31,6 +33,8 @@ final class Zip {
 
     final List<Entry> entries = new ArrayList<>();
     byte[] lead = new byte[0];
+    /** Bytes between the directory and the end. */
+    byte[] gap = new byte[0];
     byte[] comment = new byte[0];
     byte[] behind = new byte[0];
     int countChange = 0;
@@ -93,7 +97,7 @@ final class Zip {
             places.add(e.place >= 0 ? e.place : out.size());
             four(out, e.sign);
             two(out, 20);
-            two(out, e.flags);
+            two(out, e.flags | e.localFlags);
             two(out, e.localMethod);
             four(out, 0);
             four(out, e.localSum);
@@ -110,6 +114,7 @@ final class Zip {
             header(out, entries.get(i), places.get(i));
         }
         int size = out.size() - from;
+        put(out, gap);
         four(out, 0x06054b50);
         two(out, firstDisk);
         two(out, secondDisk);
