@@ -3,10 +3,8 @@ import java.nio.charset.StandardCharsets;
 
 /** XML: what is well formed, where it is not, how much is too much, namespaces, values, texts and places. */
 public final class XmlTest {
-    /** Stands in a document where the message is due; it is no part of it. */
-    private static final char HERE = '\u00a4';
-
     private final Due due = new Due();
+    private final Xml xml = new Xml(due);
 
     public static void main(String[] args) {
         XmlTest test = new XmlTest();
@@ -26,35 +24,16 @@ public final class XmlTest {
         test.due.close();
     }
 
-    private static String report(byte[] data) {
-        Zip zip = new Zip();
-        zip.stored("mimetype", Zip.latin("application/epub+zip"));
-        zip.deflated("META-INF/container.xml", data);
-        return new Desk().report(zip.bytes());
-    }
-
-    /** The document is parsed: all that is told is that its root is no container. */
     private void right(String text) {
-        String report = report(Zip.utf8(text));
-        due.is("right: " + text, report.startsWith("40@1:") && !report.contains(" ") ? "parsed" : report, "parsed");
+        xml.right(text);
     }
 
     private void wrong(String text) {
-        told(30, text);
+        xml.told(30, text);
     }
 
     private void told(int code, String text) {
-        int at = text.indexOf(HERE);
-        String bare = text.replace(String.valueOf(HERE), "");
-        int line = 1;
-        int column = 1;
-        for (int i = 0; i < at; i += Character.charCount(bare.codePointAt(i))) {
-            char c = bare.charAt(i);
-            boolean over = c == '\n' || c == '\r' && (i + 1 >= bare.length() || bare.charAt(i + 1) != '\n');
-            line += over ? 1 : 0;
-            column = over ? 1 : column + 1;
-        }
-        due.is("wrong: " + text, report(Zip.utf8(bare)), code + "@1:" + line + ":" + column);
+        xml.told(code, text);
     }
 
     private void declarations() {
@@ -229,9 +208,9 @@ public final class XmlTest {
             for (int i = 0; i < hex.length(); i += 2) {
                 out.write(Integer.parseInt(hex.substring(i, i + 2), 16));
             }
-            due.is("bytes " + hex, report(out.toByteArray()), "30@1:1:5");
+            due.is("bytes " + hex, Xml.report(out.toByteArray()), "30@1:1:5");
             out.writeBytes("</a>".getBytes(StandardCharsets.UTF_8));
-            due.is("bytes " + hex + " amid", report(out.toByteArray()), "30@1:1:5");
+            due.is("bytes " + hex + " amid", Xml.report(out.toByteArray()), "30@1:1:5");
         }
         wrong("<a/>\u00a4\ufeff");
         right("<a>\ufeff</a>");
@@ -292,8 +271,8 @@ public final class XmlTest {
         wrong("<a>\r\r\n\n\u00e9\ud83d\ude00\u00a4&</a>");
         wrong("<a>\r\u00a4");
         wrong("<a>\r\n\u00a4");
-        due.is("the first three bytes aren't in the line", report(Zip.utf8("\ufeff<a>&</a>")), "30@1:1:4");
-        due.is("the same bytes behind them are", report(Zip.utf8("\ufeff\ufeff<a/>")), "30@1:1:1");
+        due.is("the first three bytes aren't in the line", Xml.report(Zip.utf8("\ufeff<a>&</a>")), "30@1:1:4");
+        due.is("the same bytes behind them are", Xml.report(Zip.utf8("\ufeff\ufeff<a/>")), "30@1:1:1");
     }
 
     /** Values and texts come out as they should: they are looked at through a book's label and title. */
