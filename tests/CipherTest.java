@@ -16,6 +16,15 @@ public final class CipherTest {
         test.references();
         test.marks();
         test.keys();
+        test.rootsBeside();
+        test.dataBeside();
+        test.algorithms();
+        test.uris();
+        test.notRead();
+        test.identifiers();
+        test.asTheyAre();
+        test.manyTimes();
+        test.lengths();
         test.due.close();
     }
 
@@ -137,5 +146,156 @@ public final class CipherTest {
         due.is("bytes turned back by a key of " + plain.length() + ", size " + size, wrong, 0);
         due.is("behind the last", desk.resource(5, size), EpubDesk.NONE);
         due.is("another entry's bytes", desk.resource(0, 0), 'a');
+    }
+
+    private void rootsBeside() {
+        String right = "xmlns='urn:oasis:names:tc:opendocument:xmlns:container'";
+        for (String root : new String[] {"<Encryption " + right + "/>", "<encryption/>", "<encryption xmlns='http://www.w3.org/2001/04/xmlenc#'/>", "<container " + right + "/>", "<encryption xmlns='urn:oasis:names:tc:opendocument:xmlns:containers'/>"}) {
+            whole(root).due(due, root, "80 META-INF/encryption.xml <");
+        }
+        whole("<c:encryption " + right.replace("xmlns=", "xmlns:c=") + "/>").due(due, "by a prefix");
+        whole("<!-- c -->\n <x " + right + " xmlns:x='http://www.w3.org/2001/04/xmlenc#'><x:EncryptedData/></x>").due(due, "then nothing else", "80 META-INF/encryption.xml <x ");
+        whole(OPEN + "text<y/></encryption>").due(due, "others in it");
+        new Book().put("META-INF/Encryption.xml", "<").put("encryption.xml", "<").due(due, "others beside it", "90 encryption.xml");
+    }
+
+    private void dataBeside() {
+        String data = "<x:EncryptedData/>";
+        whole(OPEN + "<y>" + data + "</y></encryption>").due(due, "one deeper");
+        whole(OPEN + "<EncryptedData/><x:encryptedData/><x:EncryptedKey/><z:EncryptedData xmlns:z='http://www.w3.org/2001/04/xmlenc'/></encryption>").due(due, "others");
+        whole(OPEN + data + "<x:EncryptedData><x:EncryptedData/></x:EncryptedData>" + data + "</encryption>")
+            .due(due, "each is told, but not those within", "81 " + AT, "81 " + AT + ">><x:EncryptedData>", "81 " + AT + ">><x:EncryptedData>>><x:EncryptedData>><x:EncryptedData");
+    }
+
+    private void algorithms() {
+        String right = "http://www.idpf.org/2008/embedding";
+        for (String algorithm : new String[] {"", right + "/", right.toUpperCase(), " " + right, right + " ", "http://www.idpf.org/2008/embeddin", "http://ns.adobe.com/pdf/enc#RC"}) {
+            data("<x:EncryptionMethod Algorithm='" + algorithm + "'/>" + refer("E/i/pic.png")).due(due, "algorithm [" + algorithm + "]", "81 " + AT);
+        }
+        data("<x:EncryptionMethod algorithm='" + right + "'/>" + refer("E/i/pic.png")).due(due, "another attribute", "81 " + AT);
+        data("<x:EncryptionMethod x:Algorithm='" + right + "'/>" + refer("E/i/pic.png")).due(due, "an attribute of a namespace", "81 " + AT);
+        data("<x:encryptionMethod Algorithm='" + right + "'/>" + refer("E/i/pic.png")).due(due, "another element", "81 " + AT);
+        data("<x:EncryptionMethod Algorithm='http&#58;//www.idpf.org/2008/embedding'>t<y/></x:EncryptionMethod>" + refer("E/i/pic.png")).due(due, "with a reference, and more in it");
+        data("<x:EncryptionMethod/>" + METHOD + refer("q")).due(due, "81, and so not 82", "81 " + AT);
+        data(METHOD + "<x:EncryptionMethod/>" + refer("E/i/pic.png")).due(due, "the second isn't looked at");
+    }
+
+    private void uris() {
+        for (String uri : new String[] {"", " ", "/E/i/pic.png", "E/i/pic.png?", "../E/i/pic.png", "i/pic.png", "META-INF/../../E/i/pic.png", "E/i/Pic.png", "E/i%2Fpic.png", "x:E/i/pic.png", ".", "E/..", "E/i", "%", "E/i/pic.png#%"}) {
+            data(METHOD + refer(uri)).due(due, "URI [" + uri + "]", "82 " + AT);
+        }
+        for (String uri : new String[] {"E/i/pic.png", "./E/i/pic.png", "E/x/../i/pic.png", "META-INF/../E/i/pic.png", "E/i/pic.png#x", "E/i/pic.png/", "%45/i/pic.png"}) {
+            marks("URI " + uri, data(METHOD + refer(uri)), "E/i/pic.png");
+        }
+        for (String uri : new String[] {"#", "#x", "META-INF/encryption.xml"}) {
+            marks("its own, " + uri, data(METHOD + refer(uri)), "META-INF/encryption.xml");
+        }
+        String far = "<x:CipherData><y><x:CipherReference URI='E/i/pic.png'/></y></x:CipherData>";
+        data(METHOD + far).due(due, "a reference deeper", "82 " + AT);
+        data(METHOD + "<y>" + refer("E/i/pic.png") + "</y>").due(due, "data deeper", "82 " + AT);
+        data(METHOD + "<x:CipherData><x:CipherValue/></x:CipherData>" + refer("E/i/pic.png")).due(due, "only the first data", "82 " + AT);
+        marks("the first reference", data(METHOD + "<x:CipherData><y/><x:CipherReference URI='mimetype'/><x:CipherReference URI='E/i/pic.png'/></x:CipherData>"), "mimetype");
+        marks("the first data", data(METHOD + "<y/>" + refer("mimetype") + refer("E/i/pic.png")), "mimetype");
+        marks("none that is missing", data(METHOD + refer("q")), "");
+    }
+
+    private void notRead() {
+        for (int i = 0; i < 2; i++) {
+            Zip zip = data(METHOD + refer("E/i/pic.png")).zip();
+            // The encryption itself, then the package.
+            zip.entries.get(i == 0 ? 6 : 2).flags = 1;
+            Desk desk = new Desk();
+            due.is("not read, " + i, desk.report(zip.bytes()), i == 0 ? "13@6:0:0" : "13@2:0:0");
+            due.is("not read, " + i + ": nothing is obfuscated", desk.about(7) + desk.entry(5, 5), 0);
+        }
+        Zip zip = data(METHOD + refer("E/i/pic.png")).zip();
+        zip.entries.get(5).sum++;
+        zip.entries.get(5).localSum++;
+        Desk desk = new Desk();
+        due.is("an obfuscated entry that isn't read", desk.report(zip.bytes()), "18@5:0:0");
+        due.is("it counts", desk.about(7), 1);
+        due.is("it is marked", desk.entry(5, 5), 1);
+        due.is("it has no bytes", desk.resource(5, 0), EpubDesk.NONE);
+    }
+
+    private void identifiers() throws Exception {
+        String pic = METHOD + refer("E/i/pic.png");
+        marks("51: no unique-identifier", data(pic).swap(Book.PACK, "unique-identifier='uid'", ""), "");
+        marks("51: no such id", data(pic).swap(Book.PACK, "unique-identifier='uid'", "unique-identifier='q'"), "");
+        marks("51: the id of another", data(pic).swap(Book.PACK, "unique-identifier='uid'", "unique-identifier='nav'"), "");
+        marks("50", data(pic).swap(Book.PACK, "version='3.0'", ""), "");
+        marks("52", data(pic).swap(Book.PACK, "<manifest>", "<x/><manifest>"), "");
+        marks("30", data(pic).put(Book.PACK, "<"), "");
+        marks("31", data(pic).swap(Book.PACK, "<manifest>", "<x>".repeat(20) + "</x>".repeat(20) + "<manifest>"), "");
+        marks("40", data(pic).swap(Book.CONTAINER, "version='1.0'", ""), "");
+        marks("41", data(pic).swap(Book.CONTAINER, "oebps", "x"), "");
+        marks("42", data(pic).swap(Book.CONTAINER, "E/p.opf", "x"), "");
+        marks("22", data(pic).drop(Book.CONTAINER), "");
+        marks("55: an identifier without a text", data(pic).swap(Book.PACK, "urn:x:1", " "), "E/i/pic.png");
+        marks("58, 53 and others don't matter", data(pic).swap(Book.PACK, "<dc:title>T</dc:title>", "<x id='nav'/>"), "E/i/pic.png");
+        // Of two with this id the first is the identifier.
+        Book two = data(pic).swap(Book.PACK, "<dc:title>", "<dc:identifier id='uid'>other</dc:identifier><dc:title>");
+        turned("the first identifier", two, "urn:x:1");
+        Book ahead = data(pic).swap(Book.PACK, "<dc:identifier id", "<dc:identifier>no</dc:identifier><dc:title id='uid'>no</dc:title><dc:identifier id");
+        turned("the first identifier with the id", ahead, "urn:x:1");
+        turned("all four blanks are left out", data(pic).swap(Book.PACK, "urn:x:1", "\t u\nr\r\nn &#13;&#10;&#9;&#32;<![CDATA[ : ]]>"), "urn:");
+        turned("other blanks stay", data(pic).swap(Book.PACK, "urn:x:1", "\u00a0x\u3000"), "\u00a0x\u3000");
+        turned("no text at all", data(pic).swap(Book.PACK, "urn:x:1", " \n "), "");
+        turned("texts of inner elements aren't its own", data(pic).swap(Book.PACK, "urn:x:1", "a<x>no</x>b"), "ab");
+    }
+
+    /** The picture's bytes as they come out, by the key of this text. */
+    private void turned(String what, Book book, String key) throws Exception {
+        Desk desk = new Desk();
+        desk.check(book.bytes());
+        byte[] sum = MessageDigest.getInstance("SHA-1").digest(Zip.utf8(key));
+        String text = "picture";
+        for (int k = 0; k < text.length(); k++) {
+            due.is(what + ": byte " + k, desk.resource(5, k), text.charAt(k) ^ sum[k] & 255);
+        }
+    }
+
+    /** Bytes are looked at as they are: an obfuscated page is parsed as it stands, and so are all the others. */
+    private void asTheyAre() throws Exception {
+        for (String name : new String[] {"mimetype", Book.CONTAINER, Book.PACK, Book.NAV, Book.PAGE, Book.PICTURE, Book.ENCRYPTION}) {
+            Book book = data(METHOD + refer(name));
+            book.due(due, name + " is obfuscated");
+            Desk desk = new Desk();
+            desk.check(book.bytes());
+            due.is(name + " is marked", desk.entry(book.entry(name), 5), 1);
+            byte[] key = MessageDigest.getInstance("SHA-1").digest(Zip.utf8("urn:x:1"));
+            due.is(name + "'s first byte", desk.resource(book.entry(name), 0), book.files.get(name).charAt(0) ^ key[0] & 255);
+            due.is(name + ": contents", desk.about(5), 3);
+        }
+    }
+
+    private void manyTimes() throws Exception {
+        String one = "<x:EncryptedData>" + METHOD + refer("E/i/pic.png") + "</x:EncryptedData>";
+        for (int times = 1; times <= 4; times++) {
+            Desk desk = new Desk();
+            desk.check(whole(OPEN + one.repeat(times) + "</encryption>").bytes());
+            due.is("told " + times + " times", desk.about(7), 1);
+            due.yes("turned once", desk.resource(5, 0) != 'p');
+            due.is("turned by the same", desk.resource(5, 0), 'p' ^ MessageDigest.getInstance("SHA-1").digest(Zip.utf8("urn:x:1"))[0] & 255);
+        }
+        Desk desk = new Desk();
+        desk.check(whole(OPEN + one + one.replace("E/i/pic.png", "mimetype") + one.replace("E/i/pic.png", "E/p.opf") + "</encryption>").bytes());
+        due.is("three", desk.about(7), 3);
+        desk.check(new Book().bytes());
+        due.is("none in the archive behind", desk.about(7), 0);
+        due.is("its bytes", desk.resource(5, 0), 'p');
+    }
+
+    /** Keys of every length around the border of a block, and resources around 1040 bytes. */
+    private void lengths() throws Exception {
+        Random random = new Random(11);
+        for (int n = 0; n <= 130; n++) {
+            String text = "\u00e9".repeat(n % 2) + "k".repeat(n);
+            key(text, text, 40, random);
+        }
+        for (int size : new int[] {1038, 1039, 1040, 1041, 1042, 1060, 6000}) {
+            key("urn:y", "urn:y", size, random);
+        }
+        key("abc", "abc", 20, random);
     }
 }

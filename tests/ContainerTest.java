@@ -33,6 +33,10 @@ public final class ContainerTest {
             + TYPE + "/>").due(due, "a prefix is as good");
         firstEntry(due);
         abouts(due);
+        versions(due);
+        rootfiles(due);
+        nothingElse(due);
+        notRead(due);
         due.close();
     }
 
@@ -68,5 +72,60 @@ public final class ContainerTest {
         desk.check(zip.bytes());
         due.is("about with a container that isn't read", desk.about(), "6 5 -1 -1 0 0 0 0 0");
         due.is("its report", desk.report(), "13@1:0:0");
+    }
+
+
+    private static void versions(Due due) {
+        for (String version : new String[] {"", "1", "1.", "1.00", "01.0", " 1.0", "1.0 ", "1.1", "2.0"}) {
+            new Book().swap(Book.CONTAINER, "version='1.0'", "version='" + version + "'").due(due, "version [" + version + "]", "40 META-INF/container.xml <");
+        }
+        new Book().swap(Book.CONTAINER, "version='1.0'", "version='&#49;.0'").due(due, "a version by a reference");
+        new Book().swap(Book.CONTAINER, "<container", "\n  <container").swap(Book.CONTAINER, "version='1.0'", "").due(due, "at the root, wherever it is", "40 META-INF/container.xml <container");
+    }
+
+    private static void rootfiles(Due due) {
+        for (String type : new String[] {"", "application/oebps-package", "application/oebps-package+xml ", "Application/oebps-package+xml", "application/oebps-package+xmlx"}) {
+            new Book().swap(Book.CONTAINER, "application/oebps-package+xml", type).due(due, "media-type [" + type + "]", "41 META-INF/container.xml <");
+        }
+        new Book().swap(Book.CONTAINER, "<rootfiles>", "<rootfiles/><rootfiles><rootfile/></rootfiles><rootfiles>").due(due, "one in the third rootfiles");
+        new Book().swap(Book.CONTAINER, "<rootfiles>", "<rootfiles><rootfile " + TYPE + "/></rootfiles><rootfiles>")
+            .due(due, "the first one has no path", "42 META-INF/container.xml <rootfile media");
+        new Book().swap(Book.CONTAINER, "</rootfiles>", "<rootfile full-path='..' " + TYPE + "/><rootfile " + TYPE + "/></rootfiles>").due(due, "the others aren't looked at");
+        new Book().swap(Book.CONTAINER, "</rootfiles>", "</rootfiles><links/><x:y xmlns:x='u'/>").due(due, "nor is anything else");
+        for (String path : new String[] {"", "/E/p.opf", "E/p.opf?", "E/ p.opf", "../E/p.opf", "E/p.op", "E/P.opf", "META-INF/p.opf", "E%2Fp.opf", "x:E/p.opf", "."}) {
+            new Book().swap(Book.CONTAINER, "E/p.opf", path).due(due, "full-path [" + path + "]", "42 META-INF/container.xml <rootfile full");
+        }
+        for (String path : new String[] {"./E/p.opf", "E/./p.opf", "x/../E/p.opf", "E/p.opf#x", "%45/p.opf", "E/p.opf/"}) {
+            new Book().swap(Book.CONTAINER, "E/p.opf", path).due(due, "full-path [" + path + "]");
+        }
+    }
+
+    /** With 40, 41 or 42 nothing of the book is told. */
+    private static void nothingElse(Due due) {
+        String[][] changes = {{"version='1.0'", "", "40", "<"}, {"oebps", "x", "41", "<"}, {"E/p.opf", "q", "42", "<rootfile full"}};
+        for (String[] change : changes) {
+            Book book = new Book().put(Book.PACK, "<").put(Book.NAV, "<").put(Book.PAGE, "<").put("x", "");
+            book.swap(Book.CONTAINER, change[0], change[1]).due(due, "nothing else with " + change[2], change[2] + " META-INF/container.xml " + change[3]);
+        }
+        new Book().put(Book.PACK, "<").put(Book.PAGE, "<").drop(Book.CONTAINER).due(due, "nothing else with 22", "22 -");
+    }
+
+    private static void notRead(Due due) {
+        int[] codes = {13, 14, 15, 16, 17, 18};
+        for (int code : codes) {
+            Zip zip = new Book().zip();
+            Zip.Entry e = zip.entries.get(1);
+            switch (code) {
+                case 13 -> e.flags = 1;
+                case 14 -> e.method = 1;
+                case 15 -> e.localSum++;
+                case 16 -> { e.packed = 99999; e.localPacked = 99999; }
+                case 17 -> { e.size++; e.localSize++; }
+                default -> { e.sum++; e.localSum++; }
+            }
+            Desk desk = new Desk();
+            due.is("a container with " + code, desk.report(zip.bytes()), code + "@1:0:0");
+            due.is("no package then", desk.about(2), EpubDesk.NONE);
+        }
     }
 }
