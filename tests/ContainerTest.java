@@ -17,7 +17,8 @@ public final class ContainerTest {
             "<rootfiles><rootfile full-path='E/p.opf' media-type='x'/></rootfiles>", "<rootfiles><rootfile full-path='E/p.opf'/></rootfiles>",
             "<rootfiles xmlns='u'><rootfile full-path='E/p.opf' " + TYPE + "/></rootfiles>",
             "<rootfiles><rootfile xmlns='u' full-path='E/p.opf' " + TYPE + "/></rootfiles>",
-            "<x><rootfiles><rootfile full-path='E/p.opf' " + TYPE + "/></rootfiles></x>",
+            "<x><rootfiles><rootfile full-path='E/p.opf' " + TYPE + "/></rootfiles></x>", "<x><rootfile full-path='E/p.opf' " + TYPE + "/></x>",
+            "<q:rootfiles xmlns:q='u'><rootfile full-path='E/p.opf' " + TYPE + "/></q:rootfiles>",
             "<rootfiles><x><rootfile full-path='E/p.opf' " + TYPE + "/></x></rootfiles>"};
         for (String text : empty) {
             new Book().put(Book.CONTAINER, OPEN + text + "</container>").due(due, "container of " + text, "41 META-INF/container.xml <");

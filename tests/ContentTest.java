@@ -163,6 +163,9 @@ public final class ContentTest {
             .due(due, "a page whose first item is of another type", "61 E/p.opf <item id='page'", "76 E/t/page.xhtml <img");
         new Book().swap(Book.PACK, "<manifest>", "<manifest><item id='z' href='nav.xhtml' media-type='application/xhtml+xml'/>").swap(Book.NAV, ">One<", "><")
             .due(due, "a navigation that another item has first", "61 E/p.opf <item id='nav'", "74 E/nav.xhtml <a href='t");
+        Desk desk = new Desk();
+        desk.check(new Book().item("id='z' href='nav.xhtml' media-type='application/xhtml+xml'").bytes());
+        due.is("its contents are taken once", desk.about(5), 3);
         due.is("it isn't parsed, once", new Desk().report(new Book().put(Book.PAGE, "<x").item(twice).item(twice.replace("'z'", "'y'")).bytes()), "61@2:12:1 61@2:13:1 30@4:1:3");
     }
 }

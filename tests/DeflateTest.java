@@ -14,6 +14,7 @@ public final class DeflateTest {
         test.distancesBeyond();
         test.signsThatAreNot();
         test.sizes();
+        test.wrongAtTheEnd();
         test.ends();
         test.lastBits();
         test.manyBlocks();
@@ -92,6 +93,17 @@ public final class DeflateTest {
         due.is("bits of a block, and three more", (bits.length() + 3) % 8, 0);
         right("a block whose beginning ends a byte", bits.stored(true, "x"), "\u0090\u0091\u0092x");
         wrong("a byte too few", new Bits().block(true, 0).align().number(2, 16).number(~2, 16).number('x', 8), "xx");
+        for (int n = 1; n < 40; n++) {
+            Bits few = new Bits().block(true, 0).align().number(n + 1, 16).number(~(n + 1), 16);
+            for (int i = 0; i < n; i++) {
+                few.number('x', 8);
+            }
+            wrong("a byte too few, of " + n, few, "x".repeat(n + 1));
+        }
+        for (int n = 0; n < 8; n++) {
+            String text = "\u0090".repeat(n);
+            right("a block that begins at any bit, " + n, new Bits().block(false, 1).letters(text).end().stored(true, "x"), text + "x");
+        }
         wrong("a byte too many", new Bits().stored(true, "x").number('x', 8), "x");
         wrong("65535", new Bits().block(true, 0).align().number(65535, 16).number(0, 16).number('x', 8), "x");
         wrong("a length alone", new Bits().block(true, 0).align().number(0, 16), "");
@@ -164,7 +176,7 @@ public final class DeflateTest {
         }
         Zip.Entry last = zip.add(Zip.latin("b"), new byte[6000], copies(6000).bytes(), 8);
         due.is("the last size is filled", new Desk().report(zip.bytes()), "20@-1:0:0 22@-1:0:0 18@3:0:0");
-        for (Bits bits : new Bits[] {copies(6001), new Bits().stored(true, noise(6001))}) {
+        for (Bits bits : new Bits[] {copies(6001), new Bits().stored(true, noise(6001)), fixed().letters("a".repeat(6001)).end()}) {
             last.raw = bits.bytes();
             last.packed = last.raw.length;
             last.localPacked = last.raw.length;
@@ -181,6 +193,34 @@ public final class DeflateTest {
             left -= now;
         }
         return bits.end();
+    }
+
+    /** What came out ahead of what is wrong has just the size, and nothing is behind: it is wrong all the same. */
+    private void wrongAtTheEnd() {
+        wrong("a distance beyond", fixed().letters("a").length(3).distance(2), "a");
+        wrong("a distance far beyond", fixed().letters("a").length(3).distance(5000), "a");
+        wrong("nothing ahead", fixed().length(3).distance(1), "");
+        for (int symbol : new int[] {286, 287}) {
+            wrong("letter " + symbol, fixed().letters("a").letter(symbol), "a");
+        }
+        for (String code : new String[] {"11110", "11111"}) {
+            wrong("distance " + code, fixed().letters("a").length(3).code(code), "a");
+        }
+        wrong("a letter more", fixed().letters("ab"), "a");
+        wrong("a copy more", fixed().letters("a").length(3).distance(1), "a");
+        wrong("a copy, less", fixed().letters("a").length(3).distance(1), "aaa");
+        wrong("a stored byte more", new Bits().stored(false, "a").stored(true, "b"), "a");
+        wrong("a letter code that isn't there", letters(256, 1).code("1"), "");
+        wrong("a distance code that isn't there", distances(1).code("11").code("1"), "a");
+        wrong("no distance code", distances(0).code("11"), "a");
+        wrong("no distance code, and bits", distances(0).code("11").code("0"), "a");
+        wrong("kind 3", new Bits().block(false, 1).letters("a").end().block(true, 3), "a");
+        wrong("a length that isn't turned over", new Bits().stored(false, "a").block(true, 0).align().number(0, 16).number(0, 16), "a");
+        // Were too many codes taken for none at all, those of the block ahead would stand, and read the rest.
+        for (int[] counts : new int[][] {{30, 0}, {31, 0}, {0, 30}, {0, 31}}) {
+            Bits bits = new Bits().block(false, 1).letters("a").end().block(true, 2).number(counts[0], 5).number(counts[1], 5).number(15, 4);
+            wrong("too many codes, and what is right by those ahead", bits.letters("b").end(), "ab");
+        }
     }
 
     /** Cut off anywhere, or with a byte behind, nothing is right any more. */

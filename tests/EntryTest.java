@@ -50,6 +50,8 @@ public final class EntryTest {
         for (String c : new String[] {"\u0080", "\u00ff", "\u0100", "\u07ff", "\u0800", "\ud7ff", "\ue000", "\ufffe", "\uffff", "\ud800\udc00", "\udbff\udfff"}) {
             name(c, true);
             name("a/" + c + "/b", true);
+            name(c + "*", false);
+            name(c + "/", false);
         }
     }
 
@@ -86,6 +88,15 @@ public final class EntryTest {
         zip.stored("a", NOTHING).extra = Zip.latin("/");
         zip.stored("b", NOTHING).comment = Zip.latin("/");
         is("names ahead of a /", zip, REST);
+        zip = new Zip();
+        zip.stored("a", NOTHING).extra = Zip.latin("x");
+        zip.stored("A", NOTHING).extra = Zip.latin("y");
+        zip.stored("a", NOTHING).comment = Zip.latin("z");
+        is("names that are alike, and what is behind them not", zip, REST + " 12@1:0:0 11@2:0:0");
+        Zip book = new Book().zip();
+        book.entries.get(2).extra = Zip.latin("/x/");
+        book.entries.get(4).extra = Zip.latin("/");
+        is("a package and a page ahead of a /", book, "");
     }
 
     private static byte[] hex(String text) {
@@ -112,7 +123,7 @@ public final class EntryTest {
         names("11, and so not 12", "12@1:0:0 11@2:0:0", "a", "A", "a");
         names("11, and so not 12, the other way", "12@1:0:0 11@2:0:0", "a", "A", "A");
         names("all letters", "12@1:0:0", "abcdefghijklmnopqrstuvwxyz", "ABCDEFGHIJKLMNOPQRSTUVWXYZ");
-        names("other signs aren't capitals", "", "@[`{", "`{@[");
+        names("other signs aren't capitals", "", "x@", "x`", "y[", "y{");
         names("other letters aren't capitals", "", "\u00e9\u0430", "\u00c9\u0410");
         names("a longer one", "", "a", "aa", "A/a");
         names("in a folder", "12@1:0:0", "a/b", "A/b");
@@ -375,6 +386,8 @@ public final class EntryTest {
         Zip alone = new Zip();
         alone.stored("mimetype", Zip.latin("application/epub+zip"));
         is("alone", alone, "22@-1:0:0");
+        first(alone).localExtra = new byte[1];
+        is("alone, with an extra field", alone, "22@-1:0:0 21@0:0:0");
         is("no entries", new Zip(), REST);
         for (String name : new String[] {"MIMETYPE", "a/mimetype", "mimetype2", "mimetyp"}) {
             Zip other = new Zip();

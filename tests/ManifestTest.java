@@ -26,6 +26,10 @@ public final class ManifestTest {
         test.chains();
         test.ordersBeside();
         test.straysBeside();
+        test.percents();
+        test.endsOfValues();
+        test.firstItems();
+        test.fullArchive();
         test.due.close();
     }
 
@@ -409,5 +413,54 @@ public final class ManifestTest {
         zip.entries.get(6).flags = 1;
         due.is("told of one that isn't read", new Desk().report(zip.bytes()), "13@6:0:0 90@6:0:0");
         new Book().put("x", "").swap(Book.PACK, " unique-identifier='uid'", "").due(due, "told with 51", "51 E/p.opf <package", "90 x");
+    }
+
+    /** A % that no two hex digits follow is bad, not missing. */
+    private void percents() {
+        for (String href : new String[] {"%", "%6", "%G1", "%1G", "%g1", "%1g", "%/1", "%1/", "%:1", "./%:1", "%@1", "%1@", "%`1", "%1`", "%%61", "% 1", "z%", "z%4", "z%4/4"}) {
+            for (String type : new String[] {"x/y", "a1/b", "11", "%41"}) {
+                new Book().item("id='z' href='" + href + "' media-type='" + type + "'").due(due, "href " + href + " ahead of " + type, "59 E/p.opf <item id='z'");
+            }
+        }
+        for (String href : new String[] {"%61", "%6A", "%fF", "%09", "%Aa", "%00", "%7f", "%20"}) {
+            new Book().item("id='z' href='" + href + "' media-type='x/y'").due(due, "href " + href, "60 E/p.opf <item id='z'");
+        }
+    }
+
+    private void endsOfValues() {
+        new Book().swap(Book.PACK, "href='i/pic.png'", "href='i/pic.png' x='#'").due(due, "an href ahead of a #");
+        new Book().swap(Book.PACK, "href='i/pic.png'", "href='i/pic.png' x='?'").due(due, "an href ahead of a ?");
+        new Book().swap(Book.PACK, "href='i/pic.png'", "href='i/pic.png' x=' '").due(due, "an href ahead of a blank");
+        new Book().swap(Book.PACK, "href='i/pic.png'", "href='i' x='/pic.png'").due(due, "an href that more would make right", "60 E/p.opf <item id='pic'", "76 E/t/page.xhtml <img", "90 E/i/pic.png");
+        new Book().swap(Book.PACK, "properties='nav'", "properties='na' x='v'").due(due, "a property that more would make right", "45 E/p.opf <item id='nav'", "64 E/p.opf <manifest");
+        new Book().swap(Book.PACK, "properties='nav'", "properties='nav' x='y'").due(due, "a property ahead of more");
+        new Book().swap(Book.PACK, "idref='nav'", "idref='na' x='v'").due(due, "an idref that more would make right", "66 E/p.opf <itemref idref='na'", "73 E/nav.xhtml <a href='#'");
+        new Book().swap(Book.PACK, "idref='nav'", "idref='nav' linear='n' x='o'").due(due, "a linear that more would make no");
+        new Book().item("id='z' href='z' media-type='image/' x='png' properties='cover-image'").put("E/z", "").due(due, "a type ahead of more", "44 E/p.opf <item id='z'");
+    }
+
+    private void firstItems() {
+        String first = "<manifest>\n";
+        new Book().swap(Book.PACK, first, first + "<item id='y' href='q' media-type='x/y'/>\n<item id='z' href='q' media-type='x/y'/>\n")
+            .due(due, "the first item is missing, and again", "60 E/p.opf <item id='y'", "60 E/p.opf <item id='z'", "61 E/p.opf <item id='z'");
+        new Book().swap(Book.PACK, first, first + "<item id='y' href='q' media-type='x/y' fallback='y' media-overlay='y' properties='cover-image x'/>\n")
+            .due(due, "the first item has all that is wrong", "60 E/p.opf <item id='y'", "63 E/p.opf <item id='y'", "24 E/p.opf <item id='y'", "44 E/p.opf <item id='y'", "45 E/p.opf <item id='y'");
+        new Book().swap(Book.PACK, "<spine>\n", "<spine>\n<itemref/>").due(due, "the first ref", "66 E/p.opf <itemref/");
+        new Book().swap(Book.PACK, "\n</spine>", "<itemref/></spine>").due(due, "the last ref", "66 E/p.opf <itemref/");
+        new Book().swap(Book.PACK, "\n</manifest>", "<item/></manifest>").due(due, "the last item", "57 E/p.opf <item/");
+    }
+
+    /** Forty entries, and paths that are none of them. */
+    private void fullArchive() {
+        Book book = new Book().item("id='z' href='z' media-type='x/y'").swap(Book.PAGE, "../nav.xhtml", "q");
+        String[] strays = new String[36];
+        for (int i = 0; i < 34; i++) {
+            book.put("s" + i, "");
+            strays[i] = "90 s" + i;
+        }
+        strays[34] = "60 E/p.opf <item id='z'";
+        strays[35] = "77 E/t/page.xhtml <a";
+        due.is("forty entries", book.files.size(), 40);
+        book.due(due, "forty entries, most of them strays", strays);
     }
 }

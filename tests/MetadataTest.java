@@ -26,6 +26,8 @@ public final class MetadataTest {
         test.metasThatAreNone();
         test.ringsOfRefines();
         test.nothingElse();
+        test.firstAndLast();
+        test.endsOfValues();
         test.due.close();
     }
 
@@ -439,5 +441,41 @@ public final class MetadataTest {
             Book book = pack(change[0], change[1]).swap(Book.PACK, "<dc:title>T</dc:title>", "").swap(Book.PACK, "id='page'", "id='nav'").put("x", "").put(Book.PAGE, "<");
             book.put(Book.ENCRYPTION, "<x/>").swap(Book.PACK, "idref='nav'", "idref='q'").due(due, "with " + change[2], change[2] + " E/p.opf <package", "80 META-INF/encryption.xml <");
         }
+    }
+
+    /** What is asked for may be the first or the last element in metadata. */
+    private void firstAndLast() {
+        String id = "<dc:identifier id='uid'>urn:x:1</dc:identifier>\n";
+        String title = "<dc:title>T</dc:title>\n";
+        String language = "<dc:language>en</dc:language>\n";
+        String modified = "<meta property='dcterms:modified'>" + MOMENT + "</meta>\n";
+        String[] all = {id, title, language, modified};
+        for (int i = 0; i < 4; i++) {
+            StringBuilder order = new StringBuilder();
+            for (int k = 0; k < 4; k++) {
+                order.append(all[(i + k) % 4]);
+            }
+            pack(id + title + language + modified, order.toString()).due(due, "order " + i);
+            pack(id + title + language + modified, order.toString().replace("\n", "")).due(due, "order " + i + ", and nothing else");
+        }
+        pack(id, "<meta id='m' refines='#m' property='role'>x</meta>" + id).due(due, "a ring first", "34 E/p.opf <meta id");
+        pack(id, "<meta property='media:duration'>x</meta>" + id).due(due, "a duration first", "37 E/p.opf <meta prop");
+        pack("</metadata>", "<meta property='media:duration'>x</meta></metadata>").due(due, "a duration last", "37 E/p.opf <meta property='media");
+        pack("</metadata>", "<meta id='m' refines='#m' property='role'>x</meta></metadata>").due(due, "a ring last", "34 E/p.opf <meta id");
+    }
+
+    /** A value ends where it ends: what stands behind it in the document is no part of it. */
+    private void endsOfValues() {
+        for (String behind : new String[] {"", " x=' y'", " x='y'", " x=':'", "\n"}) {
+            pack("unique-identifier='uid'", "unique-identifier='uid' prefix='a:'" + behind).due(due, "a second word that is missing, ahead of [" + behind + "]", "23 E/p.opf <package");
+            pack("unique-identifier='uid'", "unique-identifier='uid' prefix='a: x '" + behind).due(due, "a pair ahead of [" + behind + "]");
+            pack("unique-identifier='uid'", "unique-identifier='uid' prefix=''" + behind).due(due, "no words ahead of [" + behind + "]");
+        }
+        pack("</metadata>", "<meta property='role' x='s'>x</meta></metadata>").due(due, "a property ahead of more");
+        pack("</metadata>", "<meta property='rol' x='e'>x</meta></metadata>").due(due, "a property that more would make right", "35 E/p.opf <meta property='rol'");
+        pack("</metadata>", "<meta property='a11y:' x='e'>x</meta></metadata>").due(due, "nothing behind the :", "35 E/p.opf <meta property='a11y:'");
+        pack("</metadata>", "<meta property='role' refines='#ui' x='d'>x</meta></metadata>").due(due, "an id that more would make right", "33 E/p.opf <meta property='role'");
+        pack("<dc:title>T<", "<dc:title> <").swap(Book.PACK, "<dc:language>en", "<dc:language>en").due(due, "a text ahead of another", "53 E/p.opf <metadata");
+        pack("2024-02-29T23:59:59Z</meta>", "2024-02-29T23:59:59</meta>Z").due(due, "a moment that more would make right", "56 E/p.opf <metadata");
     }
 }

@@ -218,7 +218,7 @@ public final class NavigationTest {
     }
 
     private void labelsOfBlanks() {
-        String[][] pairs = {{"x", "x"}, {" x ", "x"}, {"\t\n\r x\t\n\r ", "x"}, {"a  b", "a b"}, {"a\r\n\t b", "a b"}, {"a&#9;&#10;&#13;&#32;b", "a b"}, {"<b> a</b><b>b </b>", "ab"}, {"<b>a </b><b> b</b>", "a b"},
+        String[][] pairs = {{"x", "x"}, {" x ", "x"}, {"\t\n\r x\t\n\r ", "x"}, {"a  b", "a b"}, {"ab  cd\n\nef ", "ab cd ef"}, {"a\r\n\t b", "a b"}, {"a&#9;&#10;&#13;&#32;b", "a b"}, {"<b> a</b><b>b </b>", "ab"}, {"<b>a </b><b> b</b>", "a b"},
             {"a<b/>b", "ab"}, {"a<b> </b>b", "a b"}, {"<b><i><u>a</u></i></b>b", "ab"}, {"a<img src='i/pic.png' alt='no'/>b", "ab"}, {"a<!-- no --><?no no?>b", "ab"}, {"<![CDATA[ a ]]>b", "a b"}, {"\u00a0", "\u00a0"},
             {" \u00a0 ", "\u00a0"}, {"\u3000a", "\u3000a"}, {"x<x xmlns='u'>y</x>", "xy"}, {"1<b>2<i>3</i>4</b>5", "12345"}};
         for (String[] pair : pairs) {

@@ -23,6 +23,10 @@ public final class OverlayTest {
         test.notKnown();
         test.ofAll();
         test.toldInThePackage();
+        test.endsOfValues();
+        test.firstEntry();
+        test.firstItem();
+        test.fullSize();
         test.due.close();
     }
 
@@ -386,5 +390,66 @@ public final class OverlayTest {
         body(five).meta("property='media:duration' name='' refines='#o'", "x").due(due, "one with a name is no meta");
         body(five).swap(Book.PACK, "</metadata>", "<x><meta property='media:duration'>x</meta></x></metadata>").due(due, "one deeper is none");
         body(five).meta("property='media:duration' refines='#o' id='m'", "5").meta("property='media:duration' refines='#m'", "5").due(due, "by another meta", "36 E/p.opf <meta property='media:duration' refines='#m'");
+    }
+
+    /** A clock ends where its value ends. */
+    private void endsOfValues() {
+        for (String behind : new String[] {":00", ":", "0", ".5", "s", "ms", "h", "5", " "}) {
+            body(par("clipEnd='5' x='" + behind + "'")).due(due, "5 ahead of " + behind);
+            body(par("clipEnd='00:05' x='" + behind + "'")).due(due, "00:05 ahead of " + behind);
+            body(par("clipEnd='0:00:05' x='" + behind + "'")).due(due, "0:00:05 ahead of " + behind);
+            body(par("clipEnd='5.' x='" + behind + "'")).due(due, "5. ahead of " + behind, "29 E/o.smil <audio");
+            body(par("clipEnd='00:05.' x='" + behind + "'")).due(due, "00:05. ahead of " + behind, "29 E/o.smil <audio");
+            body(par("clipEnd='00:' x='" + behind + "'")).due(due, "00: ahead of " + behind, "29 E/o.smil <audio");
+            body(par("clipEnd='00:0' x='" + behind + "'")).due(due, "00:0 ahead of " + behind, "29 E/o.smil <audio");
+            body(par("clipEnd='5m' x='" + behind + "'")).due(due, "5m ahead of " + behind, "29 E/o.smil <audio");
+            body(par("clipEnd='' x='" + behind + "'")).due(due, "nothing ahead of " + behind, "29 E/o.smil <audio");
+        }
+    }
+
+    /** An overlay that is the archive's first entry. */
+    private void firstEntry() {
+        for (String inside : new String[] {par("clipEnd='5'"), par("clipEnd='5'") + "<par/>", par("clipEnd='77'")}) {
+            Book book = body(inside).meta("property='media:duration' refines='#o'", "77").meta("property='media:duration'", "77").drop("mimetype");
+            java.util.Map<String, String> old = new java.util.LinkedHashMap<>(book.files);
+            book.files.clear();
+            book.files.put("E/o.smil", old.get("E/o.smil"));
+            book.files.putAll(old);
+            if (inside.contains("<par/>")) {
+                book.due(due, "wrong, and so not known", "20 -", "27 E/o.smil <par/");
+            } else if (inside.contains("77")) {
+                book.due(due, "right", "20 -");
+            } else {
+                book.due(due, "of another length", "20 -", "36 E/p.opf <meta property='media:duration' refines", "37 E/p.opf <meta property='media:duration'>");
+            }
+        }
+    }
+
+    /** An overlay that is the manifest's first item. */
+    private void firstItem() {
+        String item = "<item id='o' href='o.smil' " + ITEM + "/>\n";
+        for (String told : new String[] {"5", "77"}) {
+            Book book = body(par("clipEnd='5'")).meta("property='media:duration' refines='#o'", told).meta("property='media:duration'", told);
+            book.swap(Book.PACK, item, "").swap(Book.PACK, "<manifest>\n", "<manifest>\n" + item);
+            if (told.equals("5")) {
+                book.due(due, "the first item, right");
+            } else {
+                book.due(due, "the first item, beside", "36 E/p.opf <meta property='media:duration' refines", "37 E/p.opf <meta property='media:duration'>");
+            }
+        }
+    }
+
+    /** As many elements as there may be: each of 99 pars is looked at. */
+    private void fullSize() {
+        StringBuilder inside = new StringBuilder();
+        for (int i = 0; i < 99; i++) {
+            inside.append("<par><text src='#'/><audio src='#' clipEnd='1'/></par>");
+        }
+        whole(SMIL + "<body>" + inside + "</body></smil>").meta("property='media:duration'", "100").due(due, "99 pars");
+        whole(SMIL + "<body>" + inside + "</body></smil>").meta("property='media:duration'", "100.001").due(due, "99 pars, beside", "37 E/p.opf <meta property='media");
+        due.is("one more element", new Desk().check(whole(SMIL + "<head/><body>" + inside + "</body></smil>").bytes()), 0);
+        Desk desk = new Desk();
+        desk.check(whole(SMIL + "<head/><body>" + inside + "<seq/></body></smil>").bytes());
+        due.is("two more elements", desk.message(0, 0), 31);
     }
 }

@@ -11,6 +11,8 @@ public final class XmlEdgesTest {
         test.charsBehindNames();
         test.wideChars();
         test.charsInside();
+        test.badBytes();
+        test.fullSize();
         test.blanks();
         test.noBlanks();
         test.cutOff();
@@ -127,7 +129,7 @@ public final class XmlEdgesTest {
 
     /** Which chars there are, in everything that has chars. */
     private void charsInside() {
-        String[] around = {"<a>|</a>", "<a b='|'/>", "<a b=\"|\"/>", "<a><!--|--></a>", "<a><?p |?></a>", "<a><![CDATA[|]]></a>", "<!--|--><a/>", "<a/><?p |?>"};
+        String[] around = {"<a>|</a>", "<a b='|'/>", "<a b=\"|\"/>", "<a><!--|--></a>", "<a><?p |?></a>", "<a><![CDATA[|]]></a>", "<!--|--><a/>", "<a/><?p |?>", "<a/><!--|-->"};
         for (String text : around) {
             int at = text.indexOf('|');
             String head = text.substring(0, at);
@@ -147,6 +149,56 @@ public final class XmlEdgesTest {
             }
             right(head + "\ud800\udc00\udbff\udfff\ud83f\udfff" + tail);
         }
+    }
+
+    /** Bytes that are no chars, wherever a document may have or end with something. */
+    private void badBytes() {
+        String[] heads = {"", " ", "<a/>", "<a/> ", "<a></a>", "<a>", "<a>x", "<", "<a", "<a ", "<a b", "<a b=", "<a b='", "<a b='x'", "<a/", "<a><", "<a></", "<a></a", "<a></a ", "<!", "<!-", "<!--", "<!-- -", "<!-- --", "<?", "<?p", "<?p ", "<?p ?",
+            "<!D", "<!DOCTYPE", "<!DOCTYPE ", "<!DOCTYPE a", "<a><![", "<a><![CDATA[", "<a><![CDATA[]", "<a><![CDATA[]]", "<?xml ", "<?xml version='1.0'", "<?xml version='1.0'?", "<a>]]", "<a>&amp;", "\ufeff", "\ufeff<a/>"};
+        for (String head : heads) {
+            int at = head.length() + (head.startsWith("\ufeff") ? 0 : 1);
+            for (int bad : new int[] {0xFF, 0x80, 0xC3, 0, 1, 0x0B}) {
+                byte[] row = java.util.Arrays.copyOf(Zip.utf8(head), Zip.utf8(head).length + 1);
+                row[row.length - 1] = (byte) bad;
+                due.is("byte " + bad + " behind " + head, Xml.report(row), "30@1:1:" + at);
+                byte[] more = java.util.Arrays.copyOf(row, row.length + 2);
+                more[row.length] = '/';
+                more[row.length + 1] = '>';
+                due.is("byte " + bad + " amid " + head, Xml.report(more), "30@1:1:" + at);
+            }
+        }
+        for (String head : new String[] {"<a>&", "<a>&am", "<a>&amp", "<a>&#", "<a>&#6", "<a>&#x", "<a>&#x4", "<a></b"}) {
+            byte[] row = java.util.Arrays.copyOf(Zip.utf8(head), head.length() + 1);
+            row[head.length()] = (byte) 0xFF;
+            due.is("a byte behind " + head, Xml.report(row), "30@1:1:4");
+        }
+    }
+
+    /** As many bytes as a document may have. */
+    private void fullSize() {
+        right("<a>" + "x".repeat(5993) + "</a>");
+        right("<a/>" + " ".repeat(5996));
+        right("\n".repeat(5996) + "<a/>");
+        right("<" + "a".repeat(5997) + "/>");
+        right("<a b='" + "x".repeat(5991) + "'/>");
+        right("<!--" + "x".repeat(5989) + "--><a/>");
+        right("<a>" + "\u20ac".repeat(1997) + "xx</a>");
+        wrong("<a>" + "x".repeat(5997) + "\u00a4");
+        wrong("\n".repeat(6000) + "\u00a4");
+        wrong(" ".repeat(6000) + "\u00a4");
+        wrong("<a/>" + "\r".repeat(5995) + "\u00a4x");
+        wrong("<!--" + "-x".repeat(2998) + "\u00a4");
+        wrong("<" + "a".repeat(5999) + "\u00a4");
+        wrong("<a>" + "\r\n".repeat(2998) + "\u00a4&");
+        StringBuilder many = new StringBuilder("<a>");
+        for (int i = 0; i < 71; i++) {
+            many.append("<b");
+            for (char c = 'a'; c < 'q'; c++) {
+                many.append(' ').append(c).append("=''");
+            }
+            many.append("/>");
+        }
+        right(many + "</a>");
     }
 
     /** Each of the four blanks, and several, wherever blanks may be. */
@@ -325,7 +377,7 @@ public final class XmlEdgesTest {
     }
 
     private void textsAndCdata() {
-        for (String inside : new String[] {"]", "]]", "]>", "] ]>", "]]&gt;", "&#93;]>", "]]<b/>>", "]]<!---->>", "]]<?p?>>", "]]<![CDATA[]]>>", ">", "\"'", "--", "?>", "<![CDATA[]]>]>"}) {
+        for (String inside : new String[] {"]", "]]", "]>", "] ]>", "]]&gt;", "]]&amp;>", "]&lt;]>", "&#93;]>", "]]<b/>>", "]]<!---->>", "]]<?p?>>", "]]<![CDATA[]]>>", ">", "\"'", "--", "?>", "<![CDATA[]]>]>"}) {
             right("<a>" + inside + "</a>");
         }
         wrong("<a>]]\u00a4></a>");

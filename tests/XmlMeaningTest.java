@@ -26,6 +26,9 @@ public final class XmlMeaningTest {
         test.firstThreeBytes();
         test.whatIsRead();
         test.notParsed();
+        test.namespacesOfOthers();
+        test.doctypes();
+        test.mostElements();
         test.due.close();
     }
 
@@ -90,6 +93,10 @@ public final class XmlMeaningTest {
         wrong("\u00a4<a xml:b='' xml:b=''/>");
         wrong("\u00a4<a xmlns:p='" + XML + "' xml:b='' p:b=''/>");
         right("<a xmlns:a='u' a='' a:a=''/>");
+        right("<a a='' xmlns:a='u' a:a=''/>");
+        right("<p:a p='' xmlns:p='u'/>");
+        right("<r xmlns:p='u'><p:a p='' p:p=''/></r>");
+        right("<a p='u' xmlns:p='v' q='' xmlns:q='v'/>");
     }
 
     /** When the > or / of an element's beginning has come: not ahead of what is wrong before that, but ahead of what is behind. */
@@ -346,5 +353,72 @@ public final class XmlMeaningTest {
         zip.entries.get(3).flags = 1;
         zip.entries.get(4).flags = 1;
         due.is("what isn't read", new Desk().report(zip.bytes()), "13@3:0:0 13@4:0:0 13@6:0:0");
+    }
+
+    /** Where one namespace is asked for, no other one that is known will do. */
+    private void namespacesOfOthers() {
+        String[] all = {XML, "urn:oasis:names:tc:opendocument:xmlns:container", OPF, "http://purl.org/dc/elements/1.1/", "http://www.w3.org/1999/xhtml", "http://www.idpf.org/2007/ops", "http://www.w3.org/ns/SMIL",
+            "http://www.w3.org/2001/04/xmlenc#", "u"};
+        String smil = "<smil xmlns='http://www.w3.org/ns/SMIL' version='3.0'><body><par><text src='nav.xhtml'/></par></body></smil>";
+        String data = "<encryption xmlns='urn:oasis:names:tc:opendocument:xmlns:container'><x:EncryptedData xmlns:x='http://www.w3.org/2001/04/xmlenc#'/></encryption>";
+        for (String other : all) {
+            if (!other.equals(all[1])) {
+                new Book().swap(Book.CONTAINER, all[1], other).due(due, "a container of " + other, "40 META-INF/container.xml <");
+                new Book().put(Book.ENCRYPTION, data.replace(all[1], other)).due(due, "an encryption of " + other, "80 META-INF/encryption.xml <");
+            }
+            if (!other.equals(OPF)) {
+                new Book().swap(Book.PACK, OPF, other).due(due, "a package of " + other, "50 E/p.opf <");
+            }
+            if (!other.equals(all[3])) {
+                new Book().swap(Book.PACK, "<dc:title>", "<dc:title xmlns:dc='" + other + "'>").due(due, "a title of " + other, "53 E/p.opf <metadata");
+            }
+            if (!other.equals(all[4])) {
+                new Book().put(Book.PAGE, "<html xmlns='" + other + "'><img/></html>").due(due, "a page of " + other, "75 E/t/page.xhtml <");
+            }
+            if (!other.equals(all[5])) {
+                new Book().swap(Book.NAV, all[5], other).due(due, "a type of " + other, "70 E/nav.xhtml <html");
+            }
+            if (!other.equals(all[6])) {
+                new Book().item("id='o' href='o' media-type='application/smil+xml'").put("E/o", smil.replace(all[6], other)).due(due, "an overlay of " + other, "26 E/o <");
+            }
+            if (!other.equals(all[7])) {
+                new Book().put(Book.ENCRYPTION, data.replace(all[7], other)).due(due, "data of " + other);
+            }
+        }
+        new Book().put(Book.ENCRYPTION, data).due(due, "data of its own", "81 META-INF/encryption.xml <x:");
+    }
+
+    private void doctypes() {
+        Book book = new Book().put(Book.ENCRYPTION, "<encryption xmlns='urn:oasis:names:tc:opendocument:xmlns:container'/>");
+        for (String name : new String[] {Book.CONTAINER, Book.PACK, Book.NAV, Book.PAGE, Book.ENCRYPTION}) {
+            book.put(name, "\ufeff<?xml version='1.0'?><!DOCTYPE x>" + book.files.get(name));
+        }
+        book.due(due, "each document may have one");
+    }
+
+    /** As many elements as a document may have, with something that none of them is. */
+    private void mostElements() {
+        String lost = "<meta property='role' refines='#q'>x</meta></metadata>";
+        new Book().swap(Book.PACK, "</metadata>", lost).swap(Book.PACK, "</spine>", "<itemref idref='q'/></spine>" + "<x/>".repeat(285))
+            .due(due, "a package", "33 E/p.opf <meta property='role'", "66 E/p.opf <itemref idref='q'");
+        new Book().put(Book.PAGE, "<html xmlns='http://www.w3.org/1999/xhtml'>" + "<b/>".repeat(297) + "<img/>\n<a href='q'/></html>").due(due, "a page", "76 E/t/page.xhtml <img", "77 E/t/page.xhtml <a");
+        new Book().item("id='o' href='o' media-type='application/smil+xml'").meta("property='media:duration' refines='#o'", "1")
+            .put("E/o", "<smil xmlns='http://www.w3.org/ns/SMIL' version='3.0'><body>" + "<seq/>".repeat(297) + "<par/></body></smil>")
+            .due(due, "an overlay", mostOf("27 E/o ", 297));
+        new Book().swap(Book.CONTAINER, "</rootfiles>", "</rootfiles>" + "<x/>".repeat(297)).due(due, "a container");
+        new Book().swap(Book.CONTAINER, "</rootfiles>", "</rootfiles>" + "<x/>".repeat(297)).swap(Book.CONTAINER, "media-type", "x").due(due, "a container without a package", "41 META-INF/container.xml <");
+        new Book().put(Book.ENCRYPTION, "<encryption xmlns='urn:oasis:names:tc:opendocument:xmlns:container'>" + "<x/>".repeat(299) + "</encryption>").due(due, "an encryption");
+    }
+
+    /** So many messages at elements seq, and one at the par behind them. */
+    private static String[] mostOf(String start, int n) {
+        String[] all = new String[n + 1];
+        StringBuilder steps = new StringBuilder(start + "<seq");
+        for (int i = 0; i < n; i++) {
+            all[i] = steps.toString();
+            steps.append(">><seq");
+        }
+        all[n] = start + "<par";
+        return all;
     }
 }
