@@ -195,20 +195,24 @@ public final class DeflateTest {
         return bits.end();
     }
 
-    /** What came out ahead of what is wrong has just the size, and nothing is behind: it is wrong all the same. */
+    /** What came out ahead of what is wrong has just the size, and nothing or the end is behind: it is wrong all the same. */
     private void wrongAtTheEnd() {
-        wrong("a distance beyond", fixed().letters("a").length(3).distance(2), "a");
-        wrong("a distance far beyond", fixed().letters("a").length(3).distance(5000), "a");
-        wrong("nothing ahead", fixed().length(3).distance(1), "");
-        for (int symbol : new int[] {286, 287}) {
-            wrong("letter " + symbol, fixed().letters("a").letter(symbol), "a");
+        for (String end : new String[] {"", "0000000"}) {
+            wrong("a distance beyond", fixed().letters("a").length(3).distance(2).code(end), "a");
+            wrong("a distance far beyond", fixed().letters("a").length(3).distance(5000).code(end), "a");
+            wrong("nothing ahead", fixed().length(3).distance(1).code(end), "");
+            for (int symbol : new int[] {286, 287}) {
+                wrong("letter " + symbol, fixed().letters("a").letter(symbol).code(end), "a");
+                wrong("letter " + symbol + " and a distance", fixed().letters("a").letter(symbol).distance(1).code(end), "a");
+            }
+            for (String code : new String[] {"11110", "11111"}) {
+                wrong("distance " + code, fixed().letters("a").length(3).code(code).code(end), "a");
+                wrong("distance " + code + " and more bits", fixed().letters("a").length(3).code(code).number(0, 14).code(end), "a");
+            }
+            wrong("a letter more", fixed().letters("ab").code(end), "a");
+            wrong("a copy more", fixed().letters("a").length(3).distance(1).code(end), "a");
+            wrong("a copy, less", fixed().letters("a").length(3).distance(1).code(end), "aaa");
         }
-        for (String code : new String[] {"11110", "11111"}) {
-            wrong("distance " + code, fixed().letters("a").length(3).code(code), "a");
-        }
-        wrong("a letter more", fixed().letters("ab"), "a");
-        wrong("a copy more", fixed().letters("a").length(3).distance(1), "a");
-        wrong("a copy, less", fixed().letters("a").length(3).distance(1), "aaa");
         wrong("a stored byte more", new Bits().stored(false, "a").stored(true, "b"), "a");
         wrong("a letter code that isn't there", letters(256, 1).code("1"), "");
         wrong("a distance code that isn't there", distances(1).code("11").code("1"), "a");

@@ -110,6 +110,16 @@ public final class LeftoverTest {
         return new Book().item(ITEM).put("E/o.smil", text).meta("property='media:duration' refines='#o'", "5").meta("property='media:duration'", "5");
     }
 
+    private static Book overlayFirst(String inside) {
+        Book book = overlay("");
+        Map<String, String> old = new LinkedHashMap<>(book.files);
+        book.files.clear();
+        book.files.put("E/o.smil", SMIL + "<body>" + inside + "</body></smil>");
+        old.remove("E/o.smil");
+        book.files.putAll(old);
+        return book;
+    }
+
     private void overlays() {
         String par = "<par><text src='nav.xhtml'/><audio src='i/pic.png' clipEnd='5'/></par>";
         put("an overlay", overlay(SMIL + "<body>" + par + "<seq>" + par + "</seq></body></smil>"));
@@ -118,6 +128,8 @@ public final class LeftoverTest {
         put("an overlay of nothing", overlay(SMIL + "</smil>"));
         put("an overlay of a head", overlay(SMIL + "<head/></smil>"));
         put("an overlay that is no overlay", overlay("<x/>"));
+        put("an overlay first, and wrong", overlayFirst("<par/>"));
+        put("an overlay first, and right", overlayFirst(par));
         put("durations without an overlay", new Book().meta("property='media:duration'", "5"));
     }
 
@@ -218,5 +230,26 @@ public final class LeftoverTest {
         }
         due.is("until the next check", desk.check(), 1);
         due.is("which takes its place", desk.name(3, 0), EpubDesk.NONE);
+        Zip zip = new Zip();
+        zip.stored("first", Zip.latin("abc"));
+        zip.deflated("second", Zip.latin("defg"));
+        EpubDesk other = new EpubDesk();
+        Desk.feed(other, zip.bytes());
+        other.end(zip.bytes().length);
+        other.check();
+        for (int round = 0; round < 4; round++) {
+            // As many bytes as the archive has, so that all of it would be written over.
+            for (int at = 0; at < zip.bytes().length; at += 20) {
+                other.feed(-1, -1, -1, -1, -1);
+            }
+            due.is("a small archive's name stays, round " + round, other.name(1, 0), 's');
+            due.is("its length stays", other.entry(1, 4), 6);
+            due.is("a size stays", other.entry(1, 0), 4);
+            due.is("a method stays", other.entry(1, 2), 8);
+            due.is("whether it is read stays", other.entry(1, 3), 1);
+            due.is("bytes stay", other.resource(1, 3), 'g');
+            due.is("messages stay", other.message(0, 0), 20);
+            due.yes("an end", other.end(100));
+        }
     }
 }

@@ -207,6 +207,10 @@ public final class NavigationTest {
         toc("<ol><li><a href='i/pic.png'>x</a></li></ol>").swap(Book.PACK, "</spine>", "<itemref idref='pic'/></spine>").due(due, "a ref with 69", "69 E/p.opf <itemref idref='pic'");
         toc("<ol><li><a href='i/pic.png'>x</a></li></ol>").item("id='z' href='i/pic.png' media-type='application/xhtml+xml'").put(Book.PICTURE, "<html xmlns='http://www.w3.org/1999/xhtml'/>").swap(Book.PACK, "</spine>", "<itemref idref='z'/></spine>")
             .due(due, "a ref's item that isn't the first of its path", "61 E/p.opf <item id='z'");
+        toc("<ol><li><a href='t/page.xhtml'>x</a></li></ol>").swap(Book.PACK, "href='t/page.xhtml'", "href='t/page.xhtml#'")
+            .due(due, "a ref whose item has 59", at, "77 E/nav.xhtml <a", "59 E/p.opf <item id='page'", "90 E/t/page.xhtml");
+        toc("<ol><li><a href='t/page.xhtml'>x</a></li></ol>").drop(Book.PAGE).due(due, "a ref whose item has 60", at, "77 E/nav.xhtml <a", "60 E/p.opf <item id='page'");
+        toc("<ol><li><a href='t/page.xhtml'>x</a></li></ol>").swap(Book.PACK, "id='page' ", "").due(due, "a ref whose item has 57", at, "77 E/nav.xhtml <a", "57 E/p.opf <item href", "66 E/p.opf <itemref idref='page'", "90 E/t/page.xhtml");
         toc("<ol><li><a href='mimetype'>x</a></li></ol>").due(due, "a missing one", at, "77 E/nav.xhtml <a");
         toc("<ol><li><a href='../mimetype'>x</a></li></ol>").due(due, "one that is no item's", at, "77 E/nav.xhtml <a");
         toc("<ol><li><a href='t/page.xhtml?x'>x</a></li></ol>").due(due, "a bad one", at, "77 E/nav.xhtml <a");
