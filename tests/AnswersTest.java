@@ -107,14 +107,16 @@ public final class AnswersTest {
         String none = "6 6 -1 -1 0 0 0 0 0";
         pack("22", new Book().drop(Book.CONTAINER), "5 5 -1 -1 0 0 0 0 0");
         pack("30 of the container", new Book().swap(Book.CONTAINER, "</container>", ""), none);
-        pack("31 of the container", new Book().swap(Book.CONTAINER, "<rootfiles>", "<x>".repeat(20) + "</x>".repeat(20) + "<rootfiles>"), none);
+        pack("31 of the container", new Book().swap(Book.CONTAINER, "<rootfiles>", "<x>".repeat(20) + "</x>".repeat(20) + "<rootfiles>"),
+            none);
         pack("40", new Book().swap(Book.CONTAINER, "version='1.0'", ""), none);
         pack("41", new Book().swap(Book.CONTAINER, "oebps", "oebp"), none);
         pack("42, without a path", new Book().swap(Book.CONTAINER, "full-path='E/p.opf'", ""), none);
         pack("42, bad", new Book().swap(Book.CONTAINER, "E/p.opf", "/E/p.opf"), none);
         pack("42, missing", new Book().swap(Book.CONTAINER, "E/p.opf", "E/q.opf"), none);
         pack("30 of the package", new Book().swap(Book.PACK, "</package>", ""), "6 6 2 -1 0 0 0 0 0");
-        pack("31 of the package", new Book().swap(Book.PACK, "<spine>", "<x>".repeat(20) + "</x>".repeat(20) + "<spine>"), "6 6 2 -1 0 0 0 0 0");
+        pack("31 of the package", new Book().swap(Book.PACK, "<spine>", "<x>".repeat(20) + "</x>".repeat(20) + "<spine>"),
+            "6 6 2 -1 0 0 0 0 0");
         pack("50", new Book().swap(Book.PACK, "version='3.0'", ""), "6 6 2 -1 0 0 0 0 13");
         pack("52", new Book().swap(Book.PACK, "<spine>", "<x/><spine>"), "6 6 2 -1 0 0 0 0 14");
         pack("51", new Book().swap(Book.PACK, "unique-identifier='uid'", ""), "6 6 2 3 2 3 3 0 13");
@@ -136,11 +138,13 @@ public final class AnswersTest {
         pack("no navigation", new Book().swap(Book.PACK, " properties='nav'", ""), "6 6 2 -1 2 0 3 0 13");
         pack("59", new Book().swap(Book.PACK, "href='nav.xhtml'", "href='nav.xhtml#'"), "6 6 2 -1 1 0 3 0 13");
         pack("60", new Book().swap(Book.PACK, "href='nav.xhtml'", "href='na.xhtml'"), "6 6 2 -1 1 0 3 0 13");
-        pack("65", new Book().swap(Book.PACK, "application/xhtml+xml' properties='nav'", "text/html' properties='nav'"), "6 6 2 3 2 0 3 0 13");
+        pack("65", new Book().swap(Book.PACK, "application/xhtml+xml' properties='nav'", "text/html' properties='nav'"),
+            "6 6 2 3 2 0 3 0 13");
         pack("75", new Book().put(Book.NAV, "<x/>"), "6 6 2 3 2 0 3 0 13");
         pack("not parsed", new Book().put(Book.NAV, "<x>"), "6 6 2 3 2 0 3 0 13");
         pack("two", new Book().swap(Book.PACK, "id='page'", "id='page' properties='nav'"), "6 6 2 3 2 3 3 0 13");
-        pack("the first of two has 59", new Book().swap(Book.PACK, "href='nav.xhtml'", "href='/'").swap(Book.PACK, "id='page'", "id='page' properties='nav'"), "6 6 2 -1 1 0 3 0 13");
+        pack("the first of two has 59", new Book().swap(Book.PACK, "href='nav.xhtml'", "href='/'").swap(Book.PACK, "id='page'",
+            "id='page' properties='nav'"), "6 6 2 -1 1 0 3 0 13");
     }
 
     private void entries() {

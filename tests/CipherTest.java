@@ -43,8 +43,10 @@ public final class CipherTest {
     private void roots() {
         whole(OPEN + "</encryption>").due(due, "nothing in it");
         whole("<encryption/>").due(due, "no namespace", "80 META-INF/encryption.xml <");
-        whole("<container xmlns='urn:oasis:names:tc:opendocument:xmlns:container'/>").due(due, "another root", "80 META-INF/encryption.xml <");
-        whole("<x:encryption xmlns:x='http://www.w3.org/2001/04/xmlenc#'><x:EncryptedData/></x:encryption>").due(due, "another namespace, nothing else", "80 META-INF/encryption.xml <");
+        whole("<container xmlns='urn:oasis:names:tc:opendocument:xmlns:container'/>")
+            .due(due, "another root", "80 META-INF/encryption.xml <");
+        whole("<x:encryption xmlns:x='http://www.w3.org/2001/04/xmlenc#'><x:EncryptedData/></x:encryption>")
+            .due(due, "another namespace, nothing else", "80 META-INF/encryption.xml <");
         due.is("not well formed", new Desk().report(whole("<a>").bytes()), "30@6:1:4");
         whole(OPEN + "<EncryptedData/><y><x:EncryptedData/></y></encryption>").due(due, "none of these");
     }
@@ -57,17 +59,21 @@ public final class CipherTest {
         data("<EncryptionMethod/>" + METHOD + "<x:EncryptionMethod/>" + refer("E/i/pic.png")).due(due, "the first of its namespace");
         data("<y>" + METHOD + "</y>").due(due, "one deeper", "81 " + AT);
         data(refer("E/i/pic.png") + METHOD).due(due, "in any order");
-        data("").swap(Book.CONTAINER, "E/p.opf", "q").due(due, "without a package, too", "42 META-INF/container.xml <rootfile full", "81 " + AT);
+        data("").swap(Book.CONTAINER, "E/p.opf", "q").due(due, "without a package, too", "42 META-INF/container.xml <rootfile full", "81 "
+            + AT);
         data("").swap(Book.PACK, "3.0", "2.0").due(due, "with 50, too", "50 E/p.opf <package", "81 " + AT);
         data("").swap(Book.CONTAINER, "version='1.0'", "").due(due, "with 40, too", "40 META-INF/container.xml <", "81 " + AT);
         data("").drop(Book.CONTAINER).due(due, "without a container, too", "22 -", "81 " + AT);
     }
 
     private void references() {
-        String[] wrong = {"", "<x:CipherData/>", "<x:CipherReference URI='E/i/pic.png'/>", "<x:CipherData><x:CipherReference/></x:CipherData>", refer(""), refer("/E/i/pic.png"),
+        String[] wrong = {"", "<x:CipherData/>", "<x:CipherReference URI='E/i/pic.png'/>",
+            "<x:CipherData><x:CipherReference/></x:CipherData>", refer(""), refer("/E/i/pic.png"),
             refer("pic.png"), refer("../E/i/pic.png"), refer("E/i/pic.png?"), "<x:CipherData/>" + refer("E/i/pic.png"),
-            "<x:CipherData><x:CipherReference/><x:CipherReference URI='E/i/pic.png'/></x:CipherData>", "<CipherData><x:CipherReference URI='E/i/pic.png'/></CipherData>",
-            "<x:CipherData><CipherReference URI='E/i/pic.png'/></x:CipherData>", "<x:CipherData><x:CipherReference x:URI='E/i/pic.png'/></x:CipherData>",
+            "<x:CipherData><x:CipherReference/><x:CipherReference URI='E/i/pic.png'/></x:CipherData>",
+                "<CipherData><x:CipherReference URI='E/i/pic.png'/></CipherData>",
+            "<x:CipherData><CipherReference URI='E/i/pic.png'/></x:CipherData>",
+                "<x:CipherData><x:CipherReference x:URI='E/i/pic.png'/></x:CipherData>",
             "<x:CipherData><x:CipherReference uri='E/i/pic.png'/></x:CipherData>"};
         for (String text : wrong) {
             data(METHOD + text).due(due, "reference " + text, "82 " + AT);
@@ -101,7 +107,8 @@ public final class CipherTest {
         marks("with 30", data(pic).swap(Book.PACK, "<spine>", ""), "");
         marks("without a package", data(pic).drop(Book.CONTAINER), "");
         marks("its own name", data(METHOD + refer("#")), "META-INF/encryption.xml");
-        marks("several, one twice", whole(OPEN + "<x:EncryptedData>" + pic + "</x:EncryptedData><x:EncryptedData>" + pic + "</x:EncryptedData><x:EncryptedData>" + METHOD
+        marks("several, one twice", whole(OPEN + "<x:EncryptedData>" + pic + "</x:EncryptedData><x:EncryptedData>" + pic
+            + "</x:EncryptedData><x:EncryptedData>" + METHOD
             + refer("mimetype") + "</x:EncryptedData><x:EncryptedData/></encryption>"), "mimetype E/i/pic.png");
         Zip zip = data(pic).zip();
         zip.entries.get(5).flags = 1;
@@ -150,11 +157,14 @@ public final class CipherTest {
 
     private void rootsBeside() {
         String right = "xmlns='urn:oasis:names:tc:opendocument:xmlns:container'";
-        for (String root : new String[] {"<Encryption " + right + "/>", "<encryption/>", "<encryption xmlns='http://www.w3.org/2001/04/xmlenc#'/>", "<container " + right + "/>", "<encryption xmlns='urn:oasis:names:tc:opendocument:xmlns:containers'/>"}) {
+        for (String root : new String[] {"<Encryption " + right + "/>", "<encryption/>",
+            "<encryption xmlns='http://www.w3.org/2001/04/xmlenc#'/>", "<container " + right + "/>",
+            "<encryption xmlns='urn:oasis:names:tc:opendocument:xmlns:containers'/>"}) {
             whole(root).due(due, root, "80 META-INF/encryption.xml <");
         }
         whole("<c:encryption " + right.replace("xmlns=", "xmlns:c=") + "/>").due(due, "by a prefix");
-        whole("<!-- c -->\n <x " + right + " xmlns:x='http://www.w3.org/2001/04/xmlenc#'><x:EncryptedData/></x>").due(due, "then nothing else", "80 META-INF/encryption.xml <x ");
+        whole("<!-- c -->\n <x " + right + " xmlns:x='http://www.w3.org/2001/04/xmlenc#'><x:EncryptedData/></x>")
+            .due(due, "then nothing else", "80 META-INF/encryption.xml <x ");
         whole(OPEN + "text<y/></encryption>").due(due, "others in it");
         new Book().put("META-INF/Encryption.xml", "<").put("encryption.xml", "<").due(due, "others beside it", "90 encryption.xml");
     }
@@ -164,27 +174,34 @@ public final class CipherTest {
         whole(OPEN + "<y>" + data + "</y></encryption>").due(due, "one deeper");
         whole(OPEN + "<EncryptedData/><x:encryptedData/><x:EncryptedKey/><z:EncryptedData xmlns:z='http://www.w3.org/2001/04/xmlenc'/></encryption>").due(due, "others");
         whole(OPEN + data + "<x:EncryptedData><x:EncryptedData/></x:EncryptedData>" + data + "</encryption>")
-            .due(due, "each is told, but not those within", "81 " + AT, "81 " + AT + ">><x:EncryptedData>", "81 " + AT + ">><x:EncryptedData>>><x:EncryptedData>><x:EncryptedData");
+            .due(due, "each is told, but not those within", "81 " + AT, "81 " + AT + ">><x:EncryptedData>", "81 " + AT
+                + ">><x:EncryptedData>>><x:EncryptedData>><x:EncryptedData");
     }
 
     private void algorithms() {
         String right = "http://www.idpf.org/2008/embedding";
-        for (String algorithm : new String[] {"", right + "/", right.toUpperCase(), " " + right, right + " ", "http://www.idpf.org/2008/embeddin", "http://ns.adobe.com/pdf/enc#RC"}) {
-            data("<x:EncryptionMethod Algorithm='" + algorithm + "'/>" + refer("E/i/pic.png")).due(due, "algorithm [" + algorithm + "]", "81 " + AT);
+        for (String algorithm : new String[] {"", right + "/", right.toUpperCase(), " " + right, right + " ",
+            "http://www.idpf.org/2008/embeddin", "http://ns.adobe.com/pdf/enc#RC"}) {
+            data("<x:EncryptionMethod Algorithm='" + algorithm + "'/>" + refer("E/i/pic.png"))
+                .due(due, "algorithm [" + algorithm + "]", "81 " + AT);
         }
         data("<x:EncryptionMethod algorithm='" + right + "'/>" + refer("E/i/pic.png")).due(due, "another attribute", "81 " + AT);
-        data("<x:EncryptionMethod x:Algorithm='" + right + "'/>" + refer("E/i/pic.png")).due(due, "an attribute of a namespace", "81 " + AT);
+        data("<x:EncryptionMethod x:Algorithm='" + right + "'/>" + refer("E/i/pic.png"))
+            .due(due, "an attribute of a namespace", "81 " + AT);
         data("<x:encryptionMethod Algorithm='" + right + "'/>" + refer("E/i/pic.png")).due(due, "another element", "81 " + AT);
-        data("<x:EncryptionMethod Algorithm='http&#58;//www.idpf.org/2008/embedding'>t<y/></x:EncryptionMethod>" + refer("E/i/pic.png")).due(due, "with a reference, and more in it");
+        data("<x:EncryptionMethod Algorithm='http&#58;//www.idpf.org/2008/embedding'>t<y/></x:EncryptionMethod>" + refer("E/i/pic.png"))
+            .due(due, "with a reference, and more in it");
         data("<x:EncryptionMethod/>" + METHOD + refer("q")).due(due, "81, and so not 82", "81 " + AT);
         data(METHOD + "<x:EncryptionMethod/>" + refer("E/i/pic.png")).due(due, "the second isn't looked at");
     }
 
     private void uris() {
-        for (String uri : new String[] {"", " ", "/E/i/pic.png", "E/i/pic.png?", "../E/i/pic.png", "i/pic.png", "META-INF/../../E/i/pic.png", "E/i/Pic.png", "E/i%2Fpic.png", "x:E/i/pic.png", ".", "E/..", "E/i", "%", "E/i/pic.png#%"}) {
+        for (String uri : new String[] {"", " ", "/E/i/pic.png", "E/i/pic.png?", "../E/i/pic.png", "i/pic.png",
+            "META-INF/../../E/i/pic.png", "E/i/Pic.png", "E/i%2Fpic.png", "x:E/i/pic.png", ".", "E/..", "E/i", "%", "E/i/pic.png#%"}) {
             data(METHOD + refer(uri)).due(due, "URI [" + uri + "]", "82 " + AT);
         }
-        for (String uri : new String[] {"E/i/pic.png", "./E/i/pic.png", "E/x/../i/pic.png", "META-INF/../E/i/pic.png", "E/i/pic.png#x", "E/i/pic.png/", "%45/i/pic.png"}) {
+        for (String uri : new String[] {"E/i/pic.png", "./E/i/pic.png", "E/x/../i/pic.png", "META-INF/../E/i/pic.png", "E/i/pic.png#x",
+            "E/i/pic.png/", "%45/i/pic.png"}) {
             marks("URI " + uri, data(METHOD + refer(uri)), "E/i/pic.png");
         }
         for (String uri : new String[] {"#", "#x", "META-INF/encryption.xml"}) {
@@ -194,7 +211,8 @@ public final class CipherTest {
         data(METHOD + far).due(due, "a reference deeper", "82 " + AT);
         data(METHOD + "<y>" + refer("E/i/pic.png") + "</y>").due(due, "data deeper", "82 " + AT);
         data(METHOD + "<x:CipherData><x:CipherValue/></x:CipherData>" + refer("E/i/pic.png")).due(due, "only the first data", "82 " + AT);
-        marks("the first reference", data(METHOD + "<x:CipherData><y/><x:CipherReference URI='mimetype'/><x:CipherReference URI='E/i/pic.png'/></x:CipherData>"), "mimetype");
+        marks("the first reference", data(METHOD
+            + "<x:CipherData><y/><x:CipherReference URI='mimetype'/><x:CipherReference URI='E/i/pic.png'/></x:CipherData>"), "mimetype");
         marks("the first data", data(METHOD + "<y/>" + refer("mimetype") + refer("E/i/pic.png")), "mimetype");
         marks("none that is missing", data(METHOD + refer("q")), "");
     }
@@ -236,9 +254,11 @@ public final class CipherTest {
         // Of two with this id the first is the identifier.
         Book two = data(pic).swap(Book.PACK, "<dc:title>", "<dc:identifier id='uid'>other</dc:identifier><dc:title>");
         turned("the first identifier", two, "urn:x:1");
-        Book ahead = data(pic).swap(Book.PACK, "<dc:identifier id", "<dc:identifier>no</dc:identifier><dc:title id='uid'>no</dc:title><dc:identifier id");
+        Book ahead = data(pic).swap(Book.PACK, "<dc:identifier id",
+            "<dc:identifier>no</dc:identifier><dc:title id='uid'>no</dc:title><dc:identifier id");
         turned("the first identifier with the id", ahead, "urn:x:1");
-        turned("all four blanks are left out", data(pic).swap(Book.PACK, "urn:x:1", "\t u\nr\r\nn &#13;&#10;&#9;&#32;<![CDATA[ : ]]>"), "urn:");
+        turned("all four blanks are left out", data(pic).swap(Book.PACK, "urn:x:1", "\t u\nr\r\nn &#13;&#10;&#9;&#32;<![CDATA[ : ]]>"),
+            "urn:");
         turned("other blanks stay", data(pic).swap(Book.PACK, "urn:x:1", "\u00a0x\u3000"), "\u00a0x\u3000");
         turned("no text at all", data(pic).swap(Book.PACK, "urn:x:1", " \n "), "");
         turned("texts of inner elements aren't its own", data(pic).swap(Book.PACK, "urn:x:1", "a<x>no</x>b"), "ab");
@@ -276,10 +296,12 @@ public final class CipherTest {
             desk.check(whole(OPEN + one.repeat(times) + "</encryption>").bytes());
             due.is("told " + times + " times", desk.about(7), 1);
             due.yes("turned once", desk.resource(5, 0) != 'p');
-            due.is("turned by the same", desk.resource(5, 0), 'p' ^ MessageDigest.getInstance("SHA-1").digest(Zip.utf8("urn:x:1"))[0] & 255);
+            due.is("turned by the same", desk.resource(5, 0),
+                'p' ^ MessageDigest.getInstance("SHA-1").digest(Zip.utf8("urn:x:1"))[0] & 255);
         }
         Desk desk = new Desk();
-        desk.check(whole(OPEN + one + one.replace("E/i/pic.png", "mimetype") + one.replace("E/i/pic.png", "E/p.opf") + "</encryption>").bytes());
+        desk.check(whole(OPEN + one + one.replace("E/i/pic.png", "mimetype") + one.replace("E/i/pic.png", "E/p.opf")
+            + "</encryption>").bytes());
         due.is("three", desk.about(7), 3);
         desk.check(new Book().bytes());
         due.is("none in the archive behind", desk.about(7), 0);

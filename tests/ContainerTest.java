@@ -7,17 +7,21 @@ public final class ContainerTest {
         Due due = new Due();
         new Book().drop(Book.CONTAINER).due(due, "no container", "22 -");
         String[] roots = {"<x xmlns='urn:oasis:names:tc:opendocument:xmlns:container' version='1.0'/>", "<container version='1.0'/>",
-            "<container xmlns='u' version='1.0'/>", OPEN.replace("1.0", "1.1") + "</container>", OPEN.replace(" version='1.0'", "") + "</container>",
+            "<container xmlns='u' version='1.0'/>", OPEN.replace("1.0", "1.1") + "</container>", OPEN.replace(" version='1.0'", "")
+                + "</container>",
             OPEN.replace("1.0", " 1.0") + "</container>",
-            OPEN.replace("version", "p:version").replace(" p:", " xmlns:p='urn:oasis:names:tc:opendocument:xmlns:container' p:") + "</container>"};
+            OPEN.replace("version", "p:version").replace(" p:", " xmlns:p='urn:oasis:names:tc:opendocument:xmlns:container' p:")
+                + "</container>"};
         for (String root : roots) {
             new Book().put(Book.CONTAINER, root).due(due, root, "40 META-INF/container.xml <");
         }
         String[] empty = {"", "<rootfiles/>", "<rootfile full-path='E/p.opf' " + TYPE + "/>",
-            "<rootfiles><rootfile full-path='E/p.opf' media-type='x'/></rootfiles>", "<rootfiles><rootfile full-path='E/p.opf'/></rootfiles>",
+            "<rootfiles><rootfile full-path='E/p.opf' media-type='x'/></rootfiles>",
+                "<rootfiles><rootfile full-path='E/p.opf'/></rootfiles>",
             "<rootfiles xmlns='u'><rootfile full-path='E/p.opf' " + TYPE + "/></rootfiles>",
             "<rootfiles><rootfile xmlns='u' full-path='E/p.opf' " + TYPE + "/></rootfiles>",
-            "<x><rootfiles><rootfile full-path='E/p.opf' " + TYPE + "/></rootfiles></x>", "<x><rootfile full-path='E/p.opf' " + TYPE + "/></x>",
+            "<x><rootfiles><rootfile full-path='E/p.opf' " + TYPE + "/></rootfiles></x>", "<x><rootfile full-path='E/p.opf' " + TYPE
+                + "/></x>",
             "<q:rootfiles xmlns:q='u'><rootfile full-path='E/p.opf' " + TYPE + "/></q:rootfiles>",
             "<rootfiles><x><rootfile full-path='E/p.opf' " + TYPE + "/></x></rootfiles>"};
         for (String text : empty) {
@@ -26,11 +30,13 @@ public final class ContainerTest {
         new Book().swap(Book.CONTAINER, "full-path='E/p.opf' ", "").due(due, "no full-path", "42 META-INF/container.xml <rootfile media");
         new Book().swap(Book.CONTAINER, "E/p.opf", "../p").due(due, "a bad path", "42 META-INF/container.xml <rootfile full");
         new Book().swap(Book.CONTAINER, "E/p.opf", "p.opf").due(due, "a missing package", "42 META-INF/container.xml <rootfile full");
-        new Book().swap(Book.CONTAINER, "<rootfile ", "<rootfile full-path='gone' media-type='x'/><rootfile ").due(due, "the first of its type counts");
+        new Book().swap(Book.CONTAINER, "<rootfile ", "<rootfile full-path='gone' media-type='x'/><rootfile ")
+            .due(due, "the first of its type counts");
         new Book().swap(Book.CONTAINER, "<rootfiles>", "<rootfiles/><x/><rootfiles>").due(due, "several rootfiles");
         new Book().swap(Book.CONTAINER, "<rootfile ", "<rootfile full-path='gone' " + TYPE + "/><rootfile ")
             .due(due, "only the first is looked at", "42 META-INF/container.xml <rootfile full");
-        new Book().swap(Book.CONTAINER, "<rootfiles>", "<rootfiles><q:rootfile xmlns:q='urn:oasis:names:tc:opendocument:xmlns:container' full-path='E/p.opf' "
+        new Book().swap(Book.CONTAINER, "<rootfiles>",
+            "<rootfiles><q:rootfile xmlns:q='urn:oasis:names:tc:opendocument:xmlns:container' full-path='E/p.opf' "
             + TYPE + "/>").due(due, "a prefix is as good");
         firstEntry(due);
         abouts(due);
@@ -78,23 +84,31 @@ public final class ContainerTest {
 
     private static void versions(Due due) {
         for (String version : new String[] {"", "1", "1.", "1.00", "01.0", " 1.0", "1.0 ", "1.1", "2.0"}) {
-            new Book().swap(Book.CONTAINER, "version='1.0'", "version='" + version + "'").due(due, "version [" + version + "]", "40 META-INF/container.xml <");
+            new Book().swap(Book.CONTAINER, "version='1.0'", "version='" + version + "'")
+                .due(due, "version [" + version + "]", "40 META-INF/container.xml <");
         }
         new Book().swap(Book.CONTAINER, "version='1.0'", "version='&#49;.0'").due(due, "a version by a reference");
-        new Book().swap(Book.CONTAINER, "<container", "\n  <container").swap(Book.CONTAINER, "version='1.0'", "").due(due, "at the root, wherever it is", "40 META-INF/container.xml <container");
+        new Book().swap(Book.CONTAINER, "<container", "\n  <container").swap(Book.CONTAINER, "version='1.0'", "")
+            .due(due, "at the root, wherever it is", "40 META-INF/container.xml <container");
     }
 
     private static void rootfiles(Due due) {
-        for (String type : new String[] {"", "application/oebps-package", "application/oebps-package+xml ", "Application/oebps-package+xml", "application/oebps-package+xmlx"}) {
-            new Book().swap(Book.CONTAINER, "application/oebps-package+xml", type).due(due, "media-type [" + type + "]", "41 META-INF/container.xml <");
+        for (String type : new String[] {"", "application/oebps-package", "application/oebps-package+xml ", "Application/oebps-package+xml",
+            "application/oebps-package+xmlx"}) {
+            new Book().swap(Book.CONTAINER, "application/oebps-package+xml", type)
+                .due(due, "media-type [" + type + "]", "41 META-INF/container.xml <");
         }
-        new Book().swap(Book.CONTAINER, "<rootfiles>", "<rootfiles/><rootfiles><rootfile/></rootfiles><rootfiles>").due(due, "one in the third rootfiles");
+        new Book().swap(Book.CONTAINER, "<rootfiles>", "<rootfiles/><rootfiles><rootfile/></rootfiles><rootfiles>")
+            .due(due, "one in the third rootfiles");
         new Book().swap(Book.CONTAINER, "<rootfiles>", "<rootfiles><rootfile " + TYPE + "/></rootfiles><rootfiles>")
             .due(due, "the first one has no path", "42 META-INF/container.xml <rootfile media");
-        new Book().swap(Book.CONTAINER, "</rootfiles>", "<rootfile full-path='..' " + TYPE + "/><rootfile " + TYPE + "/></rootfiles>").due(due, "the others aren't looked at");
+        new Book().swap(Book.CONTAINER, "</rootfiles>", "<rootfile full-path='..' " + TYPE + "/><rootfile " + TYPE + "/></rootfiles>")
+            .due(due, "the others aren't looked at");
         new Book().swap(Book.CONTAINER, "</rootfiles>", "</rootfiles><links/><x:y xmlns:x='u'/>").due(due, "nor is anything else");
-        for (String path : new String[] {"", "/E/p.opf", "E/p.opf?", "E/ p.opf", "../E/p.opf", "E/p.op", "E/P.opf", "META-INF/p.opf", "E%2Fp.opf", "x:E/p.opf", "."}) {
-            new Book().swap(Book.CONTAINER, "E/p.opf", path).due(due, "full-path [" + path + "]", "42 META-INF/container.xml <rootfile full");
+        for (String path : new String[] {"", "/E/p.opf", "E/p.opf?", "E/ p.opf", "../E/p.opf", "E/p.op", "E/P.opf", "META-INF/p.opf",
+            "E%2Fp.opf", "x:E/p.opf", "."}) {
+            new Book().swap(Book.CONTAINER, "E/p.opf", path).due(due, "full-path [" + path + "]",
+                "42 META-INF/container.xml <rootfile full");
         }
         for (String path : new String[] {"./E/p.opf", "E/./p.opf", "x/../E/p.opf", "E/p.opf#x", "%45/p.opf", "E/p.opf/"}) {
             new Book().swap(Book.CONTAINER, "E/p.opf", path).due(due, "full-path [" + path + "]");
@@ -106,7 +120,8 @@ public final class ContainerTest {
         String[][] changes = {{"version='1.0'", "", "40", "<"}, {"oebps", "x", "41", "<"}, {"E/p.opf", "q", "42", "<rootfile full"}};
         for (String[] change : changes) {
             Book book = new Book().put(Book.PACK, "<").put(Book.NAV, "<").put(Book.PAGE, "<").put("x", "");
-            book.swap(Book.CONTAINER, change[0], change[1]).due(due, "nothing else with " + change[2], change[2] + " META-INF/container.xml " + change[3]);
+            book.swap(Book.CONTAINER, change[0], change[1]).due(due, "nothing else with " + change[2], change[2]
+                + " META-INF/container.xml " + change[3]);
         }
         new Book().put(Book.PACK, "<").put(Book.PAGE, "<").drop(Book.CONTAINER).due(due, "nothing else with 22", "22 -");
     }

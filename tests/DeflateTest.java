@@ -80,9 +80,11 @@ public final class DeflateTest {
         for (int i = 0; i < 16; i++) {
             Bits bits = new Bits().block(true, 0).align().number(2, 16).number(~2 ^ 1 << i, 16).number('x', 8).number('x', 8);
             wrong("bit " + i + " of the length turned over", bits, "xx");
-            wrong("bit " + i + " of the length", new Bits().block(true, 0).align().number(2 ^ 1 << i, 16).number(~2, 16).number('x', 8).number('x', 8), "xx");
+            wrong("bit " + i + " of the length", new Bits().block(true, 0).align().number(2 ^ 1 << i, 16).number(~2, 16).number('x', 8)
+                .number('x', 8), "xx");
         }
-        wrong("a length that isn't turned over", new Bits().block(true, 0).align().number(2, 16).number(2, 16).number('x', 8).number('x', 8), "xx");
+        wrong("a length that isn't turned over", new Bits().block(true, 0).align().number(2, 16).number(2, 16).number('x', 8).number('x',
+            8), "xx");
         Bits bits = new Bits().block(true, 0).align('1').number(1, 16).number(~1, 16).number('x', 8);
         right("the rest of the byte is skipped, whatever it has", bits, "x");
         // Six letters of nine bits make a block end with a byte: then nothing is skipped but what the next one begins.
@@ -113,20 +115,24 @@ public final class DeflateTest {
     private void lengthsOfCopies() {
         for (int length = 3; length <= 258; length++) {
             right("a copy of " + length, fixed().letters("a").length(length).distance(1).end(), "a".repeat(length + 1));
-            right("a copy of " + length + " by two", fixed().letters("ab").length(length).distance(2).end(), "ab".repeat(130).substring(0, length + 2));
+            right("a copy of " + length + " by two", fixed().letters("ab").length(length).distance(2).end(), "ab".repeat(130).substring(0,
+                length + 2));
         }
         right("258 by the code before the last", fixed().letters("a").letter(284).number(31, 5).distance(1).end(), "a".repeat(259));
     }
 
     private void distancesOfCopies() {
-        int[] edges = {1, 2, 3, 4, 5, 6, 7, 8, 9, 12, 13, 16, 17, 24, 25, 32, 33, 48, 49, 64, 65, 96, 97, 128, 129, 192, 193, 256, 257, 384, 385, 512, 513, 768, 769, 1024, 1025,
+        int[] edges = {1, 2, 3, 4, 5, 6, 7, 8, 9, 12, 13, 16, 17, 24, 25, 32, 33, 48, 49, 64, 65, 96, 97, 128, 129, 192, 193, 256, 257, 384,
+            385, 512, 513, 768, 769, 1024, 1025,
             1536, 1537, 2048, 2049, 3072, 3073, 4096, 4097, 5997};
         for (int distance : edges) {
             String text = noise(distance);
             String copied = text.repeat(4).substring(0, distance + 3);
-            right("all the way back, " + distance, new Bits().stored(false, text).block(true, 1).length(3).distance(distance).end(), copied);
+            right("all the way back, " + distance, new Bits().stored(false, text).block(true, 1).length(3).distance(distance).end(),
+                copied);
             String shorter = text.substring(1);
-            wrong("one further, " + distance, new Bits().stored(false, shorter).block(true, 1).length(3).distance(distance).end(), shorter + "abc");
+            wrong("one further, " + distance, new Bits().stored(false, shorter).block(true, 1).length(3).distance(distance).end(), shorter
+                + "abc");
         }
         right("a copy of a copy", fixed().letters("ab").length(4).distance(2).length(5).distance(3).end(), "ababab" + "babba");
     }
@@ -222,7 +228,8 @@ public final class DeflateTest {
         wrong("a length that isn't turned over", new Bits().stored(false, "a").block(true, 0).align().number(0, 16).number(0, 16), "a");
         // Were too many codes taken for none at all, those of the block ahead would stand, and read the rest.
         for (int[] counts : new int[][] {{30, 0}, {31, 0}, {0, 30}, {0, 31}}) {
-            Bits bits = new Bits().block(false, 1).letters("a").end().block(true, 2).number(counts[0], 5).number(counts[1], 5).number(15, 4);
+            Bits bits = new Bits().block(false, 1).letters("a").end().block(true, 2).number(counts[0], 5).number(counts[1], 5).number(15,
+                4);
             wrong("too many codes, and what is right by those ahead", bits.letters("b").end(), "ab");
         }
     }
@@ -231,7 +238,8 @@ public final class DeflateTest {
     private void ends() {
         String text = "some data, some data, \u0090\u0091 some data";
         Bits told = toldLetters().code("000000000").code("1");
-        byte[][] rows = {new Bits().stored(false, "ab").stored(true, "cd").bytes(), fixed().letters("some").length(9).distance(4).end().bytes(), told.bytes(), Zip.deflate(Zip.latin(text))};
+        byte[][] rows = {new Bits().stored(false, "ab").stored(true, "cd").bytes(), fixed().letters("some").length(9).distance(4)
+            .end().bytes(), told.bytes(), Zip.deflate(Zip.latin(text))};
         String[] texts = {"abcd", "somesomesomes", "aaaaaaaaa", text};
         for (int i = 0; i < rows.length; i++) {
             is("row " + i, rows[i], texts[i], true);
@@ -253,8 +261,10 @@ public final class DeflateTest {
             Bits bits = fixed().letters("\u0090".repeat(n)).end();
             int length = bits.length();
             is("an end at bit " + length % 8, bits.align('1').bytes(), "\u0090".repeat(n), true);
-            is("an end at bit " + length % 8 + ", and a byte", Arrays.copyOf(bits.bytes(), bits.bytes().length + 1), "\u0090".repeat(n), false);
-            is("an end at bit " + length % 8 + ", less a byte", Arrays.copyOf(bits.bytes(), bits.bytes().length - 1), "\u0090".repeat(n), false);
+            is("an end at bit " + length % 8 + ", and a byte", Arrays.copyOf(bits.bytes(), bits.bytes().length + 1), "\u0090".repeat(n),
+                false);
+            is("an end at bit " + length % 8 + ", less a byte", Arrays.copyOf(bits.bytes(), bits.bytes().length - 1), "\u0090".repeat(n),
+                false);
         }
     }
 
@@ -269,13 +279,16 @@ public final class DeflateTest {
             bits.stored(false, i % 2 == 0 ? "" : "x");
         }
         right("many stored blocks", bits.stored(true, ""), "x".repeat(100));
-        right("a copy from a block ahead", new Bits().block(false, 1).letters("abc").end().block(true, 1).length(3).distance(3).end(), "abcabc");
+        right("a copy from a block ahead", new Bits().block(false, 1).letters("abc").end().block(true, 1).length(3).distance(3).end(),
+            "abcabc");
         Bits mixed = new Bits().stored(false, "ab").block(false, 1).letters("c").end().stored(false, "d").block(true, 1).letters("e").end();
         right("stored and fixed in turn", mixed, "abcde");
         Bits told = new Bits().block(false, 2).toldAll(257, 1).zeros(97).told(1).zeros(158).told(1).told(0).code("001");
         right("fixed codes behind told ones", told.block(true, 1).letters("bc").length(3).distance(4).end(), "aabcaab");
-        Bits first = new Bits().block(false, 1).letters("bc").end().block(false, 2).toldAll(257, 1).zeros(97).told(1).zeros(158).told(1).told(0).code("001");
-        right("told codes behind fixed ones, and others behind them", first.block(true, 2).toldAll(257, 1).zeros(98).told(1).zeros(157).told(1).told(0).code("01"), "bcaab");
+        Bits first = new Bits().block(false, 1).letters("bc").end().block(false, 2).toldAll(257, 1).zeros(97).told(1).zeros(158).told(1)
+            .told(0).code("001");
+        right("told codes behind fixed ones, and others behind them", first.block(true, 2).toldAll(257, 1).zeros(98).told(1).zeros(157)
+            .told(1).told(0).code("01"), "bcaab");
     }
 
     /** A told block with so many codes, of which a and the end have one bit each; the rest have none. */
@@ -328,14 +341,18 @@ public final class DeflateTest {
     }
 
     private void repeats() {
-        wrong("16 with nothing ahead", all(257, 1).told(16).number(0, 2).zeros(94).told(1).zeros(158).told(1).told(0).code("0").code("1"), "a");
-        right("17 with nothing ahead", all(257, 1).told(17).number(7, 3).zeros(87).told(1).zeros(158).told(1).told(0).code("0").code("1"), "a");
+        wrong("16 with nothing ahead", all(257, 1).told(16).number(0, 2).zeros(94).told(1).zeros(158).told(1).told(0).code("0").code("1"),
+            "a");
+        right("17 with nothing ahead", all(257, 1).told(17).number(7, 3).zeros(87).told(1).zeros(158).told(1).told(0).code("0").code("1"),
+            "a");
         right("18 with nothing ahead", toldLetters().code("0").code("1"), "a");
-        right("16 behind a 0", all(257, 1).told(0).told(16).number(3, 2).zeros(90).told(1).zeros(158).told(1).told(0).code("0").code("1"), "a");
+        right("16 behind a 0", all(257, 1).told(0).told(16).number(3, 2).zeros(90).told(1).zeros(158).told(1).told(0).code("0").code("1"),
+            "a");
         right("16 behind an 18", all(257, 1).zeros(91).told(16).number(3, 2).told(1).zeros(158).told(1).told(0).code("0").code("1"), "a");
         right("16 over letters, to the last", all(257, 1).zeros(253).told(2).told(16).number(0, 2).told(0).code("00").code("11"), "\u00fd");
         right("16 of six", all(257, 1).zeros(97).told(3).told(16).number(3, 2).zeros(152).told(3).told(0).code("000").code("111"), "a");
-        right("16 of distances, with a letter's length", all(257, 4).zeros(97).told(2).zeros(156).lengths(new int[] {2, 2, 2}).told(16).number(1, 2).code("00").code("11"), "a");
+        right("16 of distances, with a letter's length", all(257, 4).zeros(97).told(2).zeros(156).lengths(new int[] {2, 2, 2}).told(16)
+            .number(1, 2).code("00").code("11"), "a");
         right("16 over the border", all(257, 4).zeros(97).told(2).zeros(156).told(2).told(16).number(3, 2).code("00").code("11"), "a");
         right("17 over the border", all(259, 2).zeros(97).told(1).zeros(158).told(1).told(17).number(1, 3).code("0").code("1"), "a");
         right("18 over the border", all(270, 5).zeros(97).told(1).zeros(158).told(1).told(18).number(7, 7).code("0").code("1"), "a");
@@ -345,7 +362,8 @@ public final class DeflateTest {
         wrong("18 one beyond the end", all(257, 10).zeros(97).told(1).zeros(158).told(1).told(18).number(0, 7).code("0").code("1"), "a");
         wrong("18 far beyond the end", all(257, 1).zeros(97).told(1).zeros(158).told(1).told(18).number(127, 7).code("0").code("1"), "a");
         right("16 to the end", all(257, 4).zeros(97).told(1).zeros(158).told(1).told(0).told(16).number(0, 2).code("0").code("1"), "a");
-        wrong("16 one beyond the end", all(257, 3).zeros(97).told(1).zeros(158).told(1).told(0).told(16).number(0, 2).code("0").code("1"), "a");
+        wrong("16 one beyond the end", all(257, 3).zeros(97).told(1).zeros(158).told(1).told(0).told(16).number(0, 2).code("0").code("1"),
+            "a");
         wrong("a repeat cut off", all(257, 1).zeros(97).told(1).zeros(158).told(1).told(18), "");
     }
 
@@ -405,7 +423,8 @@ public final class DeflateTest {
         right("one of one bit", distances(1).code("11").code("0").code("10"), "aaaa");
         right("one of one bit, not used", distances(1).code("10"), "a");
         wrong("one of one bit, the code that isn't there", distances(1).code("11").code("1").code("10"), "aaaa");
-        wrong("one of one bit, the code that isn't there, with bits enough", distances(1).code("11").code("1").code("10").code("0".repeat(30)), "aaaa");
+        wrong("one of one bit, the code that isn't there, with bits enough", distances(1).code("11").code("1").code("10")
+            .code("0".repeat(30)), "aaaa");
         right("one of one bit, the second", distances(0, 1).code("0").code("11").code("0").code("10"), "aaaaa");
         right("one of one bit, the last of thirty", distances(new int[30 - 1]).code("10"), "a");
         for (int length = 2; length <= 15; length++) {

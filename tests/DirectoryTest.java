@@ -118,7 +118,8 @@ public final class DirectoryTest {
 
     /** Numbers of four are without sign, and their sum doesn't wrap around. */
     private void wrapAround() {
-        long[][] beyond = {{0, 4294967295L}, {1, 4294967295L}, {47, 4294967295L}, {4294967295L, 0}, {4294967295L, 1}, {4294967295L, 39}, {4294967295L, 4294967295L},
+        long[][] beyond = {{0, 4294967295L}, {1, 4294967295L}, {47, 4294967295L}, {4294967295L, 0}, {4294967295L, 1}, {4294967295L, 39},
+            {4294967295L, 4294967295L},
             {2147483648L, 2147483648L}, {2147483647L, 2147483647L}, {0, 2147483648L}, {2147483648L, 0}, {4294967249L, 47 + 39}};
         for (long[] pair : beyond) {
             for (int n = 0; n < 2; n++) {
@@ -155,7 +156,8 @@ public final class DirectoryTest {
         zip = one();
         zip.lead = new byte[9];
         is("bytes ahead of the first entry", zip.bytes(), RIGHT);
-        changed("a header whose comment is the end's first byte", row -> { row[header(row) + 32] = 1; four(row, end(row) + 12, HEADER + 1); }, DIRECTORY);
+        changed("a header whose comment is the end's first byte", row -> { row[header(row) + 32] = 1; four(row, end(row) + 12, HEADER
+            + 1); }, DIRECTORY);
         zip = one();
         zip.gap = new byte[1];
         byte[] row = zip.bytes();
@@ -184,7 +186,8 @@ public final class DirectoryTest {
     private void headersThatEndElsewhere() {
         changed("45 bytes for a header", row -> four(row, end(row) + 12, 45), DIRECTORY);
         changed("46 bytes, and no room for its name", row -> four(row, end(row) + 12, 46), DIRECTORY);
-        changed("46 bytes without a name", row -> { row[header(row) + 28] = 0; four(row, end(row) + 12, 46); }, RIGHT + " 10@0:0:0 15@0:0:0");
+        changed("46 bytes without a name", row -> { row[header(row) + 28] = 0; four(row, end(row) + 12, 46); }, RIGHT
+            + " 10@0:0:0 15@0:0:0");
         changed("a byte too many", row -> row[header(row) + 28] = 0, DIRECTORY);
         for (int at = 28; at < 34; at++) {
             int place = at;

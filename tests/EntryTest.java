@@ -47,7 +47,8 @@ public final class EntryTest {
             name("x" + c, right && c != '/' && c != '.');
             name(c + "x", right && c != '/');
         }
-        for (String c : new String[] {"\u0080", "\u00ff", "\u0100", "\u07ff", "\u0800", "\ud7ff", "\ue000", "\ufffe", "\uffff", "\ud800\udc00", "\udbff\udfff"}) {
+        for (String c : new String[] {"\u0080", "\u00ff", "\u0100", "\u07ff", "\u0800", "\ud7ff", "\ue000", "\ufffe", "\uffff",
+            "\ud800\udc00", "\udbff\udfff"}) {
             name(c, true);
             name("a/" + c + "/b", true);
             name(c + "*", false);
@@ -59,14 +60,17 @@ public final class EntryTest {
         for (String name : new String[] {"a", "a/b", "a/b/c/d", ".a", "..a", "a/.b", "a/..b", "a.b", "a.b/c", "a..b", " ", "a/ /b", "-"}) {
             name(name, true);
         }
-        for (String name : new String[] {"", "/", "//", "/a", "a/", "a//b", "a///b", ".", "..", "...", "./a", "../a", "a/.", "a/..", "a/./b", "a/../b", "a.", "a./b", "a/b.", "a/b./c", "a../b", "a/.../b"}) {
+        for (String name : new String[] {"", "/", "//", "/a", "a/", "a//b", "a///b", ".", "..", "...", "./a", "../a", "a/.", "a/..",
+            "a/./b", "a/../b", "a.", "a./b", "a/b.", "a/b./c", "a../b", "a/.../b"}) {
             name(name, false);
         }
     }
 
     private void namesThatAreNoUtf8() {
-        String[] wrong = {"80", "bf", "c0", "c080", "c1bf", "c2", "c241", "c27f", "c2c0", "dfc0", "e0a0", "e08080", "e09fbf", "e0a07f", "e0a0c0", "eda080", "edbfbf", "efbf", "f0908080c0", "f0808080",
-            "f08fbfbf", "f0907fbf", "f090807f", "f09080", "f4908080", "f48fbf", "f5808080", "f7bfbfbf", "f888808080", "fc8480808080", "fe", "ff"};
+        String[] wrong = {"80", "bf", "c0", "c080", "c1bf", "c2", "c241", "c27f", "c2c0", "dfc0", "e0a0", "e08080", "e09fbf", "e0a07f",
+            "e0a0c0", "eda080", "edbfbf", "efbf", "f0908080c0", "f0808080",
+            "f08fbfbf", "f0907fbf", "f090807f", "f09080", "f4908080", "f48fbf", "f5808080", "f7bfbfbf", "f888808080", "fc8480808080", "fe",
+                "ff"};
         for (String hex : wrong) {
             Zip zip = new Zip();
             zip.add(hex("61" + hex), NOTHING, NOTHING, 0);
@@ -140,7 +144,8 @@ public final class EntryTest {
         zip.stored("mimetype", NOTHING);
         is("second ones", zip, "11@6:0:0 11@7:0:0 11@8:0:0");
         new Book().drop(Book.CONTAINER).put("META-INF/Container.xml", "<x").due(due, "a container in capitals", "22 -");
-        new Book().drop(Book.CONTAINER).put("META-INF/container.xml.", "<x").due(due, "a container with more behind", "22 -", "10 META-INF/container.xml.");
+        new Book().drop(Book.CONTAINER).put("META-INF/container.xml.", "<x")
+            .due(due, "a container with more behind", "22 -", "10 META-INF/container.xml.");
         new Book().put("META-INF/encryption.XML", "<x").due(due, "an encryption in capitals");
         Zip ahead = new Zip();
         ahead.stored("mimetype", Zip.latin("application/epub+zip"));
@@ -243,7 +248,8 @@ public final class EntryTest {
             cut.lead = Arrays.copyOf(row, bytes);
             cut.stored("P", NOTHING).place = 0;
             row = without(cut.bytes(), bytes, 31);
-            due.is("a header of " + bytes + " bytes ahead of the directory", new Desk().report(row), bytes == 31 ? REST : REST + " 15@0:0:0");
+            due.is("a header of " + bytes + " bytes ahead of the directory", new Desk().report(row), bytes == 31 ? REST : REST
+                + " 15@0:0:0");
         }
         Zip zip = new Zip();
         zip.stored("a", NOTHING).place = 31 + 47 + 22;
@@ -378,7 +384,8 @@ public final class EntryTest {
         });
         mime("behind in the directory and in place", "21@1:0:0", z -> z.entries.add(0, z.entries.remove(1)));
         mime("one of the same place behind it", "15@1:0:0", z -> z.entries.get(1).place = 0);
-        mime("one of the same place ahead of it", "15@0:0:0 21@1:0:0", z -> { z.entries.add(0, z.entries.remove(1)); z.lead = Arrays.copyOf(mimetypeBytes(), 58); z.entries.get(0).place = 0; z.entries.get(1).place = 0; });
+        mime("one of the same place ahead of it", "15@0:0:0 21@1:0:0", z -> { z.entries.add(0,
+            z.entries.remove(1)); z.lead = Arrays.copyOf(mimetypeBytes(), 58); z.entries.get(0).place = 0; z.entries.get(1).place = 0; });
         mime("another one's place is without sign", "15@1:0:0", z -> z.entries.get(1).place = 4294967295L);
         mime("its own place is without sign", "15@0:0:0 21@0:0:0", z -> first(z).place = 4294967295L);
         mime("bytes ahead of it are no entry", "", z -> z.lead = new byte[50]);
@@ -417,7 +424,8 @@ public final class EntryTest {
     }
 
     private void mimetypes() {
-        for (String bytes : new String[] {"", "application/epub+zi", "application/epub+zip ", "application/epub+zip\n", " application/epub+zip", "Application/epub+zip", "application/epub+ziq"}) {
+        for (String bytes : new String[] {"", "application/epub+zi", "application/epub+zip ", "application/epub+zip\n",
+            " application/epub+zip", "Application/epub+zip", "application/epub+ziq"}) {
             mime("of [" + bytes + "]", "21@0:0:0", text(bytes));
         }
         mime("deflated", "21@0:0:0", z -> z.entries.set(0, new Zip().deflated("mimetype", Zip.latin("application/epub+zip"))));

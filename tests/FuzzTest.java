@@ -4,8 +4,10 @@ import java.util.Random;
 
 /** Any calls in any order on archives of all kinds: nothing throws, reports are in order, and the same again. */
 public final class FuzzTest {
-    private static final String[] PIECES = {"<", ">", "&", "'", "\"", "/", " ", "<a/>", "</a>", "<ol>", "</ol>", "<li>", "</li>", "xmlns='u'", "xmlns:p='u'", "p:", "id='nav'",
-        "<!--", "-->", "<![CDATA[", "]]>", "&amp;", "&#0;", "\u0000", "\ufffe", "\r", "\r\n", "\n", "#", "%", "..", "\u00e9", "<nav/>", "<item/>", "<meta/>", "<itemref/>"};
+    private static final String[] PIECES = {"<", ">", "&", "'", "\"", "/", " ", "<a/>", "</a>", "<ol>", "</ol>", "<li>", "</li>",
+        "xmlns='u'", "xmlns:p='u'", "p:", "id='nav'",
+        "<!--", "-->", "<![CDATA[", "]]>", "&amp;", "&#0;", "\u0000", "\ufffe", "\r", "\r\n", "\n", "#", "%", "..", "\u00e9", "<nav/>",
+            "<item/>", "<meta/>", "<itemref/>"};
 
     private final Due due = new Due();
     private final Random random = new Random(20261115);
@@ -23,7 +25,8 @@ public final class FuzzTest {
         return new Book().item("id='o' href='o.smil' media-type='application/smil+xml'")
             .put("E/o.smil", "<smil xmlns='http://www.w3.org/ns/SMIL' version='3.0'><body><par><text src='nav.xhtml'/><audio src='i/pic.png' clipBegin='1' clipEnd='00:03'/></par></body></smil>")
             .meta("property='media:duration' refines='#o'", "2")
-            .put(Book.ENCRYPTION, "<encryption xmlns='urn:oasis:names:tc:opendocument:xmlns:container' xmlns:x='http://www.w3.org/2001/04/xmlenc#'><x:EncryptedData>"
+            .put(Book.ENCRYPTION,
+                "<encryption xmlns='urn:oasis:names:tc:opendocument:xmlns:container' xmlns:x='http://www.w3.org/2001/04/xmlenc#'><x:EncryptedData>"
                 + "<x:EncryptionMethod Algorithm='http://www.idpf.org/2008/embedding'/><x:CipherData><x:CipherReference URI='E/i/pic.png'/></x:CipherData></x:EncryptedData></encryption>");
     }
 
@@ -36,7 +39,8 @@ public final class FuzzTest {
             String text = book.files.get(name);
             int at = random.nextInt(text.length() + 1);
             int to = Math.min(text.length(), at + random.nextInt(4) * random.nextInt(8));
-            book.put(name, text.substring(0, at) + (random.nextInt(3) > 0 ? PIECES[random.nextInt(PIECES.length)] : "") + text.substring(to));
+            book.put(name, text.substring(0, at) + (random.nextInt(3) > 0 ? PIECES[random.nextInt(PIECES.length)] : "")
+                + text.substring(to));
         }
         byte[] row = book.bytes();
         int flips = random.nextInt(3) == 0 ? random.nextInt(6) : 0;

@@ -47,7 +47,8 @@ public final class InflateTest {
         Random random = new Random(9);
         byte[] data = new byte[6000];
         random.nextBytes(data);
-        for (int distance : new int[] {1, 2, 4, 5, 8, 9, 16, 17, 32, 33, 64, 65, 128, 129, 256, 257, 512, 513, 1024, 1025, 2048, 2049, 4096, 4097, 5500}) {
+        for (int distance : new int[] {1, 2, 4, 5, 8, 9, 16, 17, 32, 33, 64, 65, 128, 129, 256, 257, 512, 513, 1024, 1025, 2048, 2049, 4096,
+            4097, 5500}) {
             byte[] row = data.clone();
             for (int i = Math.max(distance, 5600); i < 5990; i++) {
                 row[i] = row[i - distance];

@@ -41,7 +41,8 @@ public final class LeftoverTest {
         put("a container alone", alone(right));
         put("a container of its root", alone(right.replaceAll("(?s)<rootfiles>.*</rootfiles>", "")));
         put("a container of empty rootfiles", alone(right.replaceAll("(?s)<rootfiles>.*</rootfiles>", "<rootfiles/>")));
-        put("a doctype", new Book().put(Book.CONTAINER, "<!DOCTYPE x>" + right).swap(Book.PACK, "<package", "<!DOCTYPE x><package").swap(Book.NAV, "<html", "<!DOCTYPE x><html"));
+        put("a doctype", new Book().put(Book.CONTAINER, "<!DOCTYPE x>" + right).swap(Book.PACK, "<package", "<!DOCTYPE x><package")
+            .swap(Book.NAV, "<html", "<!DOCTYPE x><html"));
     }
 
     private void packages() {
@@ -49,19 +50,25 @@ public final class LeftoverTest {
         put("51", new Book().swap(Book.PACK, " unique-identifier='uid'", ""));
         put("52", new Book().swap(Book.PACK, "<spine>", "<x/><spine>"));
         put("30 of the package", new Book().put(Book.PACK, "<"));
-        put("a package without items", new Book().put(Book.PACK, "<package xmlns='http://www.idpf.org/2007/opf' version='3.0'><metadata/><manifest/><spine/></package>"));
+        put("a package without items", new Book().put(Book.PACK,
+            "<package xmlns='http://www.idpf.org/2007/opf' version='3.0'><metadata/><manifest/><spine/></package>"));
     }
 
     private void metas() {
-        put("a ring of metas", new Book().meta("property='role' refines='#b' id='a'", "x").meta("property='role' refines='#a' id='b'", "x"));
-        put("a meta and a title in its place", new Book().swap(Book.PACK, "</metadata>", "<dc:title id='a'>x</dc:title>\n<meta property='role' refines='#a' id='b'>x</meta></metadata>"));
+        put("a ring of metas", new Book().meta("property='role' refines='#b' id='a'", "x").meta("property='role' refines='#a' id='b'",
+            "x"));
+        put("a meta and a title in its place", new Book().swap(Book.PACK, "</metadata>",
+            "<dc:title id='a'>x</dc:title>\n<meta property='role' refines='#a' id='b'>x</meta></metadata>"));
         put("a lost refines", new Book().meta("property='role' refines='#c'", "x"));
     }
 
     private void items() {
-        put("a missing item", new Book().item("id='z' href='z' media-type='x/y' fallback='y'").item("id='y' href='y' media-type='x/y' fallback='z' properties='q'"));
-        put("one item less", new Book().swap(Book.PACK, "<item id='pic' href='i/pic.png' media-type='image/png'/>\n", "").swap(Book.PACK, "idref='page'", "idref='pic'"));
-        put("a cover", new Book().item("id='z' href='z' media-type='image/png' properties='cover-image x'").put("E/z", "").item("id='w' href='w' media-type='x/y' properties='cover-image nav'"));
+        put("a missing item", new Book().item("id='z' href='z' media-type='x/y' fallback='y'")
+            .item("id='y' href='y' media-type='x/y' fallback='z' properties='q'"));
+        put("one item less", new Book().swap(Book.PACK, "<item id='pic' href='i/pic.png' media-type='image/png'/>\n", "").swap(Book.PACK,
+            "idref='page'", "idref='pic'"));
+        put("a cover", new Book().item("id='z' href='z' media-type='image/png' properties='cover-image x'").put("E/z", "")
+            .item("id='w' href='w' media-type='x/y' properties='cover-image nav'"));
         put("the navigation first", turned(new Book()));
         put("the navigation first, and not in the spine", turned(new Book().swap(Book.PACK, "<itemref idref='nav'/>", "")));
         put("the page first", pageFirst(""));
@@ -88,26 +95,30 @@ public final class LeftoverTest {
     }
 
     private static Book nav(String inside) {
-        return new Book().swap(Book.PACK, "<item id='page' href='t/page.xhtml' media-type='application/xhtml+xml'/>", "").swap(Book.PACK, "<itemref idref='page'/>", "").drop(Book.PAGE)
+        return new Book().swap(Book.PACK, "<item id='page' href='t/page.xhtml' media-type='application/xhtml+xml'/>", "").swap(Book.PACK,
+            "<itemref idref='page'/>", "").drop(Book.PAGE)
             .put(Book.NAV, "<html xmlns='http://www.w3.org/1999/xhtml' " + OPS + ">" + inside + "</html>");
     }
 
     private void navigations() {
         String a = "<a href='#'>label</a>";
         put("a flat toc", nav("<nav e:type='toc'><ol><li>" + a + "</li><li>" + a + "</li><li>" + a + "</li></ol></nav>"));
-        put("a flat toc without labels", nav("<nav e:type='toc'><ol><li><a href='#'/></li><li><a href='#'/></li><li><a href='#'/></li></ol></nav>"));
+        put("a flat toc without labels",
+            nav("<nav e:type='toc'><ol><li><a href='#'/></li><li><a href='#'/></li><li><a href='#'/></li></ol></nav>"));
         put("a deep toc", nav("<nav e:type='toc'><ol><li>" + a + "<ol><li>" + a + "<ol><li>" + a + "</li></ol></li></ol></li></ol></nav>"));
         put("a toc with a wrong li", nav("<nav e:type='toc'><ol><li><p/><a><b><i/><b/></b></a><a><b/></a></li></ol></nav>"));
         put("a toc deeper", nav("<div><div><div><nav e:type='toc'><ol><li>" + a + "</li></ol></nav></div></div></div>"));
         put("a toc with spans in its a", nav("<nav e:type='toc'><h1/><ol><li><a href='#'><b/><b/><b/>x<b/></a></li></ol></nav>"));
         put("a nav without a toc", nav("<nav/>"));
         put("nothing in the navigation", nav(""));
-        put("three navs", nav("<nav e:type='toc'><ol><li>" + a + "</li></ol></nav><nav e:type='landmarks'><ol><li>" + a + "</li></ol></nav><nav e:type='page-list'><ol><li>" + a + "</li></ol></nav>"));
+        put("three navs", nav("<nav e:type='toc'><ol><li>" + a + "</li></ol></nav><nav e:type='landmarks'><ol><li>" + a
+            + "</li></ol></nav><nav e:type='page-list'><ol><li>" + a + "</li></ol></nav>"));
         put("navs twice", nav("<nav e:type='toc page-list'><p/></nav><nav e:type='page-list toc'><p/></nav>"));
     }
 
     private static Book overlay(String text) {
-        return new Book().item(ITEM).put("E/o.smil", text).meta("property='media:duration' refines='#o'", "5").meta("property='media:duration'", "5");
+        return new Book().item(ITEM).put("E/o.smil", text).meta("property='media:duration' refines='#o'", "5")
+            .meta("property='media:duration'", "5");
     }
 
     private static Book overlayFirst(String inside) {
@@ -190,7 +201,8 @@ public final class LeftoverTest {
 
     /** Texts of more than one document's bytes in all, on one object. */
     private void longTexts() {
-        Book book = new Book().swap(Book.NAV, ">One<", ">" + "x".repeat(4000) + "<").swap(Book.PACK, "<dc:title>T<", "<dc:title>" + "y".repeat(3000) + "<");
+        Book book = new Book().swap(Book.NAV, ">One<", ">" + "x".repeat(4000) + "<").swap(Book.PACK, "<dc:title>T<", "<dc:title>"
+            + "y".repeat(3000) + "<");
         byte[] row = book.bytes();
         EpubDesk desk = new EpubDesk();
         int calls = 0;

@@ -41,7 +41,8 @@ public final class ManifestTest {
         new Book().item("id='' href='pic' media-type='x/y'").due(due, "an empty id", at);
         new Book().item("id='z' href='' media-type='x/y'").due(due, "an empty href", at);
         new Book().item("id='z' href='pic' media-type=''").due(due, "an empty media-type", at);
-        new Book().item("href='i/pic.png' properties='nav cover-image x' fallback='q' media-overlay='q'").due(due, "it counts for nothing else", at);
+        new Book().item("href='i/pic.png' properties='nav cover-image x' fallback='q' media-overlay='q'")
+            .due(due, "it counts for nothing else", at);
         new Book().swap(Book.PACK, "<manifest>", "<manifest><x/><item xmlns='u'/><x><item/></x>").due(due, "no items");
         Desk desk = new Desk();
         desk.check(new Book().item("id='z'").bytes());
@@ -52,11 +53,14 @@ public final class ManifestTest {
 
     private void fallbacks() {
         new Book().item("id='z' href='z' media-type='x/y' fallback='page'").put("E/z", "").due(due, "a fallback");
-        new Book().item("id='z' href='z' media-type='x/y' fallback='q'").put("E/z", "").due(due, "a lost fallback", "62 E/p.opf <item id='z'");
-        new Book().item("id='z' href='z' media-type='x/y' fallback=''").put("E/z", "").due(due, "an empty fallback", "62 E/p.opf <item id='z'");
+        new Book().item("id='z' href='z' media-type='x/y' fallback='q'").put("E/z", "")
+            .due(due, "a lost fallback", "62 E/p.opf <item id='z'");
+        new Book().item("id='z' href='z' media-type='x/y' fallback=''").put("E/z", "")
+            .due(due, "an empty fallback", "62 E/p.opf <item id='z'");
         new Book().item("id='z' href='z' media-type='x/y' fallback='z'").put("E/z", "").due(due, "itself", "63 E/p.opf <item id='z'");
         new Book().swap(Book.PACK, "id='nav'", "id='nav' fallback='nav'").due(due, "the first item itself", "63 E/p.opf <item id='nav'");
-        Book ring = new Book().item("id='y' href='y' media-type='x/y' fallback='z'").put("E/y", "").item("id='z' href='z' media-type='x/y' fallback='y'")
+        Book ring = new Book().item("id='y' href='y' media-type='x/y' fallback='z'").put("E/y", "")
+            .item("id='z' href='z' media-type='x/y' fallback='y'")
             .put("E/z", "").item("id='w' href='w' media-type='x/y' fallback='z'").put("E/w", "");
         ring.due(due, "a ring, and one that leads to it", "63 E/p.opf <item id='y'", "63 E/p.opf <item id='z'");
         ring.swap(Book.PACK, "</spine>", "<itemref idref='w'/></spine>");
@@ -76,14 +80,19 @@ public final class ManifestTest {
         new Book().swap(Book.PACK, "media-type='image/png'", "media-type='image/png' properties=' cover-image '").due(due, "a cover");
         new Book().swap(Book.PACK, "media-type='image/png'", "media-type='image/' properties='cover-image'")
             .due(due, "a cover of image/", "44 E/p.opf <item id='pic'", "46 E/t/page.xhtml <img");
-        new Book().swap(Book.PACK, "media-type='image/png'", "media-type='image/x' properties='cover-image'").due(due, "a cover of image/x", "46 E/t/page.xhtml <img");
-        new Book().swap(Book.PACK, "id='page'", "id='page' properties='cover-image'").due(due, "a page as cover", "44 E/p.opf <item id='page'");
+        new Book().swap(Book.PACK, "media-type='image/png'", "media-type='image/x' properties='cover-image'")
+            .due(due, "a cover of image/x", "46 E/t/page.xhtml <img");
+        new Book().swap(Book.PACK, "id='page'", "id='page' properties='cover-image'")
+            .due(due, "a page as cover", "44 E/p.opf <item id='page'");
         new Book().swap(Book.PACK, "media-type='image/png'", "media-type='image/png' properties='cover-image'")
-            .item("id='z' href='z.gif' media-type='image/gif' properties='cover-image'").put("E/z.gif", "").due(due, "two covers", "43 E/p.opf <manifest");
-        new Book().swap(Book.PACK, "id='page'", "id='page' properties='mathml remote-resources scripted svg switch'").due(due, "all the others");
+            .item("id='z' href='z.gif' media-type='image/gif' properties='cover-image'").put("E/z.gif", "")
+                .due(due, "two covers", "43 E/p.opf <manifest");
+        new Book().swap(Book.PACK, "id='page'", "id='page' properties='mathml remote-resources scripted svg switch'")
+            .due(due, "all the others");
         new Book().swap(Book.PACK, "id='page'", "id='page' properties=''").due(due, "no properties");
         for (String word : new String[] {"x", "Nav", "svgs", "sv", "svg,switch", "scripted x"}) {
-            new Book().swap(Book.PACK, "id='page'", "id='page' properties='" + word + "'").due(due, "property " + word, "45 E/p.opf <item id='page'");
+            new Book().swap(Book.PACK, "id='page'", "id='page' properties='" + word + "'")
+                .due(due, "property " + word, "45 E/p.opf <item id='page'");
         }
     }
 
@@ -98,7 +107,8 @@ public final class ManifestTest {
         due.is("no contents", desk.about(5), 0);
         desk.check(new Book().swap(Book.PACK, "id='page'", "id='page' properties='nav'").bytes());
         due.is("the first one's entry", desk.about(3), 3);
-        desk.check(new Book().swap(Book.PACK, "href='nav.xhtml' media-type='application/xhtml+xml'", "href='nav.xhtml' media-type='x'").bytes());
+        desk.check(new Book().swap(Book.PACK, "href='nav.xhtml' media-type='application/xhtml+xml'",
+            "href='nav.xhtml' media-type='x'").bytes());
         due.is("the entry of one of another type", desk.about(3), 3);
         due.is("its contents", desk.about(5), 0);
         desk.check(new Book().swap(Book.PACK, "href='nav.xhtml'", "href='nav.xhtml#x'").bytes());
@@ -115,10 +125,13 @@ public final class ManifestTest {
         new Book().swap(Book.PACK, ref, "<itemref idref='uid'/></spine>").due(due, "no item's id", "66 E/p.opf <itemref idref='uid'");
         new Book().swap(Book.PACK, ref, "<itemref idref='q'/><itemref idref='q'/></spine>")
             .due(due, "no such item twice", "66 E/p.opf <itemref idref='q'", "66 E/p.opf <itemref idref='q'>><itemref idref='q'");
-        new Book().swap(Book.PACK, ref, "<itemref idref='nav' linear='no'/></spine>").due(due, "again", "67 E/p.opf <itemref idref='nav' linear");
+        new Book().swap(Book.PACK, ref, "<itemref idref='nav' linear='no'/></spine>")
+            .due(due, "again", "67 E/p.opf <itemref idref='nav' linear");
         new Book().swap(Book.PACK, ref, "<itemref idref='pic'/></spine>").due(due, "a picture", "69 E/p.opf <itemref idref='pic'");
-        new Book().swap(Book.PACK, ref, "<itemref idref='pic'/></spine>").swap(Book.PACK, "id='pic'", "id='pic' fallback='page'").due(due, "a picture with a fallback");
-        new Book().swap(Book.PACK, ref, "<itemref idref='pic'/></spine>").swap(Book.PACK, "image/png", "image/svg+xml").due(due, "a drawing");
+        new Book().swap(Book.PACK, ref, "<itemref idref='pic'/></spine>").swap(Book.PACK, "id='pic'", "id='pic' fallback='page'")
+            .due(due, "a picture with a fallback");
+        new Book().swap(Book.PACK, ref, "<itemref idref='pic'/></spine>").swap(Book.PACK, "image/png", "image/svg+xml")
+            .due(due, "a drawing");
         new Book().swap(Book.PACK, ref, "<itemref xmlns='u'/><x><itemref/></x></spine>").due(due, "no refs");
         new Book().swap(Book.PACK, "idref='nav'", "idref='nav' linear='no'").swap(Book.PACK, "idref='page'", "idref='page' linear='no'")
             .due(due, "none linear", "68 E/p.opf <spine");
@@ -138,12 +151,16 @@ public final class ManifestTest {
         order("plain", new Book(), "E/nav.xhtml E/t/page.xhtml");
         order("turned", new Book().swap(Book.PACK, "idref='nav'", "idref='q'").swap(Book.PACK, "idref='page'", "idref='nav'")
             .swap(Book.PACK, "idref='q'", "idref='page'"), "E/t/page.xhtml E/nav.xhtml");
-        order("again", new Book().swap(Book.PACK, "</spine>", "<itemref idref='nav'/><itemref idref='pic'/></spine>"), "E/nav.xhtml E/t/page.xhtml E/i/pic.png");
+        order("again", new Book().swap(Book.PACK, "</spine>", "<itemref idref='nav'/><itemref idref='pic'/></spine>"),
+            "E/nav.xhtml E/t/page.xhtml E/i/pic.png");
         order("aside", new Book().swap(Book.PACK, "idref='nav'", "idref='nav' linear='no'"), "E/t/page.xhtml");
         order("other words", new Book().swap(Book.PACK, "idref='nav'", "idref='nav' linear='No'"), "E/nav.xhtml E/t/page.xhtml");
-        order("aside, then again", new Book().swap(Book.PACK, "idref='nav'", "idref='nav' linear='no'").swap(Book.PACK, "</spine>", "<itemref idref='nav'/></spine>"), "E/t/page.xhtml");
-        order("missing and bad", new Book().swap(Book.PACK, "href='nav.xhtml'", "href='q'").swap(Book.PACK, "href='t/page.xhtml'", "href='/'"), "");
-        order("two items of one path", new Book().item("id='z' href='nav.xhtml' media-type='" + XHTML + "'").swap(Book.PACK, "</spine>", "<itemref idref='z'/></spine>"),
+        order("aside, then again", new Book().swap(Book.PACK, "idref='nav'", "idref='nav' linear='no'").swap(Book.PACK, "</spine>",
+            "<itemref idref='nav'/></spine>"), "E/t/page.xhtml");
+        order("missing and bad", new Book().swap(Book.PACK, "href='nav.xhtml'", "href='q'").swap(Book.PACK, "href='t/page.xhtml'",
+            "href='/'"), "");
+        order("two items of one path", new Book().item("id='z' href='nav.xhtml' media-type='" + XHTML + "'").swap(Book.PACK, "</spine>",
+            "<itemref idref='z'/></spine>"),
             "E/nav.xhtml E/t/page.xhtml E/nav.xhtml");
         order("without a package", new Book().swap(Book.PACK, "3.0", "2.0"), "");
     }
@@ -167,7 +184,8 @@ public final class ManifestTest {
         new Book().put("x", "").swap(Book.PACK, "3.0", "2.0").due(due, "not with 50", "50 E/p.opf <package");
         new Book().put("x", "").swap(Book.PACK, "<spine>", "<x/><spine>").due(due, "not with 52", "52 E/p.opf <package");
         new Book().put("x", "").swap(Book.CONTAINER, "E/p.opf", "E/q").due(due, "not with 42", "42 META-INF/container.xml <rootfile full");
-        new Book().put("x", "").item("id='z' href='../x#' media-type='x/y'").due(due, "an item without a path", "59 E/p.opf <item id='z'", "90 x");
+        new Book().put("x", "").item("id='z' href='../x#' media-type='x/y'")
+            .due(due, "an item without a path", "59 E/p.opf <item id='z'", "90 x");
     }
 
     private void itemsThatAreNone() {
@@ -186,12 +204,15 @@ public final class ManifestTest {
             }
         }
         new Book().item("").due(due, "nothing at all", "57 E/p.opf <item id='pic'>><item ");
-        new Book().item("id='z'").item("id='z'").due(due, "two of them", "57 E/p.opf <item id='z'", "57 E/p.opf <item id='z'>><item id='z'", "58 E/p.opf <item id='z'>><item id='z'");
+        new Book().item("id='z'").item("id='z'").due(due, "two of them", "57 E/p.opf <item id='z'", "57 E/p.opf <item id='z'>><item id='z'",
+            "58 E/p.opf <item id='z'>><item id='z'");
         new Book().item("id='z' fallback='z'").due(due, "not in a ring", "57 E/p.opf <item id='z'");
         new Book().item("id='z'").item("id='y' href='y' media-type='x/y' fallback='z' media-overlay='z'").put("E/y", "")
             .due(due, "no fallback and no overlay", "57 E/p.opf <item id='z'", "62 E/p.opf <item id='y'", "24 E/p.opf <item id='y'");
-        new Book().swap(Book.PACK, "<manifest>", "<manifest><item id='page' href='x'/>").due(due, "not the first with an id", "57 E/p.opf <item id='page' href='x'", "58 E/p.opf <item id='page' href='t");
-        new Book().swap(Book.PACK, "</spine>", "<item/></spine>").swap(Book.PACK, "</metadata>", "<item/></metadata>").due(due, "items of other parts");
+        new Book().swap(Book.PACK, "<manifest>", "<manifest><item id='page' href='x'/>")
+            .due(due, "not the first with an id", "57 E/p.opf <item id='page' href='x'", "58 E/p.opf <item id='page' href='t");
+        new Book().swap(Book.PACK, "</spine>", "<item/></spine>").swap(Book.PACK, "</metadata>", "<item/></metadata>")
+            .due(due, "items of other parts");
         new Book().swap(Book.PACK, "</manifest>", "<Item/><items/><x:item xmlns:x='u'/></manifest>").due(due, "other elements");
     }
 
@@ -201,7 +222,8 @@ public final class ManifestTest {
 
     private void hrefs() {
         String bad = "59 E/p.opf <item id='z'";
-        for (String href : new String[] {"#", "z#", "#z", "i/pic.png#", "i/pic.png#x", "p.opf", "../E/p.opf", "./p.opf", "p.opf/", "%70.opf", "p.opf/.", "/z", "z?", "z z", "x:z", "..", "../..", "../../z", "%", "a%2Fb", "http://x/y"}) {
+        for (String href : new String[] {"#", "z#", "#z", "i/pic.png#", "i/pic.png#x", "p.opf", "../E/p.opf", "./p.opf", "p.opf/",
+            "%70.opf", "p.opf/.", "/z", "z?", "z z", "x:z", "..", "../..", "../../z", "%", "a%2Fb", "http://x/y"}) {
             href(href, bad);
         }
         for (String href : new String[] {"z", "p.opf/z", "P.opf", "../p.opf", "z/p.opf", "i", "i/", "%23"}) {
@@ -210,7 +232,8 @@ public final class ManifestTest {
         for (String href : new String[] {"i/pic.png", "./i/pic.png", "i/../i/pic.png", "../E/i/pic.png", "i/pic.png/", "%69/pic.png"}) {
             href(href, "61 E/p.opf <item id='z'");
         }
-        new Book().item("id='z' href='../mimetype' media-type='x/y'").item("id='y' href='../META-INF/container.xml' media-type='x/y'").due(due, "any entry will do");
+        new Book().item("id='z' href='../mimetype' media-type='x/y'").item("id='y' href='../META-INF/container.xml' media-type='x/y'")
+            .due(due, "any entry will do");
     }
 
     private void samePaths() {
@@ -220,17 +243,23 @@ public final class ManifestTest {
             book.item("id='z" + i + "' href='" + hrefs[i] + "' media-type='x/y'");
         }
         String at = " E/p.opf <item id='z";
-        book.put("E/b", "").due(due, "missing, there and bad", "60" + at + "0", "60" + at + "2", "61" + at + "2", "59" + at + "3", "61" + at + "4", "59" + at + "5", "60" + at + "6", "61" + at + "6");
-        new Book().item("id='z' href='%C3%A9' media-type='x/y'").item("id='y' href='\u00e9' media-type='x/y'").due(due, "the same by bytes", "60 E/p.opf <item id='z'", "60 E/p.opf <item id='y'", "61 E/p.opf <item id='y'");
-        new Book().item("id='z' href='a//b' media-type='x/y'").item("id='y' href='a/b' media-type='x/y'").due(due, "an empty part is one", "60 E/p.opf <item id='z'", "60 E/p.opf <item id='y'");
-        new Book().item("id='z' href='a' media-type='x/y'").item("id='y' href='A' media-type='x/y'").due(due, "capitals", "60 E/p.opf <item id='z'", "60 E/p.opf <item id='y'");
+        book.put("E/b", "").due(due, "missing, there and bad", "60" + at + "0", "60" + at + "2", "61" + at + "2", "59" + at + "3", "61" + at
+            + "4", "59" + at + "5", "60" + at + "6", "61" + at + "6");
+        new Book().item("id='z' href='%C3%A9' media-type='x/y'").item("id='y' href='\u00e9' media-type='x/y'")
+            .due(due, "the same by bytes", "60 E/p.opf <item id='z'", "60 E/p.opf <item id='y'", "61 E/p.opf <item id='y'");
+        new Book().item("id='z' href='a//b' media-type='x/y'").item("id='y' href='a/b' media-type='x/y'")
+            .due(due, "an empty part is one", "60 E/p.opf <item id='z'", "60 E/p.opf <item id='y'");
+        new Book().item("id='z' href='a' media-type='x/y'").item("id='y' href='A' media-type='x/y'")
+            .due(due, "capitals", "60 E/p.opf <item id='z'", "60 E/p.opf <item id='y'");
         StringBuilder deep = new StringBuilder();
         Book long1 = new Book();
         for (int i = 0; i < 20; i++) {
             deep.append("0123456789/");
         }
-        long1.item("id='z' href='" + deep + "a' media-type='x/y'").item("id='y' href='" + deep + "b' media-type='x/y'").item("id='w' href='" + deep + "a' media-type='x/y'");
-        long1.due(due, "long ones", "60 E/p.opf <item id='z'", "60 E/p.opf <item id='y'", "60 E/p.opf <item id='w'", "61 E/p.opf <item id='w'");
+        long1.item("id='z' href='" + deep + "a' media-type='x/y'").item("id='y' href='" + deep + "b' media-type='x/y'").item("id='w' href='"
+            + deep + "a' media-type='x/y'");
+        long1.due(due, "long ones", "60 E/p.opf <item id='z'", "60 E/p.opf <item id='y'", "60 E/p.opf <item id='w'",
+            "61 E/p.opf <item id='w'");
     }
 
     /** Where an id is there twice, the first item that has it counts. */
@@ -238,24 +267,32 @@ public final class ManifestTest {
         String again = "58 E/p.opf <item id='d' href='d2'";
         String smil = "<smil xmlns='http://www.w3.org/ns/SMIL' version='3.0'><body><par><text src='nav.xhtml'/></par></body></smil>";
         String page = "<html xmlns='http://www.w3.org/1999/xhtml'/>";
-        Book first = new Book().item("id='d' href='d1' media-type='x/y'").item("id='d' href='d2' media-type='" + XHTML + "'").put("E/d1", "").put("E/d2", page);
+        Book first = new Book().item("id='d' href='d1' media-type='x/y'").item("id='d' href='d2' media-type='" + XHTML + "'").put("E/d1",
+            "").put("E/d2", page);
         first.swap(Book.PACK, "</spine>", "<itemref idref='d'/></spine>").due(due, "a ref", again, "69 E/p.opf <itemref idref='d'");
-        Book second = new Book().item("id='d' href='d1' media-type='" + XHTML + "'").item("id='d' href='d2' media-type='x/y'").put("E/d2", "").put("E/d1", page);
+        Book second = new Book().item("id='d' href='d1' media-type='" + XHTML + "'").item("id='d' href='d2' media-type='x/y'").put("E/d2",
+            "").put("E/d1", page);
         second.swap(Book.PACK, "</spine>", "<itemref idref='d'/></spine>").due(due, "a ref, the other way", again);
-        Book third = new Book().item("id='d' href='d1' media-type='x/y'").item("id='d' href='d2' media-type='" + XHTML + "'").put("E/d1", "").put("E/d2", page);
-        third.item("id='e' href='e' media-type='x/y' fallback='d'").put("E/e", "").swap(Book.PACK, "</spine>", "<itemref idref='e'/></spine>").due(due, "a fallback", again, "69 E/p.opf <itemref idref='e'");
-        Book fourth = new Book().item("id='d' href='d1' media-type='x/y'").item("id='d' href='d2' media-type='application/smil+xml'").put("E/d1", "").put("E/d2", smil);
+        Book third = new Book().item("id='d' href='d1' media-type='x/y'").item("id='d' href='d2' media-type='" + XHTML + "'").put("E/d1",
+            "").put("E/d2", page);
+        third.item("id='e' href='e' media-type='x/y' fallback='d'").put("E/e", "").swap(Book.PACK, "</spine>",
+            "<itemref idref='e'/></spine>").due(due, "a fallback", again, "69 E/p.opf <itemref idref='e'");
+        Book fourth = new Book().item("id='d' href='d1' media-type='x/y'").item("id='d' href='d2' media-type='application/smil+xml'")
+            .put("E/d1", "").put("E/d2", smil);
         fourth.swap(Book.PACK, "id='page'", "id='page' media-overlay='d'").due(due, "an overlay", again, "24 E/p.opf <item id='page'");
-        Book fifth = new Book().item("id='d' href='d1' media-type='application/smil+xml'").item("id='d' href='d2' media-type='x/y'").put("E/d1", smil).put("E/d2", "");
+        Book fifth = new Book().item("id='d' href='d1' media-type='application/smil+xml'").item("id='d' href='d2' media-type='x/y'")
+            .put("E/d1", smil).put("E/d2", "");
         fifth.swap(Book.PACK, "id='page'", "id='page' media-overlay='d'").due(due, "an overlay, the other way", again);
-        Book sixth = new Book().item("id='d' href='d1' media-type='x/y' fallback='d'").item("id='d' href='d2' media-type='x/y' fallback='d'").put("E/d1", "").put("E/d2", "");
+        Book sixth = new Book().item("id='d' href='d1' media-type='x/y' fallback='d'")
+            .item("id='d' href='d2' media-type='x/y' fallback='d'").put("E/d1", "").put("E/d2", "");
         sixth.due(due, "a ring of the first alone", again, "63 E/p.opf <item id='d' href='d1'");
     }
 
     private static Book chain(String... pairs) {
         Book book = new Book();
         for (String pair : pairs) {
-            book.item("id='" + pair.charAt(0) + "' href='z" + pair.charAt(0) + "' media-type='x/y' fallback='" + pair.substring(1) + "'").put("E/z" + pair.charAt(0), "");
+            book.item("id='" + pair.charAt(0) + "' href='z" + pair.charAt(0) + "' media-type='x/y' fallback='" + pair.substring(1) + "'")
+                .put("E/z" + pair.charAt(0), "");
         }
         return book;
     }
@@ -287,46 +324,66 @@ public final class ManifestTest {
         chain("apage").swap(Book.PACK, ref, "<itemref idref='a'/></spine>").due(due, "by one");
         chain("ab", "bc", "cd", "dpage").swap(Book.PACK, ref, "<itemref idref='a'/></spine>").due(due, "by four");
         chain("apic").swap(Book.PACK, ref, "<itemref idref='a'/></spine>").due(due, "to a picture", "69 E/p.opf <itemref idref='a'");
-        chain("apic").swap(Book.PACK, "image/png", "image/svg+xml").swap(Book.PACK, ref, "<itemref idref='a'/></spine>").due(due, "to a drawing");
-        chain("aq").swap(Book.PACK, ref, "<itemref idref='a'/></spine>").due(due, "to nothing", "62 E/p.opf <item id='a'", "69 E/p.opf <itemref idref='a'");
+        chain("apic").swap(Book.PACK, "image/png", "image/svg+xml").swap(Book.PACK, ref, "<itemref idref='a'/></spine>")
+            .due(due, "to a drawing");
+        chain("aq").swap(Book.PACK, ref, "<itemref idref='a'/></spine>")
+            .due(due, "to nothing", "62 E/p.opf <item id='a'", "69 E/p.opf <itemref idref='a'");
         chain("aa").swap(Book.PACK, ref, "<itemref idref='a'/></spine>").due(due, "to itself", ring("a"), "69 E/p.opf <itemref idref='a'");
-        chain("ab", "bb").swap(Book.PACK, ref, "<itemref idref='a'/></spine>").due(due, "into a ring", ring("b"), "69 E/p.opf <itemref idref='a'");
-        chain("ab", "ba").item("id='c' href='c' media-type='" + XHTML + "' fallback='a'").put("E/c", "<html xmlns='http://www.w3.org/1999/xhtml'/>").swap(Book.PACK, ref, "<itemref idref='c'/></spine>")
+        chain("ab", "bb").swap(Book.PACK, ref, "<itemref idref='a'/></spine>")
+            .due(due, "into a ring", ring("b"), "69 E/p.opf <itemref idref='a'");
+        chain("ab", "ba").item("id='c' href='c' media-type='" + XHTML + "' fallback='a'").put("E/c",
+            "<html xmlns='http://www.w3.org/1999/xhtml'/>").swap(Book.PACK, ref, "<itemref idref='c'/></spine>")
             .due(due, "right itself, whatever is behind", ring("a"), ring("b"));
-        new Book().item("id='a' href='a#' media-type='x/y' fallback='b'").item("id='b' href='b' media-type='" + XHTML + "'").swap(Book.PACK, ref, "<itemref idref='a'/></spine>")
+        new Book().item("id='a' href='a#' media-type='x/y' fallback='b'").item("id='b' href='b' media-type='" + XHTML + "'").swap(Book.PACK,
+            ref, "<itemref idref='a'/></spine>")
             .due(due, "by ones with 59 and 60", "59 E/p.opf <item id='a'", "60 E/p.opf <item id='b'");
-        for (String type : new String[] {"text/html", "application/xhtml", "Application/xhtml+xml", "image/svg", "image/png", "application/xhtml+xml "}) {
-            new Book().item("id='z' href='z' media-type='" + type + "'").put("E/z", "").swap(Book.PACK, ref, "<itemref idref='z'/></spine>").due(due, "of type " + type, "69 E/p.opf <itemref idref='z'");
+        for (String type : new String[] {"text/html", "application/xhtml", "Application/xhtml+xml", "image/svg", "image/png",
+            "application/xhtml+xml "}) {
+            new Book().item("id='z' href='z' media-type='" + type + "'").put("E/z", "").swap(Book.PACK, ref, "<itemref idref='z'/></spine>")
+                .due(due, "of type " + type, "69 E/p.opf <itemref idref='z'");
         }
     }
 
     private void coverTypes() {
         for (String type : new String[] {"image/x", "image/png", "image/ ", "image//", "image/\u00e9"}) {
-            new Book().item("id='z' href='z' media-type='" + type + "' properties='cover-image'").put("E/z", "").due(due, "a cover of " + type);
+            new Book().item("id='z' href='z' media-type='" + type + "' properties='cover-image'").put("E/z", "")
+                .due(due, "a cover of " + type);
         }
         for (String type : new String[] {"image/", "image", "imag", "Image/png", " image/png", "x/image/png", "text/css", XHTML + "x"}) {
-            new Book().item("id='z' href='z' media-type='" + type + "' properties='cover-image'").put("E/z", "").due(due, "a cover of " + type, "44 E/p.opf <item id='z'");
+            new Book().item("id='z' href='z' media-type='" + type + "' properties='cover-image'").put("E/z", "")
+                .due(due, "a cover of " + type, "44 E/p.opf <item id='z'");
         }
         String cover = " media-type='image/gif' properties='cover-image'";
-        new Book().item("id='z' href='z'" + cover).put("E/z", "").item("id='y' href='y'" + cover).put("E/y", "").item("id='x' href='x'" + cover).put("E/x", "").due(due, "three covers", "43 E/p.opf <manifest");
-        new Book().item("id='z' href='z'" + cover).put("E/z", "").item("id='y'" + cover).due(due, "one that counts for nothing else", "57 E/p.opf <item id='y'");
-        new Book().item("id='z' href='z#'" + cover).item("id='y' href='y'" + cover).due(due, "without a path, and missing", "59 E/p.opf <item id='z'", "60 E/p.opf <item id='y'", "43 E/p.opf <manifest");
-        new Book().item("id='z' href='z' media-type='image/gif' properties='cover-image cover-image'").put("E/z", "").due(due, "the same word twice");
-        new Book().item("id='z' href='z' media-type='image/gif' properties='Cover-image'").put("E/z", "").due(due, "capitals", "45 E/p.opf <item id='z'");
+        new Book().item("id='z' href='z'" + cover).put("E/z", "").item("id='y' href='y'" + cover).put("E/y", "").item("id='x' href='x'"
+            + cover).put("E/x", "").due(due, "three covers", "43 E/p.opf <manifest");
+        new Book().item("id='z' href='z'" + cover).put("E/z", "").item("id='y'" + cover)
+            .due(due, "one that counts for nothing else", "57 E/p.opf <item id='y'");
+        new Book().item("id='z' href='z#'" + cover).item("id='y' href='y'" + cover)
+            .due(due, "without a path, and missing", "59 E/p.opf <item id='z'", "60 E/p.opf <item id='y'", "43 E/p.opf <manifest");
+        new Book().item("id='z' href='z' media-type='image/gif' properties='cover-image cover-image'").put("E/z", "")
+            .due(due, "the same word twice");
+        new Book().item("id='z' href='z' media-type='image/gif' properties='Cover-image'").put("E/z", "")
+            .due(due, "capitals", "45 E/p.opf <item id='z'");
         for (String words : new String[] {"mathml", "\tsvg\nswitch\r", "scripted  remote-resources", "&#9;mathml&#10;", "", " "}) {
-            new Book().item("id='z' href='z' media-type='x/y' properties='" + words + "'").put("E/z", "").due(due, "properties [" + words + "]");
+            new Book().item("id='z' href='z' media-type='x/y' properties='" + words + "'").put("E/z", "")
+                .due(due, "properties [" + words + "]");
         }
-        for (String words : new String[] {"x", "mathm", "mathmls", "MathML", "mathml,svg", "mathml x", "x mathml", "mathml-svg", "mathml\u00a0svg", "navs", "na"}) {
-            new Book().item("id='z' href='z' media-type='x/y' properties='" + words + "'").put("E/z", "").due(due, "properties [" + words + "]", "45 E/p.opf <item id='z'");
+        for (String words : new String[] {"x", "mathm", "mathmls", "MathML", "mathml,svg", "mathml x", "x mathml", "mathml-svg",
+            "mathml\u00a0svg", "navs", "na"}) {
+            new Book().item("id='z' href='z' media-type='x/y' properties='" + words + "'").put("E/z", "")
+                .due(due, "properties [" + words + "]", "45 E/p.opf <item id='z'");
         }
     }
 
     private void navigationsOfTypes() {
         String wrong = "64 E/p.opf <manifest";
-        new Book().item("id='z' href='z' media-type='x/y' properties='nav'").put("E/z", "").due(due, "a second one of another type", wrong, "65 E/p.opf <item id='z'");
-        new Book().item("id='z' href='z' media-type='x/y' properties='svg nav'").item("id='y' href='y' media-type='x/y' properties='nav'").put("E/z", "").put("E/y", "")
+        new Book().item("id='z' href='z' media-type='x/y' properties='nav'").put("E/z", "")
+            .due(due, "a second one of another type", wrong, "65 E/p.opf <item id='z'");
+        new Book().item("id='z' href='z' media-type='x/y' properties='svg nav'").item("id='y' href='y' media-type='x/y' properties='nav'")
+            .put("E/z", "").put("E/y", "")
             .due(due, "three", wrong, "65 E/p.opf <item id='z'", "65 E/p.opf <item id='y'");
-        new Book().item("id='z' href='' media-type='" + XHTML + "' properties='nav'").due(due, "a second one that counts for nothing", "57 E/p.opf <item id='z'");
+        new Book().item("id='z' href='' media-type='" + XHTML + "' properties='nav'")
+            .due(due, "a second one that counts for nothing", "57 E/p.opf <item id='z'");
         new Book().swap(Book.PACK, "properties='nav'", "properties=' svg nav\tmathml '").due(due, "nav among others");
         new Book().swap(Book.PACK, "properties='nav'", "properties='nav nav'").due(due, "nav twice in one");
         new Book().swap(Book.PACK, "properties='nav'", "properties='Nav'").due(due, "capitals", wrong, "45 E/p.opf <item id='nav'");
@@ -337,30 +394,40 @@ public final class ManifestTest {
     private void refsBeside() {
         String ref = "</spine>";
         new Book().swap(Book.PACK, ref, "<itemref idref='pic'/><itemref idref='pic'/></spine>")
-            .due(due, "again, of a wrong type", "69 E/p.opf <itemref idref='pic'", "67 E/p.opf <itemref idref='pic'>><itemref idref='pic'", "69 E/p.opf <itemref idref='pic'>><itemref idref='pic'");
+            .due(due, "again, of a wrong type", "69 E/p.opf <itemref idref='pic'", "67 E/p.opf <itemref idref='pic'>><itemref idref='pic'",
+                "69 E/p.opf <itemref idref='pic'>><itemref idref='pic'");
         new Book().swap(Book.PACK, ref, "<itemref idref='nav'/><itemref idref='nav'/></spine>")
-            .due(due, "thrice", "67 E/p.opf <itemref idref='page'>><itemref idref='nav'", "67 E/p.opf <itemref idref='page'>><itemref idref='nav'>><itemref idref='nav'");
+            .due(due, "thrice", "67 E/p.opf <itemref idref='page'>><itemref idref='nav'",
+                "67 E/p.opf <itemref idref='page'>><itemref idref='nav'>><itemref idref='nav'");
         new Book().swap(Book.PACK, ref, "<itemref idref='Nav'/></spine>").due(due, "capitals", "66 E/p.opf <itemref idref='Nav'");
         new Book().swap(Book.PACK, ref, "<itemref idref='nav '/></spine>").due(due, "a blank", "66 E/p.opf <itemref idref='nav '");
-        new Book().swap(Book.PACK, ref, "<itemref idref=''/><itemref idref=''/></spine>").due(due, "empty ones twice", "66 E/p.opf <itemref idref=''", "66 E/p.opf <itemref idref=''>><itemref idref=''");
-        new Book().item("id='z' href='nav.xhtml' media-type='" + XHTML + "'").swap(Book.PACK, ref, "<itemref idref='z'/></spine>").due(due, "another idref of the same path", "61 E/p.opf <item id='z'");
-        new Book().swap(Book.PACK, ref, "</spine><x><itemref/></x><itemref/>").swap(Book.PACK, "</manifest>", "<itemref/></manifest>").due(due, "refs of other parts");
+        new Book().swap(Book.PACK, ref, "<itemref idref=''/><itemref idref=''/></spine>")
+            .due(due, "empty ones twice", "66 E/p.opf <itemref idref=''", "66 E/p.opf <itemref idref=''>><itemref idref=''");
+        new Book().item("id='z' href='nav.xhtml' media-type='" + XHTML + "'").swap(Book.PACK, ref, "<itemref idref='z'/></spine>")
+            .due(due, "another idref of the same path", "61 E/p.opf <item id='z'");
+        new Book().swap(Book.PACK, ref, "</spine><x><itemref/></x><itemref/>").swap(Book.PACK, "</manifest>", "<itemref/></manifest>")
+            .due(due, "refs of other parts");
         new Book().swap(Book.PACK, ref, "<Itemref/><item/></spine>").due(due, "other elements");
     }
 
     private void linears() {
         for (String linear : new String[] {"yes", "", "No", "NO", " no", "no ", "non", "n", "auxiliary"}) {
-            new Book().swap(Book.PACK, "idref='nav'", "idref='nav' linear='" + linear + "'").swap(Book.PACK, "idref='page'", "idref='page' linear='no'").due(due, "linear [" + linear + "]");
+            new Book().swap(Book.PACK, "idref='nav'", "idref='nav' linear='" + linear + "'").swap(Book.PACK, "idref='page'",
+                "idref='page' linear='no'").due(due, "linear [" + linear + "]");
         }
         String at = "68 E/p.opf <spine";
-        new Book().swap(Book.PACK, "idref='nav'", "idref='nav' linear='no'").swap(Book.PACK, "idref='page'", "idref='page' linear='&#110;o'").due(due, "all no", at);
+        new Book().swap(Book.PACK, "idref='nav'", "idref='nav' linear='no'").swap(Book.PACK, "idref='page'",
+            "idref='page' linear='&#110;o'").due(due, "all no", at);
         new Book().swap(Book.PACK, "<itemref idref='nav'/>", "").swap(Book.PACK, "<itemref idref='page'/>", "")
             .due(due, "no refs", at, "73 E/nav.xhtml <a href='t", "73 E/nav.xhtml <a href='#'");
-        new Book().swap(Book.PACK, "idref='nav'", "idref='nav' linear='no'").swap(Book.PACK, "idref='page'", "idref='page' linear='no'").swap(Book.PACK, "</spine>", "<itemref/></spine>")
+        new Book().swap(Book.PACK, "idref='nav'", "idref='nav' linear='no'").swap(Book.PACK, "idref='page'", "idref='page' linear='no'")
+            .swap(Book.PACK, "</spine>", "<itemref/></spine>")
             .due(due, "one with 66 that isn't no", "66 E/p.opf <itemref/");
-        new Book().swap(Book.PACK, "idref='nav'", "idref='nav' linear='no'").swap(Book.PACK, "idref='page'", "idref='page' linear='no'").swap(Book.PACK, "</spine>", "<itemref linear='no'/></spine>")
+        new Book().swap(Book.PACK, "idref='nav'", "idref='nav' linear='no'").swap(Book.PACK, "idref='page'", "idref='page' linear='no'")
+            .swap(Book.PACK, "</spine>", "<itemref linear='no'/></spine>")
             .due(due, "one with 66 that is no", "66 E/p.opf <itemref linear", at);
-        new Book().swap(Book.PACK, "idref='nav'", "idref='nav' linear='no'").swap(Book.PACK, "idref='page'", "idref='page' linear='no'").swap(Book.PACK, "</spine>", "<itemref idref='nav'/></spine>")
+        new Book().swap(Book.PACK, "idref='nav'", "idref='nav' linear='no'").swap(Book.PACK, "idref='page'", "idref='page' linear='no'")
+            .swap(Book.PACK, "</spine>", "<itemref idref='nav'/></spine>")
             .due(due, "one with 67 that isn't no", "67 E/p.opf <itemref idref='nav'/");
     }
 
@@ -371,7 +438,8 @@ public final class ManifestTest {
         order("59", new Book().swap(Book.PACK, "href='nav.xhtml'", "href='nav.xhtml#'"), "E/t/page.xhtml");
         order("60", new Book().swap(Book.PACK, "href='nav.xhtml'", "href='gone'"), "E/t/page.xhtml");
         order("61", new Book().swap(Book.PACK, "href='t/page.xhtml'", "href='nav.xhtml'"), "E/nav.xhtml E/nav.xhtml");
-        order("58", new Book().swap(Book.PACK, "id='page'", "id='nav'").swap(Book.PACK, "idref='page'", "idref='pic'"), "E/nav.xhtml E/i/pic.png");
+        order("58", new Book().swap(Book.PACK, "id='page'", "id='nav'").swap(Book.PACK, "idref='page'", "idref='pic'"),
+            "E/nav.xhtml E/i/pic.png");
         order("the first again is no", new Book().swap(Book.PACK, "idref='nav'", "idref='page' linear='no'"), "");
         order("not parsed", new Book().put(Book.PAGE, "<").put(Book.NAV, "<"), "E/nav.xhtml E/t/page.xhtml");
         Zip zip = new Book().zip();
@@ -395,10 +463,13 @@ public final class ManifestTest {
     private void straysBeside() {
         new Book().put("x", "").put("y/z", "").due(due, "two", "90 x", "90 y/z");
         new Book().put("META-INF/x/y", "").put("META-INF/ ", "").due(due, "in the container's folder");
-        new Book().put("META-INF.x", "").put("E/META-INF/x", "").put("META-IN/x", "").due(due, "not in it", "90 META-INF.x", "90 E/META-INF/x", "90 META-IN/x");
-        new Book().put("mimetype2", "").put("Mimetype", "").put("E/mimetype", "").due(due, "no mimetype", "90 mimetype2", "90 Mimetype", "12 Mimetype", "90 E/mimetype");
+        new Book().put("META-INF.x", "").put("E/META-INF/x", "").put("META-IN/x", "")
+            .due(due, "not in it", "90 META-INF.x", "90 E/META-INF/x", "90 META-IN/x");
+        new Book().put("mimetype2", "").put("Mimetype", "").put("E/mimetype", "")
+            .due(due, "no mimetype", "90 mimetype2", "90 Mimetype", "12 Mimetype", "90 E/mimetype");
         new Book().put("E/q.opf", "").due(due, "another package", "90 E/q.opf");
-        new Book().item("id='z' media-type='x/y' href='z'").swap(Book.PACK, "id='z' ", "").put("E/z", "").due(due, "an item that counts for nothing", "57 E/p.opf <item media", "90 E/z");
+        new Book().item("id='z' media-type='x/y' href='z'").swap(Book.PACK, "id='z' ", "").put("E/z", "")
+            .due(due, "an item that counts for nothing", "57 E/p.opf <item media", "90 E/z");
         new Book().put("x.", "").due(due, "not with 10", "10 x.");
         String none = "not told";
         new Book().put("x", "").drop(Book.CONTAINER).due(due, none + " with 22", "22 -");
@@ -417,9 +488,11 @@ public final class ManifestTest {
 
     /** A % that no two hex digits follow is bad, not missing. */
     private void percents() {
-        for (String href : new String[] {"%", "%6", "%G1", "%1G", "%g1", "%1g", "%/1", "%1/", "%:1", "./%:1", "%@1", "%1@", "%`1", "%1`", "%%61", "% 1", "z%", "z%4", "z%4/4"}) {
+        for (String href : new String[] {"%", "%6", "%G1", "%1G", "%g1", "%1g", "%/1", "%1/", "%:1", "./%:1", "%@1", "%1@", "%`1", "%1`",
+            "%%61", "% 1", "z%", "z%4", "z%4/4"}) {
             for (String type : new String[] {"x/y", "a1/b", "11", "%41"}) {
-                new Book().item("id='z' href='" + href + "' media-type='" + type + "'").due(due, "href " + href + " ahead of " + type, "59 E/p.opf <item id='z'");
+                new Book().item("id='z' href='" + href + "' media-type='" + type + "'")
+                    .due(due, "href " + href + " ahead of " + type, "59 E/p.opf <item id='z'");
             }
         }
         for (String href : new String[] {"%61", "%6A", "%fF", "%09", "%Aa", "%00", "%7f", "%20"}) {
@@ -431,20 +504,27 @@ public final class ManifestTest {
         new Book().swap(Book.PACK, "href='i/pic.png'", "href='i/pic.png' x='#'").due(due, "an href ahead of a #");
         new Book().swap(Book.PACK, "href='i/pic.png'", "href='i/pic.png' x='?'").due(due, "an href ahead of a ?");
         new Book().swap(Book.PACK, "href='i/pic.png'", "href='i/pic.png' x=' '").due(due, "an href ahead of a blank");
-        new Book().swap(Book.PACK, "href='i/pic.png'", "href='i' x='/pic.png'").due(due, "an href that more would make right", "60 E/p.opf <item id='pic'", "76 E/t/page.xhtml <img", "90 E/i/pic.png");
-        new Book().swap(Book.PACK, "properties='nav'", "properties='na' x='v'").due(due, "a property that more would make right", "45 E/p.opf <item id='nav'", "64 E/p.opf <manifest");
+        new Book().swap(Book.PACK, "href='i/pic.png'", "href='i' x='/pic.png'")
+            .due(due, "an href that more would make right", "60 E/p.opf <item id='pic'", "76 E/t/page.xhtml <img", "90 E/i/pic.png");
+        new Book().swap(Book.PACK, "properties='nav'", "properties='na' x='v'")
+            .due(due, "a property that more would make right", "45 E/p.opf <item id='nav'", "64 E/p.opf <manifest");
         new Book().swap(Book.PACK, "properties='nav'", "properties='nav' x='y'").due(due, "a property ahead of more");
-        new Book().swap(Book.PACK, "idref='nav'", "idref='na' x='v'").due(due, "an idref that more would make right", "66 E/p.opf <itemref idref='na'", "73 E/nav.xhtml <a href='#'");
+        new Book().swap(Book.PACK, "idref='nav'", "idref='na' x='v'")
+            .due(due, "an idref that more would make right", "66 E/p.opf <itemref idref='na'", "73 E/nav.xhtml <a href='#'");
         new Book().swap(Book.PACK, "idref='nav'", "idref='nav' linear='n' x='o'").due(due, "a linear that more would make no");
-        new Book().item("id='z' href='z' media-type='image/' x='png' properties='cover-image'").put("E/z", "").due(due, "a type ahead of more", "44 E/p.opf <item id='z'");
+        new Book().item("id='z' href='z' media-type='image/' x='png' properties='cover-image'").put("E/z", "")
+            .due(due, "a type ahead of more", "44 E/p.opf <item id='z'");
     }
 
     private void firstItems() {
         String first = "<manifest>\n";
         new Book().swap(Book.PACK, first, first + "<item id='y' href='q' media-type='x/y'/>\n<item id='z' href='q' media-type='x/y'/>\n")
-            .due(due, "the first item is missing, and again", "60 E/p.opf <item id='y'", "60 E/p.opf <item id='z'", "61 E/p.opf <item id='z'");
-        new Book().swap(Book.PACK, first, first + "<item id='y' href='q' media-type='x/y' fallback='y' media-overlay='y' properties='cover-image x'/>\n")
-            .due(due, "the first item has all that is wrong", "60 E/p.opf <item id='y'", "63 E/p.opf <item id='y'", "24 E/p.opf <item id='y'", "44 E/p.opf <item id='y'", "45 E/p.opf <item id='y'");
+            .due(due, "the first item is missing, and again", "60 E/p.opf <item id='y'", "60 E/p.opf <item id='z'",
+                "61 E/p.opf <item id='z'");
+        new Book().swap(Book.PACK, first, first
+            + "<item id='y' href='q' media-type='x/y' fallback='y' media-overlay='y' properties='cover-image x'/>\n")
+            .due(due, "the first item has all that is wrong", "60 E/p.opf <item id='y'", "63 E/p.opf <item id='y'",
+                "24 E/p.opf <item id='y'", "44 E/p.opf <item id='y'", "45 E/p.opf <item id='y'");
         new Book().swap(Book.PACK, "<spine>\n", "<spine>\n<itemref/>").due(due, "the first ref", "66 E/p.opf <itemref/");
         new Book().swap(Book.PACK, "\n</spine>", "<itemref/></spine>").due(due, "the last ref", "66 E/p.opf <itemref/");
         new Book().swap(Book.PACK, "\n</manifest>", "<item/></manifest>").due(due, "the last item", "57 E/p.opf <item/");

@@ -49,12 +49,14 @@ public final class MetadataTest {
         pack("</spine>", "</spine><spine/>").due(due, "spine once more", "52 E/p.opf " + root);
         pack("</spine>", "<spine/></spine>").due(due, "a spine in the spine");
         pack("<metadata xml", "<manifest/><metadata xml").due(due, "manifest first", "52 E/p.opf " + root);
-        new Book().put(Book.PACK, "<package xmlns='http://www.idpf.org/2007/opf' version='3.0'/>").due(due, "nothing", "52 E/p.opf " + root);
+        new Book().put(Book.PACK, "<package xmlns='http://www.idpf.org/2007/opf' version='3.0'/>")
+            .due(due, "nothing", "52 E/p.opf " + root);
         new Book().put(Book.PACK, "<package xmlns='http://www.idpf.org/2007/opf' version='3.0'><metadata/><manifest/></package>")
             .due(due, "no spine", "52 E/p.opf " + root);
         new Book().put(Book.PACK, "<package xmlns='http://www.idpf.org/2007/opf' version='3.0'><metadata/><manifest/><spine/></package>")
             .due(due, "empty ones", "51 E/p.opf " + root, "53 E/p.opf <metadata", "54 E/p.opf <metadata", "55 E/p.opf <metadata",
-                "56 E/p.opf <metadata", "64 E/p.opf <manifest", "68 E/p.opf <spine", "90 E/nav.xhtml", "90 E/t/page.xhtml", "90 E/i/pic.png");
+                "56 E/p.opf <metadata", "64 E/p.opf <manifest", "68 E/p.opf <spine", "90 E/nav.xhtml", "90 E/t/page.xhtml",
+                    "90 E/i/pic.png");
     }
 
     private void identifiers() {
@@ -62,12 +64,14 @@ public final class MetadataTest {
         pack("unique-identifier='uid'", "unique-identifier='ui'").due(due, "another id", "51 E/p.opf <package");
         pack("unique-identifier='uid'", "unique-identifier='page'").due(due, "the id of another element", "51 E/p.opf <package");
         pack("unique-identifier='uid'", "unique-identifier=''").swap(Book.PACK, "id='uid'", "id=''").due(due, "an empty id is one");
-        pack("</metadata>", "<x><dc:identifier id='u2'>x</dc:identifier></x></metadata>").swap(Book.PACK, "unique-identifier='uid'", "unique-identifier='u2'")
+        pack("</metadata>", "<x><dc:identifier id='u2'>x</dc:identifier></x></metadata>").swap(Book.PACK, "unique-identifier='uid'",
+            "unique-identifier='u2'")
             .due(due, "not in metadata itself", "51 E/p.opf <package");
         pack("<dc:identifier id='uid'>urn:x:1</dc:identifier>", "<identifier id='uid'>x</identifier>")
             .due(due, "of another namespace", "51 E/p.opf <package", "55 E/p.opf <metadata");
         pack("<dc:title>", "<dc:title id='uid'>").due(due, "an id again", "58 E/p.opf <dc:title");
-        pack("<dc:title>", "<dc:title id=''>").swap(Book.PACK, "<dc:language>", "<dc:language id=''>").due(due, "an empty id again", "58 E/p.opf <dc:language");
+        pack("<dc:title>", "<dc:title id=''>").swap(Book.PACK, "<dc:language>", "<dc:language id=''>")
+            .due(due, "an empty id again", "58 E/p.opf <dc:language");
         pack("<spine>", "<spine id='nav'>").swap(Book.PACK, "<itemref idref='nav'", "<itemref id='nav' idref='nav'")
             .due(due, "ids again", "58 E/p.opf <spine", "58 E/p.opf <itemref id");
         pack("<spine>", "<spine xmlns:q='u' q:id='nav'>").due(due, "an id of a namespace is none");
@@ -86,15 +90,20 @@ public final class MetadataTest {
     }
 
     private void moments() {
-        String[] right = {"2024-02-29T23:59:59Z", " \n2000-02-29T00:00:00Z\t", "0000-02-29T00:00:00Z", "0001-01-01T00:00:00Z", "9999-12-31T12:00:00Z",
+        String[] right = {"2024-02-29T23:59:59Z", " \n2000-02-29T00:00:00Z\t", "0000-02-29T00:00:00Z", "0001-01-01T00:00:00Z",
+            "9999-12-31T12:00:00Z",
             "2023-04-30T00:00:00Z", "2023-01-31T00:00:00Z", "2023-03-31T00:00:00Z", "2023-05-31T00:00:00Z", "2023-06-30T00:00:00Z",
-            "2023-07-31T00:00:00Z", "2023-08-31T00:00:00Z", "2023-09-30T00:00:00Z", "2023-10-31T00:00:00Z", "2023-11-30T00:00:00Z", "<!-- c -->2023-02-28<x/>T00:00:00Z"};
+            "2023-07-31T00:00:00Z", "2023-08-31T00:00:00Z", "2023-09-30T00:00:00Z", "2023-10-31T00:00:00Z", "2023-11-30T00:00:00Z",
+                "<!-- c -->2023-02-28<x/>T00:00:00Z"};
         for (String text : right) {
             pack(MOMENT, text).due(due, "modified " + text);
         }
-        String[] wrong = {"", "2023-02-29T00:00:00Z", "1900-02-29T00:00:00Z", "2024-02-30T00:00:00Z", "2023-04-31T00:00:00Z", "2023-06-31T00:00:00Z",
-            "2023-09-31T00:00:00Z", "2023-11-31T00:00:00Z", "2023-12-32T00:00:00Z", "2023-13-01T00:00:00Z", "2023-00-01T00:00:00Z", "2023-01-00T00:00:00Z",
-            "2023-01-01T24:00:00Z", "2023-01-01T00:60:00Z", "2023-01-01T00:00:60Z", "2023-01-01T00:00:00z", "2023-01-01 00:00:00Z", "2023-01-01T00:00:00",
+        String[] wrong = {"", "2023-02-29T00:00:00Z", "1900-02-29T00:00:00Z", "2024-02-30T00:00:00Z", "2023-04-31T00:00:00Z",
+            "2023-06-31T00:00:00Z",
+            "2023-09-31T00:00:00Z", "2023-11-31T00:00:00Z", "2023-12-32T00:00:00Z", "2023-13-01T00:00:00Z", "2023-00-01T00:00:00Z",
+                "2023-01-00T00:00:00Z",
+            "2023-01-01T24:00:00Z", "2023-01-01T00:60:00Z", "2023-01-01T00:00:60Z", "2023-01-01T00:00:00z", "2023-01-01 00:00:00Z",
+                "2023-01-01T00:00:00",
             "2023-01-01T00:00:00ZZ", "023-01-01T00:00:00Z", "2023/01/01T00:00:00Z", "2023-1-01T00:00:00Z", "+023-01-01T00:00:00Z", "x"};
         for (String text : wrong) {
             Book book = pack(MOMENT, text);
@@ -111,21 +120,27 @@ public final class MetadataTest {
     }
 
     private void prefixes() {
-        String[] right = {"", " \n", "a: x", "A: x", "z: x", "Z: x", "_: x", "a0A9Zz: x", "a: x b: y", "\t_a.-9: x\n", "a: a:", "a: x a: y"};
+        String[] right = {"", " \n", "a: x", "A: x", "z: x", "Z: x", "_: x", "a0A9Zz: x", "a: x b: y", "\t_a.-9: x\n", "a: a:",
+            "a: x a: y"};
         for (String text : right) {
             pack("version='3.0'", "version='3.0' prefix='" + text + "'").due(due, "prefix " + text);
         }
-        String[] wrong = {"a", "a:", "a: x b", "a: x b:", "a x", ": x", "1a: x", "@: x", "[: x", "`: x", "{: x", "a@: x", "a[: x", "a/: x", "a;: x", "-a: x", ".a: x", "a:b x", "a:: x", "\u00e9: x", "a+: x"};
+        String[] wrong = {"a", "a:", "a: x b", "a: x b:", "a x", ": x", "1a: x", "@: x", "[: x", "`: x", "{: x", "a@: x", "a[: x", "a/: x",
+            "a;: x", "-a: x", ".a: x", "a:b x", "a:: x", "\u00e9: x", "a+: x"};
         for (String text : wrong) {
             pack("version='3.0'", "version='3.0' prefix='" + text + "'").due(due, "prefix " + text, "23 E/p.opf <package");
         }
         String prefix = "version='3.0' prefix='a: x b: y 1: z c: w'";
-        pack("version='3.0'", prefix).meta("property='a:q'", "x").meta("property='b:q'", "x").due(due, "prefixes ahead of what is wrong", "23 E/p.opf <package");
-        pack("version='3.0'", prefix).meta("property='c:q'", "x").due(due, "prefixes behind it", "23 E/p.opf <package", "35 E/p.opf <meta property='c");
-        pack("version='3.0'", "version='3.0' prefix='a: x b:'").meta("property='b:q'", "x").due(due, "one whose second word is missing", "23 E/p.opf <package");
+        pack("version='3.0'", prefix).meta("property='a:q'", "x").meta("property='b:q'", "x")
+            .due(due, "prefixes ahead of what is wrong", "23 E/p.opf <package");
+        pack("version='3.0'", prefix).meta("property='c:q'", "x")
+            .due(due, "prefixes behind it", "23 E/p.opf <package", "35 E/p.opf <meta property='c");
+        pack("version='3.0'", "version='3.0' prefix='a: x b:'").meta("property='b:q'", "x")
+            .due(due, "one whose second word is missing", "23 E/p.opf <package");
         pack("version='3.0'", "version='3.0' prefix='ab: x'").meta("property='a:q'", "x").meta("property='abc:q'", "x")
             .due(due, "prefixes nearly the same", "35 E/p.opf <meta property='a:", "35 E/p.opf <meta property='abc");
-        pack("version='3.0'", "version='3.0' prefix='x: ab:'").meta("property='ab:q'", "x").due(due, "a second word is no prefix", "35 E/p.opf <meta property='ab:");
+        pack("version='3.0'", "version='3.0' prefix='x: ab:'").meta("property='ab:q'", "x")
+            .due(due, "a second word is no prefix", "35 E/p.opf <meta property='ab:");
     }
 
     private void metas() {
@@ -141,7 +156,8 @@ public final class MetadataTest {
         for (String word : "alternate-script authority belongs-to-collection collection-type display-seq file-as group-position identifier-type meta-auth role source-of term title-type a11y:x dcterms:x marc:x media:x onix:x rendition:x schema:x xsd:x a11y:b:c".split(" ")) {
             new Book().meta("property='" + word + "'", "x").due(due, "property " + word);
         }
-        for (String word : new String[] {"Role", "rol", "roles", "role ", " role", "x:y", ":x", ":", "a11y:", "role:x", "xsd:", "role term", " ", "dcterms"}) {
+        for (String word : new String[] {"Role", "rol", "roles", "role ", " role", "x:y", ":x", ":", "a11y:", "role:x", "xsd:", "role term",
+            " ", "dcterms"}) {
             new Book().meta("property='" + word + "'", "x").due(due, "property " + word, "35 " + at);
         }
     }
@@ -160,7 +176,8 @@ public final class MetadataTest {
         new Book().meta("property='role' refines='#page'", "x").due(due, "refines an item");
         Book ring = new Book().meta("property='role' refines='#b' id='a'", "x").meta("property='role' refines='#a' id='b'", "x")
             .meta("property='role' refines='#a' id='c'", "x");
-        ring.due(due, "a ring of two, and one that leads to it", "34 E/p.opf <meta property='role' refines='#b'", "34 E/p.opf <meta property='role' refines='#a' id='b'");
+        ring.due(due, "a ring of two, and one that leads to it", "34 E/p.opf <meta property='role' refines='#b'",
+            "34 E/p.opf <meta property='role' refines='#a' id='b'");
         ring = new Book().meta("property='role' refines='#b' id='a'", "x").meta("name='n' refines='#a' id='b'", "x");
         ring.due(due, "one with a name leads nowhere");
         ring = new Book().swap(Book.PACK, "<dc:title>", "<dc:title id='a'>").meta("property='role' refines='#a' id='a'", "x");
@@ -172,8 +189,10 @@ public final class MetadataTest {
             pack("version='3.0'", "version='" + version + "'").due(due, "version [" + version + "]", "50 E/p.opf <package");
         }
         pack("version='3.0'", "Version='3.0'").due(due, "another attribute", "50 E/p.opf <package");
-        pack("version='3.0'", "xmlns:o='http://www.idpf.org/2007/opf' o:version='3.0'").due(due, "an attribute of a namespace", "50 E/p.opf <package");
-        new Book().put(Book.PACK, "\n <Package xmlns='http://www.idpf.org/2007/opf' version='3.0'/>").due(due, "another name", "50 E/p.opf <Package");
+        pack("version='3.0'", "xmlns:o='http://www.idpf.org/2007/opf' o:version='3.0'")
+            .due(due, "an attribute of a namespace", "50 E/p.opf <package");
+        new Book().put(Book.PACK, "\n <Package xmlns='http://www.idpf.org/2007/opf' version='3.0'/>")
+            .due(due, "another name", "50 E/p.opf <Package");
         new Book().put(Book.PACK, "<package version='3.0'/>").due(due, "no namespace", "50 E/p.opf <package");
     }
 
@@ -190,28 +209,39 @@ public final class MetadataTest {
         String i = "<manifest/>";
         String s = "<spine/>";
         parts("all", m + i + s, true);
-        for (String wrong : new String[] {"", m, i, s, m + i, m + s, i + s, s + i + m, m + s + i, i + m + s, i + s + m, s + m + i, m + m + i + s, m + i + i + s, m + i + s + s, m + i + s + m, m + i + s + i,
-            m + i + s + "<x/>" + s, "<x/>" + m + i + s, m + "<x/>" + i + s, m + i + "<x/>" + s, "<x>" + m + i + s + "</x>", m + i + "<x>" + s + "</x>", m + i + "<Spine/>"}) {
+        for (String wrong : new String[] {"", m, i, s, m + i, m + s, i + s, s + i + m, m + s + i, i + m + s, i + s + m, s + m + i, m + m + i
+            + s, m + i + i + s, m + i + s + s, m + i + s + m, m + i + s + i,
+            m + i + s + "<x/>" + s, "<x/>" + m + i + s, m + "<x/>" + i + s, m + i + "<x/>" + s, "<x>" + m + i + s + "</x>", m + i + "<x>"
+                + s + "</x>", m + i + "<Spine/>"}) {
             parts(wrong, wrong, false);
         }
-        for (String right : new String[] {m + i + s + "<x/>", m + i + s + "<x/><guide/><x/>", "<x xmlns='u'/>" + m + "<x xmlns=''/>" + i + "<metadata xmlns='u'/>" + s + "<spine xmlns='u'/>",
-            m + i + s + "<x>" + m + i + s + "</x>", "t" + m + "t<!-- " + i + " -->" + i + s, "<metadata><metadata/><spine/></metadata>" + i + s}) {
+        for (String right : new String[] {m + i + s + "<x/>", m + i + s + "<x/><guide/><x/>", "<x xmlns='u'/>" + m + "<x xmlns=''/>" + i
+            + "<metadata xmlns='u'/>" + s + "<spine xmlns='u'/>",
+            m + i + s + "<x>" + m + i + s + "</x>", "t" + m + "t<!-- " + i + " -->" + i + s, "<metadata><metadata/><spine/></metadata>" + i
+                + s}) {
             parts(right, right, true);
         }
     }
 
     private void idsOfAll() {
-        pack("<package", "<package id='x'").swap(Book.PACK, "<metadata", "<metadata id='x'").due(due, "the root's and metadata's", "58 E/p.opf <metadata");
+        pack("<package", "<package id='x'").swap(Book.PACK, "<metadata", "<metadata id='x'")
+            .due(due, "the root's and metadata's", "58 E/p.opf <metadata");
         pack("<manifest>", "<manifest id='x'>").swap(Book.PACK, "<spine>", "<spine id='x'>").due(due, "parts'", "58 E/p.opf <spine");
-        pack("<itemref idref='nav'/>", "<itemref id='' idref='nav'/>").swap(Book.PACK, "<itemref idref='page'/>", "<itemref id='' idref='page'/>")
+        pack("<itemref idref='nav'/>", "<itemref id='' idref='nav'/>").swap(Book.PACK, "<itemref idref='page'/>",
+            "<itemref id='' idref='page'/>")
             .due(due, "empty ones of refs", "58 E/p.opf <itemref id='' idref='page'");
-        pack("</spine>", "</spine><x xmlns='u' id='nav'><y id='nav'/></x>").due(due, "of other namespaces, deeper", "58 E/p.opf <x xmlns", "58 E/p.opf <y");
+        pack("</spine>", "</spine><x xmlns='u' id='nav'><y id='nav'/></x>")
+            .due(due, "of other namespaces, deeper", "58 E/p.opf <x xmlns", "58 E/p.opf <y");
         pack("<dc:title>", "<dc:title id='Nav'>").due(due, "one in capitals is another");
         pack("<dc:title>", "<dc:title id='nav '>").due(due, "one with a blank is another");
-        pack("<dc:title>", "<dc:title id='a'>").swap(Book.PACK, "<dc:language>", "<dc:language id='ab'>").due(due, "a longer one is another");
-        new Book().item("id='nav'").due(due, "one of an item that counts for nothing else", "57 E/p.opf <item id='nav'/", "58 E/p.opf <item id='nav'/");
-        pack("<manifest>", "<manifest><item id='nav'/>").due(due, "one behind such an item", "57 E/p.opf <item id='nav'/", "58 E/p.opf <item id='nav' href");
-        pack("<dc:title>", "<dc:title id='uid'>").swap(Book.PACK, "<dc:language>", "<dc:language id='uid'>").due(due, "thrice", "58 E/p.opf <dc:title", "58 E/p.opf <dc:language");
+        pack("<dc:title>", "<dc:title id='a'>").swap(Book.PACK, "<dc:language>", "<dc:language id='ab'>")
+            .due(due, "a longer one is another");
+        new Book().item("id='nav'").due(due, "one of an item that counts for nothing else", "57 E/p.opf <item id='nav'/",
+            "58 E/p.opf <item id='nav'/");
+        pack("<manifest>", "<manifest><item id='nav'/>").due(due, "one behind such an item", "57 E/p.opf <item id='nav'/",
+            "58 E/p.opf <item id='nav' href");
+        pack("<dc:title>", "<dc:title id='uid'>").swap(Book.PACK, "<dc:language>", "<dc:language id='uid'>")
+            .due(due, "thrice", "58 E/p.opf <dc:title", "58 E/p.opf <dc:language");
     }
 
     private void identifiersInOrder() {
@@ -221,9 +251,11 @@ public final class MetadataTest {
         pack("<dc:identifier id='uid'>", "<dc:identifier>").due(due, "an identifier without an id", "51 E/p.opf <package");
         pack("<dc:identifier id='uid'>urn:x:1</dc:identifier>", "<dc:title id='uid'>x</dc:title><dc:identifier id='uid'>x</dc:identifier>")
             .due(due, "an identifier behind another with its id", "58 E/p.opf <dc:identifier");
-        pack("<spine>", "<spine xmlns:dc='http://purl.org/dc/elements/1.1/'><dc:identifier id='u2'>x</dc:identifier>").swap(Book.PACK, "unique-identifier='uid'", "unique-identifier='u2'")
+        pack("<spine>", "<spine xmlns:dc='http://purl.org/dc/elements/1.1/'><dc:identifier id='u2'>x</dc:identifier>").swap(Book.PACK,
+            "unique-identifier='uid'", "unique-identifier='u2'")
             .due(due, "an identifier that isn't in metadata", "51 E/p.opf <package");
-        pack("urn:x:1", "").swap(Book.PACK, "</dc:identifier>", "</dc:identifier><dc:identifier>x</dc:identifier>").due(due, "an identifier without a text is one");
+        pack("urn:x:1", "").swap(Book.PACK, "</dc:identifier>", "</dc:identifier><dc:identifier>x</dc:identifier>")
+            .due(due, "an identifier without a text is one");
     }
 
     private void textsOfBlanks() {
@@ -241,8 +273,10 @@ public final class MetadataTest {
                 pack(old, open + text + close).due(due, names[i] + " of " + text);
             }
             pack(old, open + " " + close + "<dc:" + names[i] + ">x</dc:" + names[i] + ">").due(due, names[i] + ": the second has one");
-            pack(old, open.replace("dc:", "") + "x" + close.replace("dc:", "")).due(due, names[i] + " of another namespace", i == 2 ? new String[] {at, "51 E/p.opf <package"} : new String[] {at});
-            pack(old, "<x>" + open + "x" + close + "</x>").due(due, names[i] + " not in it", i == 2 ? new String[] {at, "51 E/p.opf <package"} : new String[] {at});
+            pack(old, open.replace("dc:", "") + "x" + close.replace("dc:", ""))
+                .due(due, names[i] + " of another namespace", i == 2 ? new String[] {at, "51 E/p.opf <package"} : new String[] {at});
+            pack(old, "<x>" + open + "x" + close + "</x>").due(due, names[i] + " not in it", i == 2 ? new String[] {at,
+                "51 E/p.opf <package"} : new String[] {at});
         }
     }
 
@@ -316,9 +350,11 @@ public final class MetadataTest {
         pack(one, one.replace(MOMENT, "x") + one).due(due, "a first one that is wrong", at);
         pack(one, one.replace("'>", "' refines='#uid'>")).due(due, "only one with refines", at);
         pack(one, one + one.replace("'>", "' refines='#uid'>")).due(due, "one more with refines");
-        pack(one, one + one.replace("'>", "' refines=''>")).due(due, "one more with an empty refines", "33 E/p.opf <meta property='dcterms:modified' refines");
+        pack(one, one + one.replace("'>", "' refines=''>")).due(due, "one more with an empty refines",
+            "33 E/p.opf <meta property='dcterms:modified' refines");
         pack(one, one.replace("<meta", "<x:meta xmlns:x='u'").replace("</meta", "</x:meta")).due(due, "one of another namespace", at);
-        pack(one, one + one.replace("<meta", "<x:meta xmlns:x='u'").replace("</meta", "</x:meta")).due(due, "one more of another namespace");
+        pack(one, one + one.replace("<meta", "<x:meta xmlns:x='u'").replace("</meta", "</x:meta"))
+            .due(due, "one more of another namespace");
         pack(one, "<x>" + one + "</x>").due(due, "one not in metadata itself", at);
         pack(one, one + "<x>" + one + "</x>").due(due, "one more not in metadata itself");
         pack(one, one.replace("dcterms:modified", "modified")).due(due, "another property", at, "35 E/p.opf <meta prop");
@@ -346,10 +382,12 @@ public final class MetadataTest {
             prefix("a" + c + "b: x", inner);
             prefix("a: " + c, true);
         }
-        for (String right : new String[] {"", " ", "\t\n\r ", "a: x", " a: x ", "a:\tx\nb:\ry", "a: x b: y c: z", "a: :", "a: b:", "a: \u00e9", "_: x", "a: x a: x", "A.-_9: x", "dcterms: x"}) {
+        for (String right : new String[] {"", " ", "\t\n\r ", "a: x", " a: x ", "a:\tx\nb:\ry", "a: x b: y c: z", "a: :", "a: b:",
+            "a: \u00e9", "_: x", "a: x a: x", "A.-_9: x", "dcterms: x"}) {
             prefix(right, true);
         }
-        for (String wrong : new String[] {"a", "a:", ":", ": x", "a x", "a :x", "a : x", "a:x", "a:x y", "a: x b", "a: x b:", "a: x b y", "a: x y b: z", "\u00e9: x", "a\u00e9: x", "a:: x", "a: x : y", "x a: y", "9a: x", "-: x", ".: x"}) {
+        for (String wrong : new String[] {"a", "a:", ":", ": x", "a x", "a :x", "a : x", "a:x", "a:x y", "a: x b", "a: x b:", "a: x b y",
+            "a: x y b: z", "\u00e9: x", "a\u00e9: x", "a:: x", "a: x : y", "x a: y", "9a: x", "-: x", ".: x"}) {
             prefix(wrong, false);
         }
         pack("version='3.0'", "version='3.0' xml:prefix='x' xmlns:prefix='y'").due(due, "no prefix at all");
@@ -404,7 +442,8 @@ public final class MetadataTest {
         pack("<spine>", "<spine><meta/>").due(due, "one in the spine");
         pack("</metadata>", "<meta property='x:y' refines='z'/></metadata>")
             .due(due, "all at once", "32 E/p.opf <meta property='x", "33 E/p.opf <meta property='x", "35 E/p.opf <meta property='x");
-        pack("</metadata>", "<meta property='' refines='#uid'>x</meta></metadata>").due(due, "an empty property is 32 alone", "32 E/p.opf <meta property=''");
+        pack("</metadata>", "<meta property='' refines='#uid'>x</meta></metadata>")
+            .due(due, "an empty property is 32 alone", "32 E/p.opf <meta property=''");
         pack("</metadata>", "<meta property=' '>x</meta></metadata>").due(due, "a blank one is 35 alone", "35 E/p.opf <meta property=' '");
     }
 
@@ -432,14 +471,17 @@ public final class MetadataTest {
         pack("</metadata>", ring("ab")).swap(Book.PACK, "<dc:title>", "<dc:title id='b' refines='#a'>").due(due, "by another element");
         pack("</metadata>", ring("ab", "bc", "ca").replace("property='role' id='b'", "property='' id='b'"))
             .due(due, "by one with 32", at("a"), "34 E/p.opf <meta property='' id='b'", at("c"), "32 E/p.opf <meta property='' id='b'");
-        pack("</metadata>", ring("ab", "ac", "ba")).due(due, "the first with an id counts", at("a"), at("b"), "58 E/p.opf <meta property='role' id='a' refines='#c'", "33 E/p.opf <meta property='role' id='a' refines='#c'");
+        pack("</metadata>", ring("ab", "ac", "ba")).due(due, "the first with an id counts", at("a"), at("b"),
+            "58 E/p.opf <meta property='role' id='a' refines='#c'", "33 E/p.opf <meta property='role' id='a' refines='#c'");
     }
 
     /** With 50 or 52 nothing else of the book is looked at but the encryption. */
     private void nothingElse() {
         for (String[] change : new String[][] {{"version='3.0'", "version='2'", "50"}, {"<spine>", "<x/><spine>", "52"}}) {
-            Book book = pack(change[0], change[1]).swap(Book.PACK, "<dc:title>T</dc:title>", "").swap(Book.PACK, "id='page'", "id='nav'").put("x", "").put(Book.PAGE, "<");
-            book.put(Book.ENCRYPTION, "<x/>").swap(Book.PACK, "idref='nav'", "idref='q'").due(due, "with " + change[2], change[2] + " E/p.opf <package", "80 META-INF/encryption.xml <");
+            Book book = pack(change[0], change[1]).swap(Book.PACK, "<dc:title>T</dc:title>", "").swap(Book.PACK, "id='page'", "id='nav'")
+                .put("x", "").put(Book.PAGE, "<");
+            book.put(Book.ENCRYPTION, "<x/>").swap(Book.PACK, "idref='nav'", "idref='q'")
+                .due(due, "with " + change[2], change[2] + " E/p.opf <package", "80 META-INF/encryption.xml <");
         }
     }
 
@@ -460,22 +502,29 @@ public final class MetadataTest {
         }
         pack(id, "<meta id='m' refines='#m' property='role'>x</meta>" + id).due(due, "a ring first", "34 E/p.opf <meta id");
         pack(id, "<meta property='media:duration'>x</meta>" + id).due(due, "a duration first", "37 E/p.opf <meta prop");
-        pack("</metadata>", "<meta property='media:duration'>x</meta></metadata>").due(due, "a duration last", "37 E/p.opf <meta property='media");
+        pack("</metadata>", "<meta property='media:duration'>x</meta></metadata>")
+            .due(due, "a duration last", "37 E/p.opf <meta property='media");
         pack("</metadata>", "<meta id='m' refines='#m' property='role'>x</meta></metadata>").due(due, "a ring last", "34 E/p.opf <meta id");
     }
 
     /** A value ends where it ends: what stands behind it in the document is no part of it. */
     private void endsOfValues() {
         for (String behind : new String[] {"", " x=' y'", " x='y'", " x=':'", "\n"}) {
-            pack("unique-identifier='uid'", "unique-identifier='uid' prefix='a:'" + behind).due(due, "a second word that is missing, ahead of [" + behind + "]", "23 E/p.opf <package");
+            pack("unique-identifier='uid'", "unique-identifier='uid' prefix='a:'" + behind)
+                .due(due, "a second word that is missing, ahead of [" + behind + "]", "23 E/p.opf <package");
             pack("unique-identifier='uid'", "unique-identifier='uid' prefix='a: x '" + behind).due(due, "a pair ahead of [" + behind + "]");
             pack("unique-identifier='uid'", "unique-identifier='uid' prefix=''" + behind).due(due, "no words ahead of [" + behind + "]");
         }
         pack("</metadata>", "<meta property='role' x='s'>x</meta></metadata>").due(due, "a property ahead of more");
-        pack("</metadata>", "<meta property='rol' x='e'>x</meta></metadata>").due(due, "a property that more would make right", "35 E/p.opf <meta property='rol'");
-        pack("</metadata>", "<meta property='a11y:' x='e'>x</meta></metadata>").due(due, "nothing behind the :", "35 E/p.opf <meta property='a11y:'");
-        pack("</metadata>", "<meta property='role' refines='#ui' x='d'>x</meta></metadata>").due(due, "an id that more would make right", "33 E/p.opf <meta property='role'");
-        pack("<dc:title>T<", "<dc:title> <").swap(Book.PACK, "<dc:language>en", "<dc:language>en").due(due, "a text ahead of another", "53 E/p.opf <metadata");
-        pack("2024-02-29T23:59:59Z</meta>", "2024-02-29T23:59:59</meta>Z").due(due, "a moment that more would make right", "56 E/p.opf <metadata");
+        pack("</metadata>", "<meta property='rol' x='e'>x</meta></metadata>")
+            .due(due, "a property that more would make right", "35 E/p.opf <meta property='rol'");
+        pack("</metadata>", "<meta property='a11y:' x='e'>x</meta></metadata>")
+            .due(due, "nothing behind the :", "35 E/p.opf <meta property='a11y:'");
+        pack("</metadata>", "<meta property='role' refines='#ui' x='d'>x</meta></metadata>")
+            .due(due, "an id that more would make right", "33 E/p.opf <meta property='role'");
+        pack("<dc:title>T<", "<dc:title> <").swap(Book.PACK, "<dc:language>en", "<dc:language>en")
+            .due(due, "a text ahead of another", "53 E/p.opf <metadata");
+        pack("2024-02-29T23:59:59Z</meta>", "2024-02-29T23:59:59</meta>Z")
+            .due(due, "a moment that more would make right", "56 E/p.opf <metadata");
     }
 }

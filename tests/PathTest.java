@@ -140,8 +140,10 @@ public final class PathTest {
             .due(due, "two missing ones", "60 E/p.opf <item id='y'", "60 E/p.opf <item id='z'");
         new Book().item("id='y' href='../a' media-type='text/css'").item("id='z' href='../b' media-type='text/css'")
             .due(due, "two missing ones of one length", "60 E/p.opf <item id='y'", "60 E/p.opf <item id='z'");
-        new Book().item("id='x' href='../a' media-type='text/css'").item("id='y' href='..' media-type='text/css'").item("id='z' href='../a' media-type='text/css'")
-            .due(due, "one amid that is bad", "60 E/p.opf <item id='x'", "59 E/p.opf <item id='y'", "60 E/p.opf <item id='z'", "61 E/p.opf <item id='z'");
+        new Book().item("id='x' href='../a' media-type='text/css'").item("id='y' href='..' media-type='text/css'")
+            .item("id='z' href='../a' media-type='text/css'")
+            .due(due, "one amid that is bad", "60 E/p.opf <item id='x'", "59 E/p.opf <item id='y'", "60 E/p.opf <item id='z'",
+                "61 E/p.opf <item id='z'");
         new Book().item("id='y' href='nav.xhtml' media-type='text/css'")
             .due(due, "there twice", "61 E/p.opf <item id='y'");
         new Book().item("id='y' href='/' media-type='text/css'").item("id='z' href='/' media-type='text/css'")
@@ -153,7 +155,8 @@ public final class PathTest {
         Book book = new Book();
         String pack = book.files.get(Book.PACK);
         book.drop(Book.PACK).drop(Book.NAV).drop(Book.PAGE).drop(Book.PICTURE).swap(Book.CONTAINER, "E/p.opf", ".//p.opf");
-        book.put("/p.opf", pack).put("/nav.xhtml", new Book().files.get(Book.NAV)).put("/t/page.xhtml", "<html xmlns='http://www.w3.org/1999/xhtml'/>");
+        book.put("/p.opf", pack).put("/nav.xhtml", new Book().files.get(Book.NAV)).put("/t/page.xhtml",
+            "<html xmlns='http://www.w3.org/1999/xhtml'/>");
         book.put("/i/pic.png", "x");
         book.due(due, "names that begin with /", "10 /p.opf", "10 /nav.xhtml", "10 /t/page.xhtml", "10 /i/pic.png");
     }
@@ -200,7 +203,8 @@ public final class PathTest {
     private void told(String path, String name) {
         Zip zip = new Zip();
         zip.stored("mimetype", Zip.latin("application/epub+zip"));
-        zip.stored(Book.CONTAINER, Zip.utf8(new Book().files.get(Book.CONTAINER).replace("'E/p.opf'", path.contains("'") ? "\"" + escaped(path) + "\"" : "'" + escaped(path) + "'")));
+        zip.stored(Book.CONTAINER, Zip.utf8(new Book().files.get(Book.CONTAINER).replace("'E/p.opf'", path.contains("'") ? "\""
+            + escaped(path) + "\"" : "'" + escaped(path) + "'")));
         zip.add(name == null ? Zip.latin("none") : Zip.utf8(name), Zip.latin("<x/>"), Zip.latin("<x/>"), 0);
         Desk desk = new Desk();
         desk.check(zip.bytes());
@@ -212,7 +216,8 @@ public final class PathTest {
     }
 
     private void percents() {
-        for (String bad : new String[] {"%", "%6", "a%", "a%6", "%g1", "%1g", "%/1", "%1/", "%%61", "%6%1", "% 61", "%+1", "%-1", "%1#", "%#11", "%:1", "%@1", "%`1", "%G1", "%0x", "a#%", "a#%6", "a#%6g", "a%zz/../b"}) {
+        for (String bad : new String[] {"%", "%6", "a%", "a%6", "%g1", "%1g", "%/1", "%1/", "%%61", "%6%1", "% 61", "%+1", "%-1", "%1#",
+            "%#11", "%:1", "%@1", "%`1", "%G1", "%0x", "a#%", "a#%6", "a#%6g", "a%zz/../b"}) {
             told(bad, null);
         }
         told("%61%62", "ab");
@@ -316,10 +321,12 @@ public final class PathTest {
 
     /** A page of E/t: values there are told from E/t on. */
     private void fromPages() {
-        for (String right : new String[] {"../i/pic.png", "../../E/i/pic.png", "./../i/pic.png", "x/../../i/pic.png", "../i/pic.png#x", "../i/%70ic.png", "../i/x/../pic.png", "../i/pic.png/", "../i/pic.png/."}) {
+        for (String right : new String[] {"../i/pic.png", "../../E/i/pic.png", "./../i/pic.png", "x/../../i/pic.png", "../i/pic.png#x",
+            "../i/%70ic.png", "../i/x/../pic.png", "../i/pic.png/", "../i/pic.png/."}) {
             new Book().swap(Book.PAGE, "../i/pic.png", right).due(due, "src " + right);
         }
-        for (String wrong : new String[] {"i/pic.png", "../../i/pic.png", "../../../E/i/pic.png", "../../../../E/i/pic.png", "/E/i/pic.png", "../i/pic.png?", "../i%2Fpic.png", "../i//pic.png", "../I/pic.png", ".", "..", "../..", "../../..", "", "http:../i/pic.png"}) {
+        for (String wrong : new String[] {"i/pic.png", "../../i/pic.png", "../../../E/i/pic.png", "../../../../E/i/pic.png", "/E/i/pic.png",
+            "../i/pic.png?", "../i%2Fpic.png", "../i//pic.png", "../I/pic.png", ".", "..", "../..", "../../..", "", "http:../i/pic.png"}) {
             new Book().swap(Book.PAGE, "../i/pic.png", wrong).due(due, "src " + wrong, "76 E/t/page.xhtml <img");
         }
     }
@@ -330,7 +337,8 @@ public final class PathTest {
         new Book().swap(Book.PAGE, "../nav.xhtml", "#x").due(due, "a link into the page itself");
         new Book().swap(Book.PAGE, "../nav.xhtml", "#x?").due(due, "one that is bad behind the sign", "77 E/t/page.xhtml <a");
         new Book().swap(Book.PAGE, "../nav.xhtml", "#%").due(due, "one that is bad behind the sign", "77 E/t/page.xhtml <a");
-        new Book().item("id='o' href='o' media-type='application/smil+xml'").put("E/o", "<smil xmlns='http://www.w3.org/ns/SMIL' version='3.0'><body><par><text src='#'/></par></body></smil>")
+        new Book().item("id='o' href='o' media-type='application/smil+xml'").put("E/o",
+            "<smil xmlns='http://www.w3.org/ns/SMIL' version='3.0'><body><par><text src='#'/></par></body></smil>")
             .due(due, "an overlay's own");
         // The container as the package: it is none, but its own name is found.
         new Book().swap(Book.CONTAINER, "E/p.opf", "#").due(due, "the container as the package", "50 META-INF/container.xml <");

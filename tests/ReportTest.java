@@ -73,20 +73,25 @@ public final class ReportTest {
         for (int i = 0; i < 12; i++) {
             zip.stored("a" + (i == 11 ? 2 : i), new byte[0]).flags = i % 2;
         }
-        due.is("entries above ten", new Desk().report(zip.bytes()), "20@-1:0:0 22@-1:0:0 13@1:0:0 13@3:0:0 13@5:0:0 13@7:0:0 13@9:0:0 11@11:0:0 13@11:0:0");
+        due.is("entries above ten", new Desk().report(zip.bytes()),
+            "20@-1:0:0 22@-1:0:0 13@1:0:0 13@3:0:0 13@5:0:0 13@7:0:0 13@9:0:0 11@11:0:0 13@11:0:0");
     }
 
     /** What two rules would tell at one place with one code is told once. */
     private void once() {
         new Book().swap(Book.NAV, "epub:type='toc'", "epub:type='toc page-list landmarks'").swap(Book.NAV, ">One<", "><")
-            .due(due, "a nav that is three", "48 E/nav.xhtml <a href='t", "74 E/nav.xhtml <a href='t", "48 E/nav.xhtml <li><span", "48 E/nav.xhtml <a href='#'");
+            .due(due, "a nav that is three", "48 E/nav.xhtml <a href='t", "74 E/nav.xhtml <a href='t", "48 E/nav.xhtml <li><span",
+                "48 E/nav.xhtml <a href='#'");
         Book book = new Book().put(Book.PAGE, "<html>").item("id='o' href='t/page.xhtml' media-type='application/smil+xml'");
         due.is("a page that is an overlay too", new Desk().report(book.bytes()), "61@2:12:1 30@4:1:7");
-        book = new Book().item("id='c' href='../META-INF/container.xml' media-type='application/xhtml+xml'").swap(Book.CONTAINER, "</container>", "");
+        book = new Book().item("id='c' href='../META-INF/container.xml' media-type='application/xhtml+xml'").swap(Book.CONTAINER,
+            "</container>", "");
         due.is("a container that isn't parsed", new Desk().report(book.bytes()), "30@1:5:1");
-        Book twice = new Book().put(Book.ENCRYPTION, "<a>").item("id='c' href='../META-INF/encryption.xml' media-type='application/xhtml+xml'");
+        Book twice = new Book().put(Book.ENCRYPTION, "<a>")
+            .item("id='c' href='../META-INF/encryption.xml' media-type='application/xhtml+xml'");
         due.is("an encryption that is a page too", new Desk().report(twice.bytes()), "30@6:1:4");
-        new Book().swap(Book.PACK, "id='page'", "id='page' properties='x y z'").due(due, "several wrong properties", "45 E/p.opf <item id='page'");
+        new Book().swap(Book.PACK, "id='page'", "id='page' properties='x y z'")
+            .due(due, "several wrong properties", "45 E/p.opf <item id='page'");
         new Book().swap(Book.PACK, "<dc:title>", "<dc:title id='uid'>").swap(Book.PACK, "<dc:language>", "<dc:language id='uid'>")
             .due(due, "an id that is there three times", "58 E/p.opf <dc:title", "58 E/p.opf <dc:language");
     }

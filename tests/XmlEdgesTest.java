@@ -117,7 +117,8 @@ public final class XmlEdgesTest {
 
     /** Chars above 127 are all good for names. */
     private void wideChars() {
-        for (String c : new String[] {"\u0080", "\u00a0", "\u00b7", "\u00d7", "\u07ff", "\u0800", "\u2028", "\ud7ff", "\ue000", "\ufeff", "\ufffd", "\ud800\udc00", "\udbff\udfff"}) {
+        for (String c : new String[] {"\u0080", "\u00a0", "\u00b7", "\u00d7", "\u07ff", "\u0800", "\u2028", "\ud7ff", "\ue000", "\ufeff",
+            "\ufffd", "\ud800\udc00", "\udbff\udfff"}) {
             right("<" + c + "></" + c + ">");
             right("<a" + c + "/>");
             right("<a " + c + "='" + c + "'>" + c + "</a>");
@@ -129,7 +130,8 @@ public final class XmlEdgesTest {
 
     /** Which chars there are, in everything that has chars. */
     private void charsInside() {
-        String[] around = {"<a>|</a>", "<a b='|'/>", "<a b=\"|\"/>", "<a><!--|--></a>", "<a><?p |?></a>", "<a><![CDATA[|]]></a>", "<!--|--><a/>", "<a/><?p |?>", "<a/><!--|-->"};
+        String[] around = {"<a>|</a>", "<a b='|'/>", "<a b=\"|\"/>", "<a><!--|--></a>", "<a><?p |?></a>", "<a><![CDATA[|]]></a>",
+            "<!--|--><a/>", "<a/><?p |?>", "<a/><!--|-->"};
         for (String text : around) {
             int at = text.indexOf('|');
             String head = text.substring(0, at);
@@ -153,8 +155,10 @@ public final class XmlEdgesTest {
 
     /** Bytes that are no chars, wherever a document may have or end with something. */
     private void badBytes() {
-        String[] heads = {"", " ", "<a/>", "<a/> ", "<a></a>", "<a>", "<a>x", "<", "<a", "<a ", "<a b", "<a b=", "<a b='", "<a b='x'", "<a/", "<a><", "<a></", "<a></a", "<a></a ", "<!", "<!-", "<!--", "<!-- -", "<!-- --", "<?", "<?p", "<?p ", "<?p ?",
-            "<!D", "<!DOCTYPE", "<!DOCTYPE ", "<!DOCTYPE a", "<a><![", "<a><![CDATA[", "<a><![CDATA[]", "<a><![CDATA[]]", "<?xml ", "<?xml version='1.0'", "<?xml version='1.0'?", "<a>]]", "<a>&amp;", "\ufeff", "\ufeff<a/>"};
+        String[] heads = {"", " ", "<a/>", "<a/> ", "<a></a>", "<a>", "<a>x", "<", "<a", "<a ", "<a b", "<a b=", "<a b='", "<a b='x'",
+            "<a/", "<a><", "<a></", "<a></a", "<a></a ", "<!", "<!-", "<!--", "<!-- -", "<!-- --", "<?", "<?p", "<?p ", "<?p ?",
+            "<!D", "<!DOCTYPE", "<!DOCTYPE ", "<!DOCTYPE a", "<a><![", "<a><![CDATA[", "<a><![CDATA[]", "<a><![CDATA[]]", "<?xml ",
+                "<?xml version='1.0'", "<?xml version='1.0'?", "<a>]]", "<a>&amp;", "\ufeff", "\ufeff<a/>"};
         for (String head : heads) {
             int at = head.length() + (head.startsWith("\ufeff") ? 0 : 1);
             for (int bad : new int[] {0xFF, 0x80, 0xC3, 0, 1, 0x0B}) {
@@ -207,7 +211,8 @@ public final class XmlEdgesTest {
             right("<?xml" + b + "version" + b + "=" + b + "'1.0'" + b + "encoding" + b + "=" + b + "'utf-8'" + b + "?><a/>");
             right(b + "<a/>");
             right("<a/>" + b);
-            right(b + "<!DOCTYPE" + b + "a" + b + ">" + b + "<!---->" + b + "<?p" + b + "?>" + b + "<a" + b + "b" + b + "=" + b + "''" + b + "c=''" + b + "></a" + b + ">" + b);
+            right(b + "<!DOCTYPE" + b + "a" + b + ">" + b + "<!---->" + b + "<?p" + b + "?>" + b + "<a" + b + "b" + b + "=" + b + "''" + b
+                + "c=''" + b + "></a" + b + ">" + b);
             right("<a" + b + "/>");
         }
         right("<?xml version='1.0'?><a b=''/>");
@@ -276,7 +281,8 @@ public final class XmlEdgesTest {
     }
 
     private void declarations() {
-        for (String text : new String[] {"<?xml version='1.0'?>", "<?xml version=\"1.0\"?>", "<?xml version='1.0' encoding=\"Utf-8\"?>", "<?xml version=\"1.0\" encoding='uTF-8'?>"}) {
+        for (String text : new String[] {"<?xml version='1.0'?>", "<?xml version=\"1.0\"?>", "<?xml version='1.0' encoding=\"Utf-8\"?>",
+            "<?xml version=\"1.0\" encoding='uTF-8'?>"}) {
             right(text + "<a/>");
             right("\ufeff" + text + "<a/>");
         }
@@ -377,7 +383,8 @@ public final class XmlEdgesTest {
     }
 
     private void textsAndCdata() {
-        for (String inside : new String[] {"]", "]]", "]>", "] ]>", "]]&gt;", "]]&amp;>", "]&lt;]>", "&#93;]>", "]]<b/>>", "]]<!---->>", "]]<?p?>>", "]]<![CDATA[]]>>", ">", "\"'", "--", "?>", "<![CDATA[]]>]>"}) {
+        for (String inside : new String[] {"]", "]]", "]>", "] ]>", "]]&gt;", "]]&amp;>", "]&lt;]>", "&#93;]>", "]]<b/>>", "]]<!---->>",
+            "]]<?p?>>", "]]<![CDATA[]]>>", ">", "\"'", "--", "?>", "<![CDATA[]]>]>"}) {
             right("<a>" + inside + "</a>");
         }
         wrong("<a>]]\u00a4></a>");
@@ -415,20 +422,24 @@ public final class XmlEdgesTest {
     private void numbersOfReferences() {
         int[] right = {9, 10, 13, 32, 38, 60, 127, 128, 55295, 57344, 65533, 65536, 1114111};
         for (int c : right) {
-            right("<a b='&#" + c + ";'>&#x" + Integer.toHexString(c) + ";&#x" + Integer.toHexString(c).toUpperCase() + ";&#000" + c + ";&#x000" + Integer.toHexString(c) + ";</a>");
+            right("<a b='&#" + c + ";'>&#x" + Integer.toHexString(c) + ";&#x" + Integer.toHexString(c).toUpperCase() + ";&#000" + c
+                + ";&#x000" + Integer.toHexString(c) + ";</a>");
         }
-        long[] wrong = {0, 8, 11, 12, 14, 31, 55296, 57343, 65534, 65535, 1114112, 2147483647L, 2147483648L, 2147483713L, 4294967295L, 4294967296L + 65, 4294967296L * 65536 + 65, Long.MAX_VALUE};
+        long[] wrong = {0, 8, 11, 12, 14, 31, 55296, 57343, 65534, 65535, 1114112, 2147483647L, 2147483648L, 2147483713L, 4294967295L,
+            4294967296L + 65, 4294967296L * 65536 + 65, Long.MAX_VALUE};
         for (long c : wrong) {
             wrong("<a>\u00a4&#" + c + ";</a>");
             wrong("<a b='\u00a4&#x" + Long.toHexString(c) + ";'/>");
         }
         wrong("<a>\u00a4&#x10000000000000041;</a>");
         wrong("<a>\u00a4&#18446744073709551681;</a>");
-        for (String bad : new String[] {"&#a;", "&#x;", "&#;", "&#xG;", "&#1a;", "&#+65;", "&#-65;", "&#x-41;", "&#6 5;", "&#65", "&#x41", "&#X41;", "&#65,", "&#x4:;", "&#/;", "&#x@;", "&#x`;", "&#:;"}) {
+        for (String bad : new String[] {"&#a;", "&#x;", "&#;", "&#xG;", "&#1a;", "&#+65;", "&#-65;", "&#x-41;", "&#6 5;", "&#65", "&#x41",
+            "&#X41;", "&#65,", "&#x4:;", "&#/;", "&#x@;", "&#x`;", "&#:;"}) {
             wrong("<a>x\u00a4" + bad + "</a>");
             wrong("<a b='x\u00a4" + bad + "'/>");
         }
-        for (String bad : new String[] {"&am;", "&ampp;", "&l;", "&ltt;", "&g;", "&gtt;", "&quo;", "&quots;", "&apo;", "&aposs;", "&LT;", "&Amp;", "&;", "&&amp;", "&a mp;", "&x;", "&amp&amp;", "&lt", "&gt:"}) {
+        for (String bad : new String[] {"&am;", "&ampp;", "&l;", "&ltt;", "&g;", "&gtt;", "&quo;", "&quots;", "&apo;", "&aposs;", "&LT;",
+            "&Amp;", "&;", "&&amp;", "&a mp;", "&x;", "&amp&amp;", "&lt", "&gt:"}) {
             wrong("<a>x\u00a4" + bad + "</a>");
             wrong("<a b='x\u00a4" + bad + "'/>");
         }

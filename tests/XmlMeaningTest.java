@@ -120,17 +120,22 @@ public final class XmlMeaningTest {
     private void innermost() {
         Book book = new Book();
         String pack = book.files.get(Book.PACK);
-        String prefixed = pack.replaceAll("<(/?)(package|metadata|manifest|spine|meta|item|itemref)\\b", "<$1o:$2").replace("xmlns=", "xmlns:o=");
+        String prefixed = pack.replaceAll("<(/?)(package|metadata|manifest|spine|meta|item|itemref)\\b", "<$1o:$2").replace("xmlns=",
+            "xmlns:o=");
         new Book().put(Book.PACK, prefixed).due(due, "a prefix for all");
-        new Book().swap(Book.PACK, "<manifest>", "<o:manifest xmlns:o='" + OPF + "'>").swap(Book.PACK, "</manifest>", "</o:manifest>").due(due, "a prefix for one");
+        new Book().swap(Book.PACK, "<manifest>", "<o:manifest xmlns:o='" + OPF + "'>").swap(Book.PACK, "</manifest>", "</o:manifest>")
+            .due(due, "a prefix for one");
         new Book().swap(Book.PACK, "<manifest>", "<manifest xmlns='u'>").due(due, "another one for one", "52 E/p.opf <package");
         new Book().swap(Book.PACK, "<manifest>", "<manifest xmlns=''>").due(due, "none for one", "52 E/p.opf <package");
         new Book().swap(Book.PACK, "<spine>", "<x xmlns='u'><item/></x><spine>").due(due, "what lies in it");
         new Book().swap(Book.PACK, "<spine>", "<x xmlns=''/><spine>").due(due, "an element of none");
-        new Book().swap(Book.PACK, "<spine>", "<x xmlns='u'><y xmlns='" + OPF + "'/></x><spine>").due(due, "an inner one isn't in the root");
-        new Book().swap(Book.PACK, "<spine>", "<dc:x xmlns:dc='u'/><x:x xmlns:x='" + OPF + "'/><spine>").due(due, "the same namespace by a prefix", "52 E/p.opf <package");
+        new Book().swap(Book.PACK, "<spine>", "<x xmlns='u'><y xmlns='" + OPF + "'/></x><spine>")
+            .due(due, "an inner one isn't in the root");
+        new Book().swap(Book.PACK, "<spine>", "<dc:x xmlns:dc='u'/><x:x xmlns:x='" + OPF + "'/><spine>")
+            .due(due, "the same namespace by a prefix", "52 E/p.opf <package");
         new Book().swap(Book.PACK, "<dc:title>T<", "<dc:title xmlns:dc='u'>T<").due(due, "a prefix told anew", "53 E/p.opf <metadata");
-        new Book().swap(Book.PACK, "<dc:language>en</dc:language>", "<x xmlns:dc='u'><dc:x/></x><dc:language>en</dc:language>").due(due, "only in what is in it");
+        new Book().swap(Book.PACK, "<dc:language>en</dc:language>", "<x xmlns:dc='u'><dc:x/></x><dc:language>en</dc:language>")
+            .due(due, "only in what is in it");
     }
 
     private void attributesOfNone() {
@@ -138,11 +143,14 @@ public final class XmlMeaningTest {
             .due(due, "an attribute with a prefix isn't of none", "66 E/p.opf <o:itemref", "73 E/nav.xhtml <a href='#'");
         new Book().swap(Book.PACK, "<itemref idref='nav'/>", "<itemref xmlns:idref='nav'/>")
             .due(due, "attributes of xmlns aren't looked at", "66 E/p.opf <itemref xmlns", "73 E/nav.xhtml <a href='#'");
-        new Book().swap(Book.PACK, "<itemref idref='nav'/>", "<itemref idref='nav' xmlns:linear='no' xml:linear='no'/>").due(due, "nor are those of xml");
+        new Book().swap(Book.PACK, "<itemref idref='nav'/>", "<itemref idref='nav' xmlns:linear='no' xml:linear='no'/>")
+            .due(due, "nor are those of xml");
         new Book().swap(Book.PACK, "<spine>", "<spine xml:id='nav' xmlns:id='page'>").due(due, "nor are their ids");
-        new Book().swap(Book.PACK, " unique-identifier='uid'", " xmlns:unique-identifier='uid'").due(due, "nor are the root's", "51 E/p.opf <package");
+        new Book().swap(Book.PACK, " unique-identifier='uid'", " xmlns:unique-identifier='uid'")
+            .due(due, "nor are the root's", "51 E/p.opf <package");
         new Book().swap(Book.NAV, "epub:type='toc'", "type='toc'").due(due, "a type of none", "70 E/nav.xhtml <html");
-        new Book().swap(Book.NAV, "xmlns:epub='http://www.idpf.org/2007/ops'", "xmlns:epub='u'").due(due, "a type of another", "70 E/nav.xhtml <html");
+        new Book().swap(Book.NAV, "xmlns:epub='http://www.idpf.org/2007/ops'", "xmlns:epub='u'")
+            .due(due, "a type of another", "70 E/nav.xhtml <html");
         new Book().swap(Book.NAV, "xmlns:epub='http://www.idpf.org/2007/ops'", "xmlns:epub='u' xmlns:e='http://www.idpf.org/2007/ops'")
             .swap(Book.NAV, "epub:type='toc'", "epub:type='x' e:type='toc' type='y'").due(due, "a type by another prefix");
     }
@@ -276,7 +284,8 @@ public final class XmlMeaningTest {
         label("a\r\nb\rc\td\ne", "a b c d e");
         label("a&#13;&#10;b", "a b");
         label("\ud83d\ude00&#x1F600;\u0800\u07ff\u0080\u007f", "\ud83d\ude00\ud83d\ude00\u0800\u07ff\u0080\u007f");
-        new Book().swap(Book.PACK, "<dc:title>T<", "<dc:title><x>T</x> <x>T</x><").due(due, "the texts of inner elements aren't its own", "53 E/p.opf <metadata");
+        new Book().swap(Book.PACK, "<dc:title>T<", "<dc:title><x>T</x> <x>T</x><")
+            .due(due, "the texts of inner elements aren't its own", "53 E/p.opf <metadata");
         new Book().swap(Book.PACK, "<dc:title>T<", "<dc:title> <x/>T<x/><").due(due, "its texts around inner ones are");
         new Book().swap(Book.PACK, "2024-02-29T23:59:59Z", "2024-<x>9</x>02-29<![CDATA[T2]]>&#51;:59:59Z").due(due, "one behind the other");
     }
@@ -303,10 +312,12 @@ public final class XmlMeaningTest {
         wrong("<a>\t\t\u00a4&</a>");
         wrong("<a>" + "x".repeat(5990) + "\u00a4&");
         wrong("<a>" + "\ud83d\ude00".repeat(1490) + "\u00a4&");
-        new Book().swap(Book.PACK, "<dc:title>T</dc:title>\n", "<dc:title>\u00e9\ud83d\ude00\u20ac</dc:title>\t").swap(Book.PACK, "<dc:language>", "<dc:language id='uid'>")
+        new Book().swap(Book.PACK, "<dc:title>T</dc:title>\n", "<dc:title>\u00e9\ud83d\ude00\u20ac</dc:title>\t").swap(Book.PACK,
+            "<dc:language>", "<dc:language id='uid'>")
             .due(due, "an element behind wide chars", "58 E/p.opf <dc:language");
         Desk desk = new Desk();
-        desk.check(new Book().swap(Book.PACK, "\n<dc:title>", "\r<dc:title a='\r' id='uid'>").swap(Book.PACK, "\n<dc:language>", "\r\n  <dc:language\r\nid='uid'>").bytes());
+        desk.check(new Book().swap(Book.PACK, "\n<dc:title>", "\r<dc:title a='\r' id='uid'>").swap(Book.PACK, "\n<dc:language>",
+            "\r\n  <dc:language\r\nid='uid'>").bytes());
         due.is("elements in lines of all kinds", desk.report(), "58@2:4:1 58@2:6:3");
     }
 
@@ -325,17 +336,21 @@ public final class XmlMeaningTest {
     /** Only the container, the package, pages, overlays and the encryption are read. */
     private void whatIsRead() {
         new Book().put("META-INF/x.xml", "<").put("META-INF/manifest.xml", "<").due(due, "others beside the container");
-        new Book().swap(Book.CONTAINER, "</rootfiles>", "<rootfile full-path='q.opf' media-type='application/oebps-package+xml'/></rootfiles>").put("q.opf", "<")
+        new Book().swap(Book.CONTAINER, "</rootfiles>",
+            "<rootfile full-path='q.opf' media-type='application/oebps-package+xml'/></rootfiles>").put("q.opf", "<")
             .due(due, "another package", "90 q.opf");
-        for (String type : new String[] {"text/html", "application/xml", "image/svg+xml", "application/xhtml", "application/xhtml+xml ", "Application/xhtml+xml", "application/smil", "application/oebps-package+xml"}) {
+        for (String type : new String[] {"text/html", "application/xml", "image/svg+xml", "application/xhtml", "application/xhtml+xml ",
+            "Application/xhtml+xml", "application/smil", "application/oebps-package+xml"}) {
             new Book().item("id='z' href='z' media-type='" + type + "'").put("E/z", "<").due(due, "an item of " + type);
         }
         for (String type : new String[] {"application/xhtml+xml", "application/smil+xml"}) {
             Book book = new Book().item("id='z' href='z' media-type='" + type + "'").put("E/z", "<");
             due.is("an item of " + type, new Desk().report(book.bytes()), "30@6:1:2");
         }
-        new Book().item("id='z' href='z#' media-type='application/xhtml+xml'").put("E/z", "<").due(due, "not with 59", "59 E/p.opf <item id='z'", "90 E/z");
-        new Book().item("href='z' media-type='application/xhtml+xml'").put("E/z", "<").due(due, "not with 57", "57 E/p.opf <item href='z'", "90 E/z");
+        new Book().item("id='z' href='z#' media-type='application/xhtml+xml'").put("E/z", "<")
+            .due(due, "not with 59", "59 E/p.opf <item id='z'", "90 E/z");
+        new Book().item("href='z' media-type='application/xhtml+xml'").put("E/z", "<")
+            .due(due, "not with 57", "57 E/p.opf <item href='z'", "90 E/z");
         new Book().put("E/z.xhtml", "<").due(due, "no item", "90 E/z.xhtml");
     }
 
@@ -344,7 +359,8 @@ public final class XmlMeaningTest {
         due.is("the container", new Desk().report(new Book().put(Book.CONTAINER, "<x>").bytes()), "30@1:1:4");
         due.is("the package", new Desk().report(new Book().put(Book.PACK, "<x>").bytes()), "30@2:1:4");
         due.is("the package with 31", new Desk().report(new Book().put(Book.PACK, nested(21, "")).bytes()), "31@2:1:61");
-        due.is("the navigation", new Desk().report(new Book().put(Book.NAV, "<x><img xmlns='http://www.w3.org/1999/xhtml'/>").bytes()), "30@3:1:" + (4 + "<img xmlns='http://www.w3.org/1999/xhtml'/>".length()));
+        due.is("the navigation", new Desk().report(new Book().put(Book.NAV, "<x><img xmlns='http://www.w3.org/1999/xhtml'/>").bytes()),
+            "30@3:1:" + (4 + "<img xmlns='http://www.w3.org/1999/xhtml'/>".length()));
         due.is("a page", new Desk().report(new Book().put(Book.PAGE, "<x>").bytes()), "30@4:1:4");
         due.is("a page with 31", new Desk().report(new Book().put(Book.PAGE, nested(21, "")).bytes()), "31@4:1:61");
         due.is("the encryption", new Desk().report(new Book().put(Book.ENCRYPTION, "<x>").bytes()), "30@6:1:4");
@@ -357,29 +373,34 @@ public final class XmlMeaningTest {
 
     /** Where one namespace is asked for, no other one that is known will do. */
     private void namespacesOfOthers() {
-        String[] all = {XML, "urn:oasis:names:tc:opendocument:xmlns:container", OPF, "http://purl.org/dc/elements/1.1/", "http://www.w3.org/1999/xhtml", "http://www.idpf.org/2007/ops", "http://www.w3.org/ns/SMIL",
+        String[] all = {XML, "urn:oasis:names:tc:opendocument:xmlns:container", OPF, "http://purl.org/dc/elements/1.1/",
+            "http://www.w3.org/1999/xhtml", "http://www.idpf.org/2007/ops", "http://www.w3.org/ns/SMIL",
             "http://www.w3.org/2001/04/xmlenc#", "u"};
         String smil = "<smil xmlns='http://www.w3.org/ns/SMIL' version='3.0'><body><par><text src='nav.xhtml'/></par></body></smil>";
         String data = "<encryption xmlns='urn:oasis:names:tc:opendocument:xmlns:container'><x:EncryptedData xmlns:x='http://www.w3.org/2001/04/xmlenc#'/></encryption>";
         for (String other : all) {
             if (!other.equals(all[1])) {
                 new Book().swap(Book.CONTAINER, all[1], other).due(due, "a container of " + other, "40 META-INF/container.xml <");
-                new Book().put(Book.ENCRYPTION, data.replace(all[1], other)).due(due, "an encryption of " + other, "80 META-INF/encryption.xml <");
+                new Book().put(Book.ENCRYPTION, data.replace(all[1], other))
+                    .due(due, "an encryption of " + other, "80 META-INF/encryption.xml <");
             }
             if (!other.equals(OPF)) {
                 new Book().swap(Book.PACK, OPF, other).due(due, "a package of " + other, "50 E/p.opf <");
             }
             if (!other.equals(all[3])) {
-                new Book().swap(Book.PACK, "<dc:title>", "<dc:title xmlns:dc='" + other + "'>").due(due, "a title of " + other, "53 E/p.opf <metadata");
+                new Book().swap(Book.PACK, "<dc:title>", "<dc:title xmlns:dc='" + other + "'>")
+                    .due(due, "a title of " + other, "53 E/p.opf <metadata");
             }
             if (!other.equals(all[4])) {
-                new Book().put(Book.PAGE, "<html xmlns='" + other + "'><img/></html>").due(due, "a page of " + other, "75 E/t/page.xhtml <");
+                new Book().put(Book.PAGE, "<html xmlns='" + other + "'><img/></html>")
+                    .due(due, "a page of " + other, "75 E/t/page.xhtml <");
             }
             if (!other.equals(all[5])) {
                 new Book().swap(Book.NAV, all[5], other).due(due, "a type of " + other, "70 E/nav.xhtml <html");
             }
             if (!other.equals(all[6])) {
-                new Book().item("id='o' href='o' media-type='application/smil+xml'").put("E/o", smil.replace(all[6], other)).due(due, "an overlay of " + other, "26 E/o <");
+                new Book().item("id='o' href='o' media-type='application/smil+xml'").put("E/o", smil.replace(all[6], other))
+                    .due(due, "an overlay of " + other, "26 E/o <");
             }
             if (!other.equals(all[7])) {
                 new Book().put(Book.ENCRYPTION, data.replace(all[7], other)).due(due, "data of " + other);
@@ -401,13 +422,16 @@ public final class XmlMeaningTest {
         String lost = "<meta property='role' refines='#q'>x</meta></metadata>";
         new Book().swap(Book.PACK, "</metadata>", lost).swap(Book.PACK, "</spine>", "<itemref idref='q'/></spine>" + "<x/>".repeat(285))
             .due(due, "a package", "33 E/p.opf <meta property='role'", "66 E/p.opf <itemref idref='q'");
-        new Book().put(Book.PAGE, "<html xmlns='http://www.w3.org/1999/xhtml'>" + "<b/>".repeat(297) + "<img/>\n<a href='q'/></html>").due(due, "a page", "76 E/t/page.xhtml <img", "77 E/t/page.xhtml <a");
+        new Book().put(Book.PAGE, "<html xmlns='http://www.w3.org/1999/xhtml'>" + "<b/>".repeat(297) + "<img/>\n<a href='q'/></html>")
+            .due(due, "a page", "76 E/t/page.xhtml <img", "77 E/t/page.xhtml <a");
         new Book().item("id='o' href='o' media-type='application/smil+xml'").meta("property='media:duration' refines='#o'", "1")
             .put("E/o", "<smil xmlns='http://www.w3.org/ns/SMIL' version='3.0'><body>" + "<seq/>".repeat(297) + "<par/></body></smil>")
             .due(due, "an overlay", mostOf("27 E/o ", 297));
         new Book().swap(Book.CONTAINER, "</rootfiles>", "</rootfiles>" + "<x/>".repeat(297)).due(due, "a container");
-        new Book().swap(Book.CONTAINER, "</rootfiles>", "</rootfiles>" + "<x/>".repeat(297)).swap(Book.CONTAINER, "media-type", "x").due(due, "a container without a package", "41 META-INF/container.xml <");
-        new Book().put(Book.ENCRYPTION, "<encryption xmlns='urn:oasis:names:tc:opendocument:xmlns:container'>" + "<x/>".repeat(299) + "</encryption>").due(due, "an encryption");
+        new Book().swap(Book.CONTAINER, "</rootfiles>", "</rootfiles>" + "<x/>".repeat(297)).swap(Book.CONTAINER, "media-type", "x")
+            .due(due, "a container without a package", "41 META-INF/container.xml <");
+        new Book().put(Book.ENCRYPTION, "<encryption xmlns='urn:oasis:names:tc:opendocument:xmlns:container'>" + "<x/>".repeat(299)
+            + "</encryption>").due(due, "an encryption");
     }
 
     /** So many messages at elements seq, and one at the par behind them. */

@@ -201,7 +201,8 @@ public final class XmlTest {
         wrong("<a><![CDATA[\u00a4\u0001]]></a>");
         wrong("<a\u00a4\u007f/>");
         wrong("\u00a4\u0001");
-        String[] bad = {"ff", "80", "c3", "c080", "c1bf", "e28220", "e08080", "eda080", "f08080", "f4908080", "f5808080", "f8", "e08181", "e09fbf", "f0808181", "f08fbfbf", "c181"};
+        String[] bad = {"ff", "80", "c3", "c080", "c1bf", "e28220", "e08080", "eda080", "f08080", "f4908080", "f5808080", "f8", "e08181",
+            "e09fbf", "f0808181", "f08fbfbf", "c181"};
         for (String hex : bad) {
             ByteArrayOutputStream out = new ByteArrayOutputStream();
             out.writeBytes("<a>\u00e9".getBytes(StandardCharsets.UTF_8));
