@@ -1,13 +1,16 @@
 import java.util.Arrays;
 import java.util.Random;
+import java.util.zip.DataFormatException;
 import java.util.zip.Deflater;
+import java.util.zip.Inflater;
 
-/** Deflated bytes as a library makes them, of all kinds; DeflateTest makes them bit by bit. */
+/** Deflated bytes as a library makes them, and as it reads them once they are changed; DeflateTest makes them bit by bit. */
 public final class InflateTest {
     public static void main(String[] args) {
         Due due = new Due();
         library(due);
         farCopies(due);
+        changedStreams(due);
         due.close();
     }
 
@@ -54,6 +57,81 @@ public final class InflateTest {
                 row[i] = row[i - distance];
             }
             is(due, "a distance of " + distance, Zip.deflate(row), row);
+        }
+    }
+
+    /** Streams with a bit or some turned over, cut off or made longer: right are those that the library reads to their end. */
+    private static void changedStreams(Due due) {
+        Random random = new Random(13);
+        int right = 0;
+        for (int round = 0; round < 250; round++) {
+            Zip zip = new Zip();
+            StringBuilder want = new StringBuilder();
+            for (int i = 0; i < 30; i++) {
+                byte[] raw = changed(random, stream(random));
+                byte[] data = inflated(raw);
+                zip.add(Zip.latin("n" + i), data == null ? new byte[9] : data, raw, 8);
+                want.append(data == null ? 0 : 1);
+                right += data == null ? 0 : 1;
+            }
+            Desk desk = new Desk();
+            desk.check(zip.bytes());
+            StringBuilder got = new StringBuilder();
+            for (int i = 0; i < 30; i++) {
+                got.append(desk.entry(i, 3));
+            }
+            due.is("changed streams, round " + round, got.toString(), want.toString());
+        }
+        due.yes("many of them are right, and many wrong", right > 1000 && right < 6500);
+    }
+
+    private static byte[] stream(Random random) {
+        byte[] data = new byte[random.nextInt(200)];
+        int letters = 1 + random.nextInt(random.nextBoolean() ? 6 : 120);
+        for (int i = 0; i < data.length; i++) {
+            data[i] = (byte) (i > 20 && random.nextInt(3) == 0 ? data[i - 1 - random.nextInt(20)] : random.nextInt(letters));
+        }
+        Deflater deflater = new Deflater(random.nextInt(10), true);
+        deflater.setStrategy(random.nextInt(3));
+        deflater.setInput(data);
+        deflater.finish();
+        byte[] raw = new byte[600];
+        int n = deflater.deflate(raw);
+        deflater.end();
+        return Arrays.copyOf(raw, n);
+    }
+
+    private static byte[] changed(Random random, byte[] raw) {
+        byte[] row = raw;
+        if (random.nextInt(8) == 0) {
+            row = Arrays.copyOf(raw, Math.max(0, raw.length + random.nextInt(3) - 1));
+        }
+        int flips = random.nextInt(4);
+        for (int n = 0; n < flips && row.length > 0; n++) {
+            int at = random.nextBoolean() ? random.nextInt(row.length) : random.nextInt(Math.min(row.length, 12));
+            row[at] ^= (byte) (1 << random.nextInt(8));
+        }
+        return row;
+    }
+
+    /** What the library makes of a stream, or null if it isn't right, isn't over with its last byte, or is too long here. */
+    private static byte[] inflated(byte[] raw) {
+        Inflater inflater = new Inflater(true);
+        try {
+            // The library wants a byte more than there is of a stream without its frame.
+            inflater.setInput(Arrays.copyOf(raw, raw.length + 1));
+            byte[] out = new byte[801];
+            int n = 0;
+            int now = 1;
+            while (!inflater.finished() && now > 0) {
+                now = inflater.inflate(out, n, out.length - n);
+                n += now;
+            }
+            return inflater.finished() && inflater.getBytesRead() == raw.length && n < out.length ? Arrays.copyOf(out, n) : null;
+        } catch (DataFormatException e) {
+            return null;
+        } finally {
+            inflater.end();
         }
     }
 }
