@@ -191,6 +191,7 @@ public final class CipherTest {
         data("<x:encryptionMethod Algorithm='" + right + "'/>" + refer("E/i/pic.png")).due(due, "another element", "81 " + AT);
         data("<x:EncryptionMethod Algorithm='http&#58;//www.idpf.org/2008/embedding'>t<y/></x:EncryptionMethod>" + refer("E/i/pic.png"))
             .due(due, "with a reference, and more in it");
+        whole(OPEN + "<x:EncryptedData/>" + METHOD + "</encryption>").due(due, "a method right behind the data", "81 " + AT);
         data("<x:EncryptionMethod/>" + METHOD + refer("q")).due(due, "81, and so not 82", "81 " + AT);
         data(METHOD + "<x:EncryptionMethod/>" + refer("E/i/pic.png")).due(due, "the second isn't looked at");
     }
@@ -211,6 +212,9 @@ public final class CipherTest {
         data(METHOD + far).due(due, "a reference deeper", "82 " + AT);
         data(METHOD + "<y>" + refer("E/i/pic.png") + "</y>").due(due, "data deeper", "82 " + AT);
         data(METHOD + "<x:CipherData><x:CipherValue/></x:CipherData>" + refer("E/i/pic.png")).due(due, "only the first data", "82 " + AT);
+        data(METHOD + "<x:CipherData/><x:CipherReference URI='E/i/pic.png'/>").due(due, "a reference right behind its data", "82 " + AT);
+        whole(OPEN + "<x:EncryptedData>" + METHOD + "</x:EncryptedData>" + refer("E/i/pic.png") + "</encryption>")
+            .due(due, "data right behind", "82 " + AT);
         marks("the first reference", data(METHOD
             + "<x:CipherData><y/><x:CipherReference URI='mimetype'/><x:CipherReference URI='E/i/pic.png'/></x:CipherData>"), "mimetype");
         marks("the first data", data(METHOD + "<y/>" + refer("mimetype") + refer("E/i/pic.png")), "mimetype");
@@ -257,6 +261,8 @@ public final class CipherTest {
         Book ahead = data(pic).swap(Book.PACK, "<dc:identifier id",
             "<dc:identifier>no</dc:identifier><dc:title id='uid'>no</dc:title><dc:identifier id");
         turned("the first identifier with the id", ahead, "urn:x:1");
+        turned("an identifier whose id is empty", data(pic).swap(Book.PACK, "unique-identifier='uid'", "unique-identifier=''")
+            .swap(Book.PACK, "id='uid'", "id=''"), "urn:x:1");
         turned("all four blanks are left out", data(pic).swap(Book.PACK, "urn:x:1", "\t u\nr\r\nn &#13;&#10;&#9;&#32;<![CDATA[ : ]]>"),
             "urn:");
         turned("other blanks stay", data(pic).swap(Book.PACK, "urn:x:1", "\u00a0x\u3000"), "\u00a0x\u3000");

@@ -22,6 +22,7 @@ public final class ContainerTest {
             "<rootfiles><rootfile xmlns='u' full-path='E/p.opf' " + TYPE + "/></rootfiles>",
             "<x><rootfiles><rootfile full-path='E/p.opf' " + TYPE + "/></rootfiles></x>", "<x><rootfile full-path='E/p.opf' " + TYPE
                 + "/></x>",
+            "<rootfiles/><rootfile full-path='E/p.opf' " + TYPE + "/>",
             "<q:rootfiles xmlns:q='u'><rootfile full-path='E/p.opf' " + TYPE + "/></q:rootfiles>",
             "<rootfiles><x><rootfile full-path='E/p.opf' " + TYPE + "/></x></rootfiles>"};
         for (String text : empty) {

@@ -61,6 +61,9 @@ public final class DeflateTest {
         right("kind 2", toldLetters().code("0").code("1"), "a");
         wrong("kind 3", new Bits().block(true, 3), "");
         wrong("kind 3 with what would be right", new Bits().block(true, 3).letters("x").end(), "x");
+        wrong("kind 3 with told codes", new Bits().block(true, 3).toldAll(257, 1).zeros(97).told(1).zeros(158).told(1).told(0).code("01"),
+            "a");
+        wrong("kind 3 with a stored byte", new Bits().block(true, 3).align().number(1, 16).number(~1, 16).number('x', 8), "x");
         wrong("kind 3 behind another block", new Bits().stored(false, "x").block(true, 3), "x");
         wrong("kind 3 that isn't the last", new Bits().block(false, 3).stored(true, "x"), "x");
     }

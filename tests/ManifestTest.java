@@ -16,6 +16,7 @@ public final class ManifestTest {
         test.strays();
         test.itemsThatAreNone();
         test.hrefs();
+        test.badHrefs();
         test.samePaths();
         test.firstWithAnId();
         test.ringsOfFallbacks();
@@ -236,6 +237,30 @@ public final class ManifestTest {
             .due(due, "any entry will do");
     }
 
+    /** Each way to be bad is told as 59, and not as 60. */
+    private void badHrefs() {
+        for (String href : new String[] {" ", "&#9;", "&#10;z", "z&#13;", "&#32;z", "z\u007f", "z?", "?", "x:z", ":", "/", "/z", "../..",
+            "../../..", "../../../z", "%2F", "z%2fz", "#", "z#z"}) {
+            href(href, "59 E/p.opf <item id='z'");
+        }
+        Book top = new Book();
+        top.put("p.opf", top.files.get(Book.PACK).replace("href='", "href='E/")).drop(Book.PACK).swap(Book.CONTAINER, "E/p.opf", "p.opf");
+        for (String href : new String[] {".", "./", "././.", "x/..", "x/../", "..", "../z", "p.opf", "./p.opf", "E/../p.opf"}) {
+            Book book = new Book();
+            book.files.clear();
+            book.files.putAll(top.files);
+            book.swap("p.opf", "</manifest>", "<item id='z' href='" + href + "' media-type='x/y'/></manifest>");
+            book.due(due, "a package at the top, href " + href, "59 p.opf <item id='z'");
+        }
+        for (String href : new String[] {"z", "x/../z", "E", "E/.", "E/p.opf", ".z", "..z"}) {
+            Book book = new Book();
+            book.files.clear();
+            book.files.putAll(top.files);
+            book.swap("p.opf", "</manifest>", "<item id='z' href='" + href + "' media-type='x/y'/></manifest>");
+            book.due(due, "a package at the top, href " + href, "60 p.opf <item id='z'");
+        }
+    }
+
     private void samePaths() {
         String[] hrefs = {"a", "b", "./a", "c#", "b/", "c#", "x/../a"};
         Book book = new Book();
@@ -251,6 +276,8 @@ public final class ManifestTest {
             .due(due, "an empty part is one", "60 E/p.opf <item id='z'", "60 E/p.opf <item id='y'");
         new Book().item("id='z' href='a' media-type='x/y'").item("id='y' href='A' media-type='x/y'")
             .due(due, "capitals", "60 E/p.opf <item id='z'", "60 E/p.opf <item id='y'");
+        new Book().item("id='z' href='ab' media-type='x/y'").item("id='y' href='a' media-type='x/y'")
+            .due(due, "a longer one ahead", "60 E/p.opf <item id='z'", "60 E/p.opf <item id='y'");
         StringBuilder deep = new StringBuilder();
         Book long1 = new Book();
         for (int i = 0; i < 20; i++) {
@@ -471,6 +498,9 @@ public final class ManifestTest {
         new Book().item("id='z' media-type='x/y' href='z'").swap(Book.PACK, "id='z' ", "").put("E/z", "")
             .due(due, "an item that counts for nothing", "57 E/p.opf <item media", "90 E/z");
         new Book().put("x.", "").due(due, "not with 10", "10 x.");
+        Zip folder = new Book().put("META-INF", "").zip();
+        folder.entries.get(6).extra = Zip.latin("/");
+        due.is("a name that more would make right", new Desk().report(folder.bytes()), "90@6:0:0");
         String none = "not told";
         new Book().put("x", "").drop(Book.CONTAINER).due(due, none + " with 22", "22 -");
         new Book().put("x", "").swap(Book.CONTAINER, "version='1.0'", "").due(due, none + " with 40", "40 META-INF/container.xml <");

@@ -387,7 +387,8 @@ public final class MetadataTest {
             prefix(right, true);
         }
         for (String wrong : new String[] {"a", "a:", ":", ": x", "a x", "a :x", "a : x", "a:x", "a:x y", "a: x b", "a: x b:", "a: x b y",
-            "a: x y b: z", "\u00e9: x", "a\u00e9: x", "a:: x", "a: x : y", "x a: y", "9a: x", "-: x", ".: x"}) {
+            "a: x y b: z", "\u00e9: x", "a\u00e9: x", "a:: x", "a: x : y", "x a: y", "ab x", "ab", "a: x bc y", "a: x bc", "9a: x", "-: x",
+                ".: x"}) {
             prefix(wrong, false);
         }
         pack("version='3.0'", "version='3.0' xml:prefix='x' xmlns:prefix='y'").due(due, "no prefix at all");
@@ -500,6 +501,14 @@ public final class MetadataTest {
             pack(id + title + language + modified, order.toString()).due(due, "order " + i);
             pack(id + title + language + modified, order.toString().replace("\n", "")).due(due, "order " + i + ", and nothing else");
         }
+        String[] parts = {id, title, language};
+        String[][] told = {{"51 E/p.opf <package", "55 E/p.opf <metadata"}, {"53 E/p.opf <metadata"}, {"54 E/p.opf <metadata"}};
+        for (int i = 0; i < 3; i++) {
+            String outside = parts[i].replace("<dc:", "<d:").replace("</dc:", "</d:").replaceFirst(">",
+                " xmlns:d='http://purl.org/dc/elements/1.1/'>");
+            pack(parts[i], "").swap(Book.PACK, "</metadata>", "</metadata>" + outside).due(due, "right behind metadata, " + i, told[i]);
+            pack(parts[i], "").swap(Book.PACK, "<metadata", outside + "<metadata").due(due, "right ahead of metadata, " + i, told[i]);
+        }
         pack(id, "<meta id='m' refines='#m' property='role'>x</meta>" + id).due(due, "a ring first", "34 E/p.opf <meta id");
         pack(id, "<meta property='media:duration'>x</meta>" + id).due(due, "a duration first", "37 E/p.opf <meta prop");
         pack("</metadata>", "<meta property='media:duration'>x</meta></metadata>")
@@ -522,7 +531,9 @@ public final class MetadataTest {
             .due(due, "nothing behind the :", "35 E/p.opf <meta property='a11y:'");
         pack("</metadata>", "<meta property='role' refines='#ui' x='d'>x</meta></metadata>")
             .due(due, "an id that more would make right", "33 E/p.opf <meta property='role'");
-        pack("<dc:title>T<", "<dc:title> <").swap(Book.PACK, "<dc:language>en", "<dc:language>en")
+        pack("</metadata>", "<meta property='role' refines='xuid'>x</meta></metadata>")
+            .due(due, "another sign than #", "33 E/p.opf <meta property='role'");
+        pack("<dc:title>T<", "<dc:title> <")
             .due(due, "a text ahead of another", "53 E/p.opf <metadata");
         pack("2024-02-29T23:59:59Z</meta>", "2024-02-29T23:59:59</meta>Z")
             .due(due, "a moment that more would make right", "56 E/p.opf <metadata");

@@ -214,6 +214,14 @@ public final class NavigationTest {
         toc("<ol><li><p/><a/><ol/></li></ol>").due(due, "what is in a wrong li isn't looked at", "71 E/nav.xhtml <li");
         toc("<ol><li><span/><ol/></li></ol>").due(due, "an empty ol behind a span", "71 E/nav.xhtml <ol/", "74 E/nav.xhtml <span");
         toc("<ol><li>" + a + "</li><li/><li>" + a + "</li></ol>").due(due, "a wrong one among right ones", "71 E/nav.xhtml <li/");
+        nav("<nav e:type='toc'><ol><li/></ol></nav>" + a).due(due, "an a right behind an empty li", "71 E/nav.xhtml <li");
+        nav("<nav e:type='toc'><ol><li/></ol></nav><span>x</span><ol><li>" + a + "</li></ol>")
+            .due(due, "a span right behind an empty li", "71 E/nav.xhtml <li");
+        nav("<nav e:type='toc'><ol/></nav><li>" + a + "</li>").due(due, "a li right behind an empty ol", "71 E/nav.xhtml <ol");
+        nav("<nav e:type='toc'/><ol><li>" + a + "</li></ol>").due(due, "an ol right behind an empty nav", "71 E/nav.xhtml <nav");
+        nav("<nav e:type='toc'><h1/></nav><ol><li>" + a + "</li></ol>").due(due, "an ol right behind a nav", "71 E/nav.xhtml <nav");
+        nav("<nav e:type='toc'><ol><li><span>x</span></li></ol></nav><ol><li>" + a + "</li></ol>")
+            .due(due, "an ol right behind a span's li", "71 E/nav.xhtml <li");
         toc("<ol><Li>" + a + "</Li></ol>").due(due, "capitals", "71 E/nav.xhtml <ol");
         toc("<ol><li><A href='#'>x</A></li></ol>").due(due, "an A", "71 E/nav.xhtml <li");
     }

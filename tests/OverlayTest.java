@@ -213,6 +213,11 @@ public final class OverlayTest {
             "<smil xmlns='http://www.w3.org/ns/smil' version='3.0'/>", "<smil xmlns='http://www.w3.org/2001/SMIL20/' version='3.0'/>"}) {
             whole(root).due(due, root, "26 E/o.smil <");
         }
+        whole(open.replace("smil ", "Smil ") + body + "</Smil>").due(due, "another root with a right body", "26 E/o.smil <");
+        whole("<smil xmlns='u' version='3.0'>" + body.replace("<body>", "<body xmlns='http://www.w3.org/ns/SMIL'>") + "</smil>")
+            .due(due, "a root of another namespace with a right body", "26 E/o.smil <");
+        whole(open + "<body xmlns='u'>" + par("").replace("<par>", "<par xmlns='http://www.w3.org/ns/SMIL'>") + "</body></smil>")
+            .due(due, "a body of another namespace with right parts", "26 E/o.smil <");
         whole(open.replace("3.0", "3") + "<body><par><text/></par><x/></body></smil>").due(due, "then nothing else", "26 E/o.smil <");
         whole("<s:smil xmlns:s='http://www.w3.org/ns/SMIL' version='3.0'><s:body><s:par><s:text src='nav.xhtml'/></s:par></s:body></s:smil>").due(due, "by a prefix");
     }
@@ -292,7 +297,8 @@ public final class OverlayTest {
         for (String clock : right) {
             body(par("clipEnd='" + clock + "'")).due(due, "clock " + clock);
         }
-        String[] wrong = {"", " ", "1234567", "0000001", "1.", ".1", ".", "1.1234567", "1..1", "1.1.1", "1,1", "1 ", " 1", "1 s", "1S",
+        String[] wrong = {"", " ", "/", "1/", "/1", "1/1", "1.5/", "00:0/", "0/:00", "0:00:0/", "1:", "1;", "1.:", "1234567", "0000001",
+            "1.", ".1", ".", "1.1234567", "1..1", "1.1.1", "1,1", "1 ", " 1", "1 s", "1S",
             "1H", "1MIN", "1MS", "1m", "1mi", "1mins", "1sec", "1hs", "1msx", "1d", "-1", "+1", "1e3", "0x1", "s", "ms", "h",
             ":", "::", "1:", ":1", "0:01", "000:01", "1:1", "00:1", "00:001", "60:00", "99:00", "00:60", "00:99", "10000:00:00", ":00:00",
                 "00000:00:01", "1:0:01", "1:00:1", "1:000:01", "1:00:001", "1:60:00", "1:00:60", "1:00:00:00", "00:00:", "00:01s",

@@ -10,14 +10,21 @@ import org.xml.sax.helpers.DefaultHandler;
 
 /** Documents stirred together from pieces, small enough for the limits: right are those that a library can parse. */
 public final class SoupTest {
-    private static final String[] PIECES = {"<a>", "</a>", "<a/>", "<b c='d'>", "</b>", "<p:a xmlns:p='u'>", "</p:a>", "<p:b/>", "<a p:c=''/>",
-        "<a xmlns:p='u' p:c='1'>", "<a b='1' b='2'/>", "<a xmlns='u'>", "<a xmlns=''/>", "<a xmlns:p=''/>", "<a xmlns:p='u' xmlns:q='u' p:b='' q:b=''/>",
-        "<a xml:lang='x'/>", "<", ">", "/", "=", "'", "\"", " ", "\n", "\r", "\t", "&", ";", "&amp;", "&lt;", "&#65;", "&#x41;", "&#0;", "&#xFFFE;",
-        "&nbsp;", "]", "]]", "]]>", "-", "--", "-->", "<!--", "<!-- c -->", "<![CDATA[", "<![CDATA[x]]>", "<?", "?>", "<?p?>", "<?p q?>", "<?xml?>",
-        "<!DOCTYPE a>", "x", "1", "\u00e9", "\ud83d\ude00", "\u0001", "\uffff", "\ufffd", "c='d'", " c=\"d\"", ":", "?", "!", "[", ".", "_"};
-    private static final String[] HEADS = {"", "", "", "<a>", "<a>", "<a>", "<a><b>", "<?xml version='1.0'?>", "<?xml version=\"1.0\" encoding='UTF-8'?>\n<a>",
+    private static final String[] PIECES = {"<a>", "</a>", "<a/>", "<b c='d'>", "</b>", "<p:a xmlns:p='u'>", "</p:a>", "<p:b/>",
+        "<a p:c=''/>",
+        "<a xmlns:p='u' p:c='1'>", "<a b='1' b='2'/>", "<a xmlns='u'>", "<a xmlns=''/>", "<a xmlns:p=''/>",
+            "<a xmlns:p='u' xmlns:q='u' p:b='' q:b=''/>",
+        "<a xml:lang='x'/>", "<", ">", "/", "=", "'", "\"", " ", "\n", "\r", "\t", "&", ";", "&amp;", "&lt;", "&#65;", "&#x41;", "&#0;",
+            "&#xFFFE;",
+        "&nbsp;", "]", "]]", "]]>", "-", "--", "-->", "<!--", "<!-- c -->", "<![CDATA[", "<![CDATA[x]]>", "<?", "?>", "<?p?>", "<?p q?>",
+            "<?xml?>",
+        "<!DOCTYPE a>", "x", "1", "\u00e9", "\ud83d\ude00", "\u0001", "\uffff", "\ufffd", "c='d'", " c=\"d\"", ":", "?", "!", "[", ".",
+            "_"};
+    private static final String[] HEADS = {"", "", "", "<a>", "<a>", "<a>", "<a><b>", "<?xml version='1.0'?>",
+        "<?xml version=\"1.0\" encoding='UTF-8'?>\n<a>",
         "<!DOCTYPE a><a>", "\ufeff<a>", "<?xml version = '1.0' ?><a>", "<a b='", "<a>x<!--", "<a><![CDATA["};
-    private static final String[] TAILS = {"", "", "</a>", "</a>", "</a>", "</b></a>", "</a >", "/>", "'/>", "--></a>", "]]></a>", "</a><!-- c -->\n"};
+    private static final String[] TAILS = {"", "", "</a>", "</a>", "</a>", "</b></a>", "</a >", "/>", "'/>", "--></a>", "]]></a>",
+        "</a><!-- c -->\n"};
 
     private final Random random = new Random(20261116);
     private final SAXParser library;

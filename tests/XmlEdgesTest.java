@@ -21,6 +21,7 @@ public final class XmlEdgesTest {
         test.order();
         test.doctypes();
         test.comments();
+        test.instructions();
         test.textsAndCdata();
         test.quotes();
         test.numbersOfReferences();
@@ -300,6 +301,11 @@ public final class XmlEdgesTest {
         wrong("<?xml version=\"1.0\u00a4'?><a/>");
         wrong("<?xml version='1.0' \u00a4Encoding='utf-8'?><a/>");
         wrong("<?xml version='1.0' encoding\u00a4?><a/>");
+        wrong("<?xml version='1.0' e\u00a4='utf-8'?><a/>");
+        wrong("<?xml version='1.0' encodin\u00a4='utf-8'?><a/>");
+        wrong("<?xml version='1.0' encoding\u00a4'utf-8'?><a/>");
+        wrong("<?xml version='1.0' encoding \u00a4'utf-8'?><a/>");
+        wrong("<?xml version\u00a4'1.0'?><a/>");
         wrong("<?xml version='1.0' encoding='\u00a4'?><a/>");
         wrong("<?xml version='1.0' encoding='utf\u00a48'?><a/>");
         wrong("<?xml version='1.0' encoding='utf-8\u00a4s'?><a/>");
@@ -324,6 +330,7 @@ public final class XmlEdgesTest {
         }
         wrong("<?XML\u00a4 version='1.0'?><a/>");
         right("<?xml-x version='1.0'?><?xmlns?><?xm?><?x?><?xm.l?><a/>");
+        right("<?xma?><?xal?><?aml?><?XMX?><?lmx?><a/>");
         wrong("<?xml version='1.0'?><?xml\u00a4 version='1.0'?><a/>");
     }
 
@@ -382,6 +389,23 @@ public final class XmlEdgesTest {
         wrong("<!-\u00a4a--><a/>");
     }
 
+    private void instructions() {
+        for (String inside : new String[] {"?", "??", ">", "x>y", "x?y", "? >", "?x>", "<a>", "&", "--", "]]>", "'"}) {
+            right("<?p " + inside + "?><a><?p " + inside + "?></a><?p " + inside + "?>");
+        }
+        for (String head : new String[] {"", "<a>", "<a/>"}) {
+            wrong(head + "<?\u00a4");
+            wrong(head + "<?p\u00a4");
+            wrong(head + "<?p?\u00a4");
+            wrong(head + "<?p \u00a4");
+            wrong(head + "<?p x\u00a4");
+            wrong(head + "<?p x?\u00a4");
+            wrong(head + "<?p x>\u00a4");
+            wrong(head + "<?p?\u00a4?>");
+            wrong(head + "<?p\u00a4>");
+        }
+    }
+
     private void textsAndCdata() {
         for (String inside : new String[] {"]", "]]", "]>", "] ]>", "]]&gt;", "]]&amp;>", "]&lt;]>", "&#93;]>", "]]<b/>>", "]]<!---->>",
             "]]<?p?>>", "]]<![CDATA[]]>>", ">", "\"'", "--", "?>", "<![CDATA[]]>]>"}) {
@@ -405,6 +429,10 @@ public final class XmlEdgesTest {
 
     private void quotes() {
         right("<a b='\"' c=\"'\" d='>' e=']]>' f='/' g='='/>");
+        wrong("<a b=\u00a4/>");
+        wrong("<a b=\u00a4>");
+        wrong("<a b= \u00a4/>");
+        wrong("<a b= \u00a4");
         wrong("<a b=\u00a4x/>");
         wrong("<a b=\u00a4`x`/>");
         wrong("<a b=\u00a4&quot;/>");
@@ -433,7 +461,8 @@ public final class XmlEdgesTest {
         }
         wrong("<a>\u00a4&#x10000000000000041;</a>");
         wrong("<a>\u00a4&#18446744073709551681;</a>");
-        for (String bad : new String[] {"&#a;", "&#x;", "&#;", "&#xG;", "&#1a;", "&#+65;", "&#-65;", "&#x-41;", "&#6 5;", "&#65", "&#x41",
+        for (String bad : new String[] {"&#a;", "&#x;", "&#;", "&#xG;", "&#1a;", "&#3F;", "&#3f;", "&#6A;", "&#6a;", "&#x4g;", "&#x4G;",
+            "&#+65;", "&#-65;", "&#x-41;", "&#6 5;", "&#65", "&#x41",
             "&#X41;", "&#65,", "&#x4:;", "&#/;", "&#x@;", "&#x`;", "&#:;"}) {
             wrong("<a>x\u00a4" + bad + "</a>");
             wrong("<a b='x\u00a4" + bad + "'/>");

@@ -88,6 +88,11 @@ public final class XmlMeaningTest {
         right("<a xmlns='u' xmlns:p='u' p:b='' b=''/>");
         right("<r xmlns:p='u' xmlns:q='u'><a xmlns:q='v' p:b='' q:b=''/></r>");
         wrong("\u00a4<a xmlns='u' xmlns='v'/>");
+        wrong("\u00a4<a xmlns='' xmlns='u'/>");
+        wrong("\u00a4<a xmlns='u' xmlns=''/>");
+        wrong("\u00a4<a xmlns='' xmlns=''/>");
+        wrong("\u00a4<a b='' b =''/>");
+        wrong("\u00a4<a b ='' b\n= ''/>");
         wrong("\u00a4<a xmlns:p='u' xmlns:p='u'/>");
         right("<a xmlns:p='u' xmlns:q='u'/>");
         wrong("\u00a4<a xml:b='' xml:b=''/>");
@@ -330,6 +335,9 @@ public final class XmlMeaningTest {
         due.is("the first of them", Xml.report(new byte[] {(byte) 239}), "30@1:1:1");
         due.is("the first two of them", Xml.report(new byte[] {(byte) 239, (byte) 187}), "30@1:1:1");
         due.is("with another behind", Xml.report(new byte[] {(byte) 239, (byte) 187, (byte) 190, '<', 'a', '/', '>'}), "30@1:1:1");
+        due.is("a char whose second byte is another", Xml.report(Zip.utf8("\uff3f<a/>")), "30@1:1:1");
+        due.is("a char whose first byte is another", Xml.report(Zip.utf8("\u1eff<a/>")), "30@1:1:1");
+        due.is("a char whose third byte is another", Xml.report(Zip.utf8("\ufefe<a/>")), "30@1:1:1");
         due.is("in a text they count", Xml.report(Zip.utf8("<a>\ufeff&</a>")), "30@1:1:5");
     }
 
